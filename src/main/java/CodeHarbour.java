@@ -1807,7 +1807,7 @@ public final class CodeHarbour {
     }
 
     void pass(int many) {
-      at = ahead(many);
+      at = at + many < count ? at + many : count > 0 ? count - 1 : 0;
       kind = kinds[at];
       place = places[at];
       value = values[at];
