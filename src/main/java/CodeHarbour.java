@@ -163,6 +163,7 @@ public final class CodeHarbour {
   private static final int TOO_MANY = 7;
 
   private static final int MOST_LETTERS = 8;
+  private static final int MOST_NUMBER = 2147483647;
   private static final int MOST_ELEMENTS = 64;
   private static final int MOST_BOUND = 100000;
   private static final int MOST_OPERANDS = 16;
@@ -1881,7 +1882,7 @@ public final class CodeHarbour {
         if (kind == A_NUMBER) {
           value = value * 10 + (text.byteAt(behind) - '0');
         }
-        if (value > Integer.MAX_VALUE) {
+        if (value > MOST_NUMBER) {
           kind = BAD_WORD;
         }
         behind++;
