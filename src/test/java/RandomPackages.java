@@ -74,7 +74,7 @@ public final class RandomPackages {
       }
     }
     byte[] opening = Forge.opening(code, claims);
-    return Forge.bytes(opening, plainParts(opening));
+    return Forge.bytes(opening, plainParts(forge, opening));
   }
 
   private static Model.Node claim(Forge forge) {
@@ -88,13 +88,13 @@ public final class RandomPackages {
     return forge.oneIn(3) ? Model.all(Model.two(18, Model.two(20, Model.var(0), r), f)) : f;
   }
 
-  static byte[] plainParts(byte[] opening) {
+  private static byte[] plainParts(Forge forge, byte[] opening) {
     Model.Gate gate = new Model().new Gate(opening);
     List<byte[]> parts = new ArrayList<>();
     try {
       gate.open();
       for (Model.Node part : gate.obligation()) {
-        parts.add(Forge.plainly(part, List.of()));
+        parts.add(forge.plainly(part, List.of()));
       }
     } catch (Model.Fault f) {
       return new byte[] {32};

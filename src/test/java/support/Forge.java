@@ -353,15 +353,18 @@ final class Forge {
 
   // ---- what can be shown without a thought
 
-  static byte[] plainly(Model.Node w, List<Model.Node> around) {
+  byte[] plainly(Model.Node w, List<Model.Node> around) {
+    // Now and then what is at hand, be it the right one or not.
+    if (!around.isEmpty() && oneIn(20)) {
+      return bytes(64, random.nextInt(around.size()));
+    }
     switch (w.op()) {
       case 16:
         return bytes(32);
       case 17:
         return bytes(33, plainly(w.l(), around), plainly(w.r(), around));
       case 18:
-        return bytes(34, plainly(w.r() == null ? w : Model.shift(w.r(), 1, 0),
-            and(around, w.l())));
+        return bytes(34, plainly(Model.shift(w.r(), 1, 0), and(around, w.l())));
       case 19:
         return bytes(35, plainly(w.l(), and(around, null)));
       default:
