@@ -370,7 +370,7 @@ public final class CodeHarbour {
    */
   private static final class Parcel {
     final int room;
-    byte[] row = new byte[512];
+    byte[] row;
     int size = 0;
     int at = 0;
     int flaw = 0;
@@ -378,6 +378,7 @@ public final class CodeHarbour {
 
     Parcel(int room) {
       this.room = room;
+      this.row = new byte[Math.max(0, Math.min(room, 512))];
     }
 
     void add(int value) {
@@ -385,7 +386,7 @@ public final class CodeHarbour {
         return;
       }
       if (size >= row.length) {
-        row = Arrays.copyOf(row, row.length * 2);
+        row = Arrays.copyOf(row, row.length * 2 + 1);
       }
       row[size] = (byte) value;
       size++;
@@ -1025,7 +1026,7 @@ public final class CodeHarbour {
     final Head second = new Head();
     final Head third = new Head();
     final Head fourth = new Head();
-    Parcel parcel = null;
+    Parcel parcel = new Parcel(0);
     boolean inClaim = false;
     int claimNodes = 0;
     int context = 0;
@@ -1756,7 +1757,7 @@ public final class CodeHarbour {
 
   /** The words of a source; the last one is its end, or one that is none. */
   private static final class Words {
-    Parcel text = null;
+    Parcel text = new Parcel(0);
     int[] kinds = new int[256];
     int[] places = new int[256];
     long[] values = new long[256];
@@ -1794,21 +1795,13 @@ public final class CodeHarbour {
       count++;
     }
 
-    /** The place among the words of one that stands so far ahead. */
-    private int ahead(int many) {
-      return at + many < count ? at + many : count > 0 ? count - 1 : 0;
-    }
-
-    int kindAhead(int many) {
-      return kinds[ahead(many)];
-    }
-
-    long valueAhead(int many) {
-      return values[ahead(many)];
+    /** The place, among the words, of one that stands so far ahead, or of the last one. */
+    int ahead(int many) {
+      return Math.max(0, Math.min(at + many, count - 1));
     }
 
     void pass(int many) {
-      at = at + many < count ? at + many : count > 0 ? count - 1 : 0;
+      at = Math.max(0, Math.min(at + many, count - 1));
       kind = kinds[at];
       place = places[at];
       value = values[at];
@@ -1928,7 +1921,7 @@ public final class CodeHarbour {
     final Words words = new Words();
     final Code code;
     final Packer packer;
-    Parcel source = null;
+    Parcel source = new Parcel(0);
     // What is known by its name: its kind, its first cell or its register, and how long it is.
     final long[] names = new long[MOST_NAMES];
     final int[] kinds = new int[MOST_NAMES];
@@ -2143,7 +2136,7 @@ public final class CodeHarbour {
         refuse(WRONG_NAME);
         return;
       }
-      boolean isArr = words.kindAhead(1) == '[';
+      boolean isArr = words.kinds[words.ahead(1)] == '[';
       if (kinds[target] != (isArr ? KIND_ARR : KIND_VAR)) {
         refuse(WRONG_KIND);
         return;
@@ -2187,18 +2180,21 @@ public final class CodeHarbour {
 
     /** Goes behind an access that is direct; else stays at its name. */
     private boolean passDirect(int arr) {
-      int loop = words.kindAhead(2) == A_NAME ? find(words.valueAhead(2)) : -1;
+      int index = words.ahead(2);
+      int loop = words.kinds[index] == A_NAME ? find(words.values[index]) : -1;
       if (loop < 0 || kinds[loop] != KIND_LOOP) {
         return false;
       }
-      int sign = words.kindAhead(3);
+      int sign = words.kinds[words.ahead(3)];
+      int number = words.ahead(4);
       long offset = 0;
       int last = 3;
-      if ((sign == '+' || sign == '-') && words.kindAhead(4) == A_NUMBER) {
-        offset = sign == '-' ? -words.valueAhead(4) : words.valueAhead(4);
+      if ((sign == '+' || sign == '-') && words.kinds[number] == A_NUMBER) {
+        offset = sign == '-' ? -words.values[number] : words.values[number];
         last = 5;
       }
-      if (words.kindAhead(last) != ']' || !staysWithin(homes[loop], offset, lengths[arr])) {
+      boolean isWhole = words.kinds[words.ahead(last)] == ']';
+      if (!isWhole || !staysWithin(homes[loop], offset, lengths[arr])) {
         return false;
       }
       words.pass(last + 1);
@@ -2404,7 +2400,7 @@ public final class CodeHarbour {
         refuse(WRONG_NAME);
         return;
       }
-      boolean isArr = words.kindAhead(1) == '[';
+      boolean isArr = words.kinds[words.ahead(1)] == '[';
       if (isArr != (kinds[which] == KIND_ARR)) {
         refuse(WRONG_KIND);
         return;

@@ -237,6 +237,20 @@ public final class Limits {
         + ("if(i*j*k*i*j*k*i*j<i*j*k*i*j*k*i*j){}").repeat(25) + "} } }", 0, -1);
   }
 
+  /** An object is used again and again. */
+  private static void again() {
+    Both both = new Both();
+    for (int i = 0; i < 100; i++) {
+      compile(both, "again " + i, "arr a[3]; for i = 0 .. 3 { for j = 1 .. 3 { a[i] = a[j]; } }"
+          + " for i = 0 .. 2 { a[i] = i; }", 0, -1);
+      both.bring(Forge.bytes(80, 0, 2, 0, 1, Forge.ins(15, 0, 0, 0), HALT, 16, 32, Forge.any(8), 34, 32));
+      due("a load", both.load(), 0);
+      both.bring(Forge.bytes(80, 0, 2, 0, 1, Forge.ins(15, 0, 0, 0), HALT, 16, 32, Forge.any(8), 34, 36));
+      due("a fault", both.load(), -1);
+    }
+    ask("again", both);
+  }
+
   // ---- packages
 
   private static final byte[] HALT = Forge.ins(13, 0, 0, 0);
@@ -287,6 +301,41 @@ public final class Limits {
         Forge.bytes(38, repeat(19, 39), 16, zero, zero)), 8, 20);
     load("a formula of 41 in a PUT", claimPackage(Forge.bytes(16),
         Forge.bytes(38, repeat(19, 40), 16, zero, zero)), 5, 20 + 41);
+  }
+
+  /** Much that is told and still wanted: ALLs of a hypothesis opened at every depth. */
+  private static void manyBindings() {
+    byte[] claim = Forge.bytes(repeat(19, 38), 18, 16, 16);
+    byte[] first = Forge.bytes(Forge.any(38), 34, 32);
+    byte[] told = Forge.bytes(67, repeatBytes(Forge.bytes(68, 5, 1), 38), 64, 0);
+    byte[] head = claimPackage(claim, first);
+    // 9 tags, 112 THENs within one another, 38 FORs and a HYPOTHESIS in the last one: 160.
+    int place = head.length + 9 + 112 * told.length + 1 + 3 * 38;
+    for (int many : new int[] {1, 50, 111, 112, 113, 150}) {
+      byte[] part = Forge.bytes(Forge.any(8), 34, repeatBytes(told, many), 32);
+      boolean deep = many > 112;
+      load("told " + many + " times", Forge.bytes(head, part), deep ? 5 : 0, deep ? place : -1);
+    }
+  }
+
+  /** Terms that are long when they are put where variables stand. */
+  private static void longTerms() {
+    byte[] zero = Forge.bytes(1, Forge.four(0));
+    byte[] wide = zero;
+    byte[] claim = Forge.bytes(22, zero, zero);
+    byte[] formula = Forge.bytes(22, 5, 0, 5, 0);
+    for (int i = 0; i < 9; i++) {
+      wide = Forge.bytes(2, wide, wide);
+      claim = i < 8 ? Forge.bytes(17, claim, claim) : claim;
+      formula = i < 8 ? Forge.bytes(17, formula, formula) : formula;
+    }
+    // The claim is shown for a wide term, this one for itself.
+    byte[] shown = Forge.bytes(37);
+    for (int i = 0; i < 8; i++) {
+      shown = Forge.bytes(33, shown, shown);
+    }
+    byte[] d = Forge.bytes(38, formula, wide, zero, 36, 38, formula, wide, wide, 37, shown);
+    load("wide terms", claimPackage(claim, Forge.bytes(d, Forge.any(8), 34, 32)), 0, -1);
   }
 
   private static byte[] repeatBytes(byte[] of, int many) {
@@ -498,7 +547,10 @@ public final class Limits {
       nests();
       accesses();
       dense();
+      again();
       depths();
+      manyBindings();
+      longTerms();
       rooms();
       exactRoom();
       heads();

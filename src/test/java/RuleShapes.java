@@ -168,6 +168,28 @@ public final class RuleShapes {
     due("still so", Forge.bytes(code, claims.get(0), 36, Forge.any(8), 34, 64, 0), 0);
   }
 
+  /** What is read is a variable of its own, whichever register it comes to. */
+  private static void readings() {
+    byte[] end = Forge.bytes(Forge.any(8), 34, 32);
+    byte[] well = Forge.bytes(33, 33, 36, 36, 35);
+    byte[] number = Forge.bytes(0, 7, 0, Forge.four(0));
+    for (int to = 0; to < 7; to++) {
+      for (int x = 0; x < 7; x++) {
+        for (int y = 0; y < 7; y++) {
+          byte[] claim = Forge.bytes(22, 6, x, 6, y);
+          byte[] code = Forge.bytes(80, 0, 5, 0, 2, Forge.ins(15, 0, 0, 0), number, Forge.ins(6, to, 7, 9),
+              Forge.ins(15, 0, 0, 1), HALT);
+          due("what was read", Forge.bytes(code, 16, claim, 32, Forge.any(8), 34, well, 37, end),
+              x == y ? 0 : 8);
+          byte[] twice = Forge.bytes(80, 0, 6, 0, 2, number, Forge.ins(6, to, 7, 9), number,
+              Forge.ins(6, 6, 7, 9), Forge.ins(15, 0, 0, 1), HALT);
+          boolean same = x == y || x != to && y != to && x != 6 && y != 6;
+          due("what was read twice", Forge.bytes(twice, 16, claim, well, well, 37, end), same ? 0 : 8);
+        }
+      }
+    }
+  }
+
   /** Terms that are deep on their right side. */
   private static void rightSides() {
     byte[] one = Forge.bytes(1, Forge.four(1));
@@ -194,6 +216,7 @@ public final class RuleShapes {
     formulas();
     branches();
     changes();
+    readings();
     rightSides();
     System.out.println(loads + " packages, " + in + " came in, " + wrong + " answers are not as due");
     if (wrong != 0) {

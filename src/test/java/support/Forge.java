@@ -358,6 +358,9 @@ final class Forge {
     if (!around.isEmpty() && oneIn(20)) {
       return bytes(64, random.nextInt(around.size()));
     }
+    if (oneIn(12)) {
+      return putPlainly(w, around);
+    }
     switch (w.op()) {
       case 16:
         return bytes(32);
@@ -381,6 +384,19 @@ final class Forge {
       }
     }
     return bytes(w.op() == 22 ? 37 : 55);
+  }
+
+  /** The whole of W by a PUT of a term for the same, or for a number that it is. */
+  private byte[] putPlainly(Model.Node w, List<Model.Node> around) {
+    Model.Node y = term(around, 1);
+    for (Model.Node part = w; part.l() != null && part.op() != 19;
+        part = oneIn(2) ? part.l() : part.r()) {
+      y = part.op() < 16 && oneIn(2) ? part : y;
+    }
+    Model.Node f = abstracted(w, y, 0);
+    boolean reckoned = Model.value(y) != null && oneIn(2);
+    Model.Node x = reckoned ? Model.two(2, y, Model.num(0)) : y;
+    return bytes(38, f, x, y, reckoned ? 36 : 37, plainly(Model.put(f, x), around));
   }
 
   private static byte[] found(Model.Node h, Model.Node w, byte[] d) {
