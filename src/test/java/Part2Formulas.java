@@ -80,7 +80,8 @@ public final class Part2Formulas {
   }
 
   private static void moved() {
-    Ledger.sentence("Part 2", "the same variables, binders for binders: further in they are called otherwise");
+    Ledger.sentence("Part 2",
+        "the same variables, binders for binders: further in they are called otherwise");
     // ALL x (x = 0 IF-THEN ALL y (y = 0 IF-THEN ..)): the hypothesis of x, further in.
     byte[] ofX = Wire.equal(Wire.var(0), num(0));
     byte[] xFurtherIn = Wire.equal(Wire.var(1), num(0));
@@ -97,6 +98,25 @@ public final class Part2Formulas {
     Ledger.shows("an ALL, further in", u, 35, 34, 35, 64, 1);
     byte[] t = Wire.all(Wire.then(above, Wire.all(above)));
     Ledger.fails("another ALL", 8, 3, t, 35, 34, 35, 64, 1);
+  }
+
+  private static void manyBinders() {
+    Ledger.sentence("Part 2", "binders for binders: each is another one than all that stand around it");
+    int many = 30;
+    byte[] open = Wire.times(many, 35);
+    for (int i = 1; i <= many; i++) {
+      byte[] below = Wire.all(Wire.less(Wire.var(0), Wire.var(i)));
+      byte[] above = Wire.all(Wire.less(Wire.var(i), Wire.var(0)));
+      byte[] itself = Wire.all(Wire.less(Wire.var(0), Wire.var(0)));
+      byte[] deeper = Wire.all(2, Wire.less(Wire.var(0), Wire.var(i + 1)));
+      byte[] deeperTurned = Wire.all(2, Wire.less(Wire.var(i + 1), Wire.var(0)));
+      Ledger.shows("the same", Wire.all(many, Wire.then(below, below)), open, 34, 64, 0);
+      Ledger.shows("the same", Wire.all(many, Wire.then(deeper, deeper)), open, 34, 64, 0);
+      for (byte[][] pair : new byte[][][] {{below, above}, {below, itself}, {itself, above},
+          {deeper, deeperTurned}}) {
+        Ledger.fails("variable " + i, 8, many + 1, Wire.all(many, Wire.then(pair[0], pair[1])), open, 34, 64, 0);
+      }
+    }
   }
 
   private static void fits(int x, int y, boolean fits) {
@@ -176,7 +196,8 @@ public final class Part2Formulas {
     claimAt("within a term", Wire.equal(Wire.product(Wire.reg(3), Wire.reg(2)), Wire.product(sum, num(0))), 0,
         same, adds);
     // ALL (v < r1 IF-THEN v < r2): within a binder they are the same terms.
-    byte[] claim = Wire.all(Wire.then(Wire.less(Wire.var(0), Wire.reg(1)), Wire.less(Wire.var(0), Wire.reg(2))));
+    byte[] claim = Wire.all(Wire.then(Wire.less(Wire.var(0), Wire.reg(1)), Wire.less(Wire.var(0),
+        Wire.reg(2))));
     byte[] shown = {35, 34, 64, 0};
     claimAt("within ALL", claim, 0, shown, Wire.li(1, 5), Wire.li(2, 5));
     claimAt("within ALL, other terms", claim, 8, shown, Wire.li(1, 5), Wire.li(2, 6));
@@ -190,6 +211,7 @@ public final class Part2Formulas {
   public static void main(String[] args) {
     sameness();
     moved();
+    manyBinders();
     fitting();
     reckoned();
     claims();

@@ -49,7 +49,8 @@ public final class Part3Obligation {
   }
 
   /** Behind the derivations of the PARTS ahead of it, the next PART is this formula. */
-  private static CodeHarbour partIs(CodeHarbour x, String what, byte[] opening, byte[] ahead, byte[] formula) {
+  private static CodeHarbour partIs(CodeHarbour x, String what, byte[] opening, byte[] ahead,
+      byte[] formula) {
     byte[] put = Wire.join(38, formula, ZERO, ZERO, 37, 99);
     int place = opening.length + ahead.length;
     Ledger.loads(x, what, 7, place + put.length - 1, opening, ahead, put);
@@ -91,7 +92,8 @@ public final class Part3Obligation {
     partIs(new CodeHarbour(), "a path",
         Wire.join(Wire.code(1, Wire.addi(5, 6, 9), Wire.mark(0), Wire.HALT), claimOfAll()),
         new byte[0], ofAll(with(zeros(), 5, Wire.plus(ZERO, Wire.num(9)))));
-    Ledger.sentence("Part 3", "ALL eight times, for registers 0 to 7, the outermost for 0: the claim of this MARK"
+    Ledger.sentence("Part 3",
+        "ALL eight times, for registers 0 to 7, the outermost for 0: the claim of this MARK"
         + " at them IF-THEN the PATH from the place behind it with them");
     byte[] opening = Wire.join(Wire.code(2, Wire.mark(0), Wire.HALT, Wire.mark(1), Wire.HALT), Wire.TRUE,
         claimOfAll());
@@ -124,7 +126,8 @@ public final class Part3Obligation {
   }
 
   private static void plainPaths() {
-    Ledger.sentence("Part 3", "LI, MOV, ADD, SUB, MUL, ADDI: the PATH from the next place, r[a] being the number n,"
+    Ledger.sentence("Part 3",
+        "LI, MOV, ADD, SUB, MUL, ADDI: the PATH from the next place, r[a] being the number n,"
         + " r[b], r[b] + r[c], r[b] - r[c], r[b] * r[c], r[b] + the number n");
     byte[][] r = variables(0);
     pathOf("LI", Wire.li(3, -9), ofAll(with(r, 3, Wire.num(-9))));
@@ -142,7 +145,8 @@ public final class Part3Obligation {
   private static void cellPaths() {
     byte[][] r = variables(0);
     byte[][] further = variables(1);
-    Ledger.sentence("Part 3", "LD: (rlo <= r[b] + n AND r[b] + n < rhi) AND ALL of the PATH from the next place,"
+    Ledger.sentence("Part 3",
+        "LD: (rlo <= r[b] + n AND r[b] + n < rhi) AND ALL of the PATH from the next place,"
         + " r[a] being the variable");
     for (int a : new int[] {0, 3, 7}) {
       pathOf("LD " + a, Wire.ld(a, 3, 21), Wire.and(within(0, 256, Wire.plus(r[3], Wire.num(21))),
@@ -169,13 +173,15 @@ public final class Part3Obligation {
     Ledger.sentence("Part 3", "JMP: the claim of the MARK at n, at r");
     pathOf("JMP", Wire.jmp(2), ofAll(r));
     pathOf("JMP to another MARK", Wire.jmp(0), Wire.TRUE);
-    Ledger.sentence("Part 3", "JLT: (r[a] < r[b] IF-THEN that claim at r) AND (r[b] <= r[a] IF-THEN the PATH from"
+    Ledger.sentence("Part 3",
+        "JLT: (r[a] < r[b] IF-THEN that claim at r) AND (r[b] <= r[a] IF-THEN the PATH from"
         + " the next place)");
     pathOf("JLT", Wire.ins(9, 3, 6, 2), Wire.and(Wire.then(Wire.less(r[3], r[6]), ofAll(r)),
         Wire.then(Wire.atMost(r[6], r[3]), ofAll(r))));
     pathOf("JLT to another MARK", Wire.ins(9, 0, 7, 0), Wire.and(Wire.then(Wire.less(r[0], r[7]), Wire.TRUE),
         Wire.then(Wire.atMost(r[7], r[0]), ofAll(r))));
-    Ledger.sentence("Part 3", "JLE, JEQ, JNE likewise, with r[a] <= r[b] and r[b] < r[a]; r[a] = r[b] and r[a] !="
+    Ledger.sentence("Part 3",
+        "JLE, JEQ, JNE likewise, with r[a] <= r[b] and r[b] < r[a]; r[a] = r[b] and r[a] !="
         + " r[b]; r[a] != r[b] and r[a] = r[b]");
     pathOf("JLE", Wire.ins(10, 3, 6, 2), Wire.and(Wire.then(Wire.atMost(r[3], r[6]), ofAll(r)),
         Wire.then(Wire.less(r[6], r[3]), ofAll(r))));
@@ -190,24 +196,28 @@ public final class Part3Obligation {
   }
 
   private static void nodes() {
-    Ledger.sentence("Part 3", "NODES: each number, variable, operation, relation, TRUE, AND, IF-THEN, ALL is one,"
+    Ledger.sentence("Part 3",
+        "NODES: each number, variable, operation, relation, TRUE, AND, IF-THEN, ALL is one,"
         + " wherever it stands");
     CodeHarbour x = Ledger.loads("HALT", 0, -1, Wire.code(0, Wire.HALT), 32);
     Ledger.due("TRUE is 1", x.told(1), 1);
     // A term of a register counts at every place of that register in a claim.
-    byte[] claim = Wire.all(Wire.and(Wire.less(Wire.reg(1), Wire.reg(1)), Wire.fits(Wire.var(0), Wire.reg(1))));
+    byte[] claim = Wire.all(Wire.and(Wire.less(Wire.reg(1), Wire.reg(1)), Wire.fits(Wire.var(0),
+        Wire.reg(1))));
     byte[] opening = Wire.join(Wire.code(1, Wire.addi(1, 1, 5), Wire.addi(1, 1, 6), Wire.mark(0), Wire.HALT),
         claim);
     x = Ledger.loads("a claim", 7, opening.length, opening, 99);
     // ALL, AND, <, FITS, a variable, three times a term of 5; then 8 ALL, IF-THEN, the claim with 3
     // variables, TRUE.
     Ledger.due("a claim at terms", x.told(1), 5 + 3 * 5 + 8 + 1 + 5 + 3 + 1);
-    Ledger.sentence("Part 3", "The PATH ends at JMP, HALT, TRAP and MARK: what no PATH comes to is not in it");
+    Ledger.sentence("Part 3",
+        "The PATH ends at JMP, HALT, TRAP and MARK: what no PATH comes to is not in it");
     x = Ledger.loads("behind a HALT", 0, -1, Wire.code(0, Wire.HALT, Wire.ld(0, 0, 999), Wire.HALT), 32);
     Ledger.due("NODES", x.told(1), 1);
     x = Ledger.loads("behind a TRAP", 0, -1, Wire.code(0, Wire.trap(1), Wire.st(0, 0, -1), Wire.HALT), 32);
     Ledger.due("NODES", x.told(1), 1);
-    x = Ledger.loads("behind a JMP", 0, -1, Wire.code(1, Wire.mark(0), Wire.jmp(0), Wire.ld(0, 0, 999), Wire.HALT),
+    x = Ledger.loads("behind a JMP", 0, -1, Wire.code(1, Wire.mark(0), Wire.jmp(0), Wire.ld(0, 0, 999),
+        Wire.HALT),
         Wire.TRUE, 32, Wire.PART_OF_TRUE);
     Ledger.due("NODES", x.told(1), 12);
     x = Ledger.loads("claims of no MARK", 0, -1, Wire.code(2, Wire.HALT), claim, claim, 32);

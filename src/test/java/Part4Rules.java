@@ -145,7 +145,8 @@ public final class Part4Rules {
   private static void reckoning() {
     Ledger.sentence("Part 4", "36 RECKON: W is a relation, with no variable in it, and holds");
     String[] signs = {"<", "<=", "=", "!="};
-    boolean[][] holds = {{true, false, false}, {true, true, false}, {false, true, false}, {true, false, true}};
+    boolean[][] holds = {{true, false, false}, {true, true, false}, {false, true, false}, {true, false,
+        true}};
     for (int s = 0; s < 4; s++) {
       for (int v = -1; v <= 1; v++) {
         reckons(v + " " + signs[s] + " 0", holds[s][v + 1]);
@@ -162,14 +163,16 @@ public final class Part4Rules {
     reckons("10 - (3 - 2) = 9", true);
     reckons("2 * 3 - 4 * 5 + (7 - 1) = 5 * (2 - 2) - 8", true);
     reckons("1 FITS 1", true);
-    refuses(36, t(), "x = x", "x <= x", "0 * x = 0 * x", "0 = x - x", "1 FITS x", "x FITS 0", "0 < 1 + x * 0");
+    refuses(36, t(), "x = x", "x <= x", "0 * x = 0 * x", "0 = x - x", "1 FITS x", "x FITS 0",
+        "0 < 1 + x * 0");
     refusesFormulas(36, NONE, Wire.TRUE, AN_AND, AN_IF, AN_ALL, Wire.and(f("1 = 1"), f("1 = 1")),
         Wire.all(f("1 = 1")));
     Ledger.sentence("Part 4", "37 SAME: W is x = x");
     rule(37, "x = x", t());
     rule(37, "x + 2 * y = x + 2 * y", t());
     rule(37, "7 = 7", t());
-    refuses(37, t(), "x = y", "x <= x", "x != x", "x < x", "x FITS x", "x + y = y + x", "1 + 1 = 2", "x = x + 0");
+    refuses(37, t(), "x = y", "x <= x", "x != x", "x < x", "x FITS x", "x + y = y + x", "1 + 1 = 2",
+        "x = x + 0");
     refusesFormulas(37, NONE, Wire.TRUE, AN_AND, Wire.all(f("x = x")));
     Ledger.sentence("Part 4", "55 SELF: W is x <= x");
     rule(55, "x <= x", t());
@@ -192,7 +195,8 @@ public final class Part4Rules {
   }
 
   private static void putting() {
-    Ledger.sentence("Part 4", "38 PUT F x y p q: F is a formula within one more binder, a variable; W is F with y for"
+    Ledger.sentence("Part 4",
+        "38 PUT F x y p q: F is a formula within one more binder, a variable; W is F with y for"
         + " it; p shows x = y, q F with x for it");
     // Within PUT's own binder and two hypotheses: z is called by 3 + 1 + 2.
     byte[] below = Wire.less(Wire.var(0), Wire.var(6));
@@ -219,7 +223,8 @@ public final class Part4Rules {
     put("within ALL, another q", 8, 2, overY, allBelow, "x", "y", "x = y", overY);
     put("of no relation", 0, 0, Wire.TRUE, Wire.TRUE, "x", "y", "x = y", Wire.TRUE);
     put("F is W with its places", 0, 0, Wire.then(f("y = z"), f("z = y")),
-        Wire.then(Wire.equal(Wire.var(0), Wire.var(6)), Wire.equal(Wire.var(6), Wire.var(0))), "x", "y", "x = y",
+        Wire.then(Wire.equal(Wire.var(0), Wire.var(6)), Wire.equal(Wire.var(6), Wire.var(0))), "x", "y",
+        "x = y",
         Wire.then(f("x = z"), f("z = x")));
   }
 
@@ -262,25 +267,31 @@ public final class Part4Rules {
   }
 
   private static void shiftRules() {
-    Ledger.sentence("Part 4", "45 SHIFT t p q r s: W is x + k <= y + k; p shows x <= y, q y <= t, r x FITS k, s t"
+    Ledger.sentence("Part 4",
+        "45 SHIFT t p q r s: W is x + k <= y + k; p shows x <= y, q y <= t, r x FITS k, s t"
         + " FITS k");
     rule(45, "x + k <= y + k", t("t"), "x <= y", "y <= t", "x FITS k", "t FITS k");
     rule(45, "x * 2 + (k - 1) <= y - 3 + (k - 1)", t("t * t"), "x * 2 <= y - 3", "y - 3 <= t * t",
         "x * 2 FITS (k - 1)", "t * t FITS (k - 1)");
-    refuses(45, t("t"), "x + k <= y + t", "x + k < y + k", "x + k = y + k", "x + k != y + k", "x + k FITS y + k",
-        "k + x <= k + y", "x - k <= y - k", "x * k <= y * k", "x + k <= y - k", "x - k <= y + k", "x + k <= y",
+    refuses(45, t("t"), "x + k <= y + t", "x + k < y + k", "x + k = y + k", "x + k != y + k",
+        "x + k FITS y + k",
+        "k + x <= k + y", "x - k <= y - k", "x * k <= y * k", "x + k <= y - k", "x - k <= y + k",
+        "x + k <= y",
         "x <= y + k", "x + 1 <= y + (0 + 1)", "x + 1 <= y + 2", "x + k <= k + y", "x <= y");
-    Ledger.sentence("Part 4", "46 SHIFT t p q r s: W is y + k < x + k; p shows t <= y, q y < x, r t FITS k, s x FITS"
+    Ledger.sentence("Part 4",
+        "46 SHIFT t p q r s: W is y + k < x + k; p shows t <= y, q y < x, r t FITS k, s x FITS"
         + " k");
     rule(46, "y + k < x + k", t("t"), "t <= y", "y < x", "t FITS k", "x FITS k");
     rule(46, "y - 1 + k * 2 < x * x + k * 2", t("t - 5"), "t - 5 <= y - 1", "y - 1 < x * x",
         "t - 5 FITS (k * 2)", "x * x FITS (k * 2)");
-    refuses(46, t("t"), "y + k < x + t", "y + k <= x + k", "y + k = x + k", "y + k != x + k", "y + k FITS x + k",
+    refuses(46, t("t"), "y + k < x + t", "y + k <= x + k", "y + k = x + k", "y + k != x + k",
+        "y + k FITS x + k",
         "k + y < k + x", "y - k < x - k", "y * k < x * k", "y + k < x - k", "y - k < x + k", "y + k < x",
         "y < x + k", "y + 1 < x + (0 + 1)", "y + 1 < x + 2", "y + k < k + x", "y < x");
     refusesFormulas(45, terms(0, "t"), Wire.TRUE, AN_AND);
     refusesFormulas(46, terms(0, "t"), Wire.TRUE, AN_IF);
-    Ledger.sentence("Part 4", "56 BETWEEN t u p q r s: W is y FITS k; p shows t <= y, q y <= u, r t FITS k, s u FITS"
+    Ledger.sentence("Part 4",
+        "56 BETWEEN t u p q r s: W is y FITS k; p shows t <= y, q y <= u, r t FITS k, s u FITS"
         + " k");
     rule(56, "y FITS k", t("t", "u"), "t <= y", "y <= u", "t FITS k", "u FITS k");
     rule(56, "y * 2 FITS k - x", t("t + 1", "u - 1"), "t + 1 <= y * 2", "y * 2 <= u - 1", "t + 1 FITS k - x",
@@ -294,18 +305,21 @@ public final class Part4Rules {
     rule(47, "(x + y) + z = x + (y + z)", NO_TERMS);
     rule(47, "(1 + 2) + 3 = 1 + (2 + 3)", NO_TERMS);
     rule(47, "(x + x) + x = x + (x + x)", NO_TERMS);
-    refuses(47, NO_TERMS, "x + (y + z) = (x + y) + z", "(x + y) + z = x + (z + y)", "(x + y) + z = y + (x + z)",
+    refuses(47, NO_TERMS, "x + (y + z) = (x + y) + z", "(x + y) + z = x + (z + y)",
+        "(x + y) + z = y + (x + z)",
         "(x + y) + z = (x + y) + z", "(x + y) + z = x + (y + k)", "(x + y) + z = x + (k + z)",
         "(x + y) + z = k + (y + z)", "(x - y) + z = x - (y + z)", "(x - y) + z = x + (y + z)",
         "(x + y) - z = x + (y + z)", "(x + y) + z = x + (y - z)", "(x + y) + z = x * (y + z)",
-        "(x + y) + z <= x + (y + z)", "(x + y) + z != x + (y + z)", "(x * y) * z = x * (y * z)", "x + y = x + y",
+        "(x + y) + z <= x + (y + z)", "(x + y) + z != x + (y + z)", "(x * y) * z = x * (y * z)",
+        "x + y = x + y",
         "(x + y) + z < x + (y + z)", "(x + y) + z FITS x + (y + z)");
     Ledger.sentence("Part 4", "48: W is x + y = y + x");
     rule(48, "x + y = y + x", NO_TERMS);
     rule(48, "x + x = x + x", NO_TERMS);
     rule(48, "x * y + (1 - z) = (1 - z) + (x * y)", NO_TERMS);
     refuses(48, NO_TERMS, "x + y = x + y", "x + y = y + z", "x + y = z + x", "x - y = y - x", "x * y = y * x",
-        "x + y = y - x", "x - y = y + x", "x + y != y + x", "x + y <= y + x", "x + y < y + x", "x + y FITS y + x",
+        "x + y = y - x", "x - y = y + x", "x + y != y + x", "x + y <= y + x", "x + y < y + x",
+        "x + y FITS y + x",
         "x = x");
     Ledger.sentence("Part 4", "49: W is (x - y) + y = x");
     rule(49, "(x - y) + y = x", NO_TERMS);
@@ -357,7 +371,8 @@ public final class Part4Rules {
     byte[] turned = terms(2, "u", "t");
     Ledger.fails("u and t", 8, p + 3, w, OPEN, 34, 34, 53, turned, 67, 64, 2, 64, 0, 67, 64, 1, 64, 0);
     Ledger.fails("p shows another one", 8, p, w, OPEN, 34, 34, 53, read, 64, 0, 67, 64, 1, 64, 0);
-    Ledger.shows("CASES of a formula", Wire.all(MANY, Wire.then(AN_AND, AN_AND)), OPEN, 34, 53, terms(1, "t", "u"),
+    Ledger.shows("CASES of a formula", Wire.all(MANY, Wire.then(AN_AND, AN_AND)), OPEN, 34, 53, terms(1, "t",
+        "u"),
         64, 1, 64, 1);
   }
 
@@ -377,7 +392,8 @@ public final class Part4Rules {
     Ledger.fails("all of it is not A", 8, MANY + 1, left, OPEN, 34, 64, 0);
     for (int tag = 65; tag <= 66; tag++) {
       for (byte[] a : new byte[][] {Wire.TRUE, AN_IF, AN_ALL, X_IS_Y}) {
-        Ledger.fails(tag + " of no AND", 8, MANY + 1, Wire.all(MANY, Wire.then(a, X_IS_Y)), OPEN, 34, tag, 64, 0);
+        Ledger.fails(tag + " of no AND", 8, MANY + 1, Wire.all(MANY, Wire.then(a, X_IS_Y)), OPEN, 34, tag, 64,
+            0);
       }
     }
     byte[] nested = Wire.and(Wire.and(X_IS_Y, f("z = z")), Wire.and(Y_IS_Z, Wire.TRUE));
@@ -386,17 +402,22 @@ public final class Part4Rules {
     Ledger.sentence("Part 4", "67 THEN p q: p tells A IF-THEN B, q shows A; it tells B");
     byte[] then = whole(Y_IS_Z, List.of(AN_IF, X_IS_Y));
     Ledger.shows("THEN", then, OPEN, 34, 34, 67, 64, 1, 64, 0);
-    Ledger.fails("q shows another one", 8, MANY + 5, whole(Y_IS_Z, List.of(AN_IF, f("y = x"))), OPEN, 34, 34, 67,
+    Ledger.fails("q shows another one", 8, MANY + 5, whole(Y_IS_Z, List.of(AN_IF, f("y = x"))), OPEN, 34, 34,
+        67,
         64, 1, 64, 0);
-    Ledger.fails("it does not tell A", 8, MANY + 2, whole(X_IS_Y, List.of(AN_IF, X_IS_Y)), OPEN, 34, 34, 67, 64,
+    Ledger.fails("it does not tell A", 8, MANY + 2, whole(X_IS_Y, List.of(AN_IF, X_IS_Y)), OPEN, 34, 34, 67,
+        64,
         1, 64, 0);
-    Ledger.fails("it does not tell all of it", 8, MANY + 2, whole(AN_IF, List.of(AN_IF, X_IS_Y)), OPEN, 34, 34, 67,
+    Ledger.fails("it does not tell all of it", 8, MANY + 2, whole(AN_IF, List.of(AN_IF, X_IS_Y)), OPEN, 34,
+        34, 67,
         64, 1, 64, 0);
     for (byte[] a : new byte[][] {Wire.TRUE, AN_AND, AN_ALL, X_IS_Y}) {
-      Ledger.fails("THEN of no IF-THEN", 8, MANY + 1, Wire.all(MANY, Wire.then(a, Y_IS_Z)), OPEN, 34, 67, 64, 0,
+      Ledger.fails("THEN of no IF-THEN", 8, MANY + 1, Wire.all(MANY, Wire.then(a, Y_IS_Z)), OPEN, 34, 67, 64,
+          0,
           99);
     }
-    Ledger.shows("q is shown by any rule", whole(Y_IS_Z, List.of(Wire.then(f("1 < 2"), Y_IS_Z))), OPEN, 34, 67, 64,
+    Ledger.shows("q is shown by any rule", whole(Y_IS_Z, List.of(Wire.then(f("1 < 2"), Y_IS_Z))), OPEN, 34,
+        67, 64,
         0, 36);
   }
 
@@ -405,31 +426,39 @@ public final class Part4Rules {
     byte[] every = Wire.all(Wire.less(Wire.var(0), Wire.plus(Wire.var(0), Wire.var(6))));
     byte[] read = terms(1, "t - 2");
     Ledger.shows("FOR", whole(f("t - 2 < t - 2 + x"), List.of(every)), OPEN, 34, 68, read, 64, 0);
-    Ledger.fails("another term", 8, MANY + 1, whole(f("t - 2 < t - 1 + x"), List.of(every)), OPEN, 34, 68, read,
+    Ledger.fails("another term", 8, MANY + 1, whole(f("t - 2 < t - 1 + x"), List.of(every)), OPEN, 34, 68,
+        read,
         64, 0);
-    Ledger.fails("another letter", 8, MANY + 1, whole(f("t - 2 < t - 2 + y"), List.of(every)), OPEN, 34, 68, read,
+    Ledger.fails("another letter", 8, MANY + 1, whole(f("t - 2 < t - 2 + y"), List.of(every)), OPEN, 34, 68,
+        read,
         64, 0);
     for (byte[] a : new byte[][] {Wire.TRUE, AN_AND, AN_IF, X_IS_Y}) {
-      Ledger.fails("FOR of no ALL", 8, MANY + 1, Wire.all(MANY, Wire.then(a, Y_IS_Z)), OPEN, 34, 68, terms(1, "t"),
+      Ledger.fails("FOR of no ALL", 8, MANY + 1, Wire.all(MANY, Wire.then(a, Y_IS_Z)), OPEN, 34, 68, terms(1,
+          "t"),
           64, 0);
     }
     // ALL a ALL b (a < b): the outermost is the one that is put first.
     byte[] two = Wire.all(2, Wire.less(Wire.var(1), Wire.var(0)));
-    Ledger.shows("two FORs", whole(f("x < y"), List.of(two)), OPEN, 34, 68, terms(1, "y"), 68, terms(1, "x"), 64,
+    Ledger.shows("two FORs", whole(f("x < y"), List.of(two)), OPEN, 34, 68, terms(1, "y"), 68, terms(1, "x"),
+        64,
         0);
-    Ledger.fails("in their order", 8, MANY + 1, whole(f("x < y"), List.of(two)), OPEN, 34, 68, terms(1, "x"), 68,
+    Ledger.fails("in their order", 8, MANY + 1, whole(f("x < y"), List.of(two)), OPEN, 34, 68, terms(1, "x"),
+        68,
         terms(1, "y"), 64, 0);
     byte[] overX = Wire.all(Wire.less(Wire.var(6), Wire.var(0)));
     Ledger.shows("ALL within ALL", whole(overX, List.of(two)), OPEN, 34, 68, terms(1, "x"), 64, 0);
     // The term is not caught by the ALL that it comes to stand in.
     byte[] caught = Wire.all(Wire.less(Wire.var(0), Wire.var(0)));
-    Ledger.fails("nothing is caught", 8, MANY + 1, whole(caught, List.of(two)), OPEN, 34, 68, terms(1, "u"), 64, 0);
+    Ledger.fails("nothing is caught", 8, MANY + 1, whole(caught, List.of(two)), OPEN, 34, 68, terms(1, "u"),
+        64, 0);
   }
 
   private static void binders() {
-    Ledger.sentence("Part 4", "HYPOTHESES and variables are called by how many binders stand between, of either sort"
+    Ledger.sentence("Part 4",
+        "HYPOTHESES and variables are called by how many binders stand between, of either sort"
         + " (0: the innermost)");
-    // ALL a (a = a IF-THEN ALL b (b = b IF-THEN W)): behind 35 34 35 34 a is 3, b is 1; 2 and 0 are hypotheses.
+    // ALL a (a = a IF-THEN ALL b (b = b IF-THEN W)): behind 35 34 35 34 a is 3 and b is 1;
+    // 2 and 0 are hypotheses.
     byte[] ofOne = Wire.equal(Wire.var(0), Wire.var(0));
     for (int i = 0; i < 5; i++) {
       boolean isVariable = i == 1 || i == 3;
@@ -444,8 +473,10 @@ public final class Part4Rules {
         Ledger.fails("5 " + i, 7, 5, w, 35, 34, 35, 34, 52, Wire.var(i), 99);
       }
     }
-    byte[] outer = Wire.all(Wire.then(ofOne, Wire.all(Wire.then(ofOne, Wire.equal(Wire.var(1), Wire.var(1))))));
-    byte[] inner = Wire.all(Wire.then(ofOne, Wire.all(Wire.then(ofOne, Wire.equal(Wire.var(0), Wire.var(0))))));
+    byte[] outer = Wire.all(Wire.then(ofOne, Wire.all(Wire.then(ofOne, Wire.equal(Wire.var(1),
+        Wire.var(1))))));
+    byte[] inner = Wire.all(Wire.then(ofOne, Wire.all(Wire.then(ofOne, Wire.equal(Wire.var(0),
+        Wire.var(0))))));
     Ledger.shows("the outer hypothesis", outer, 35, 34, 35, 34, 64, 2);
     Ledger.fails("the outer one is not the inner", 8, 4, inner, 35, 34, 35, 34, 64, 2);
     Ledger.shows("the inner hypothesis", inner, 35, 34, 35, 34, 64, 0);
@@ -453,16 +484,20 @@ public final class Part4Rules {
     byte[] w = Wire.all(Wire.equal(Wire.var(0), Wire.var(0)));
     Ledger.fails("behind CASES the variable is 1", 7, 1 + 1 + 4 + 1, w, 35, 53, Wire.var(0), Wire.var(0), 52,
         Wire.var(0), 99);
-    Ledger.fails("and 1 in its second, too", 7, 1 + 1 + 4 + 1 + 1, w, 35, 53, Wire.var(0), Wire.var(0), 37, 52,
+    Ledger.fails("and 1 in its second, too", 7, 1 + 1 + 4 + 1 + 1, w, 35, 53, Wire.var(0), Wire.var(0), 37,
+        52,
         Wire.var(0), 99);
     Ledger.shows("so it is", w, 35, 53, Wire.var(0), Wire.var(0), 52, Wire.var(1), 64, 0, 37);
     Ledger.fails("behind CASES its hypothesis is gone", 7, 1 + 1 + 1 + 4 + 2, Wire.and(w, Wire.TRUE), 33, 35,
         53, Wire.var(0), Wire.var(0), 37, 37, 64, 0);
-    Ledger.fails("behind IF its hypothesis is gone", 7, 3, Wire.and(Wire.then(Wire.TRUE, Wire.TRUE), Wire.TRUE), 33,
+    Ledger.fails("behind IF its hypothesis is gone", 7, 3, Wire.and(Wire.then(Wire.TRUE, Wire.TRUE),
+        Wire.TRUE), 33,
         34, 32, 64, 0);
-    Ledger.fails("behind ANY its variable is gone", 7, 4, Wire.and(w, Wire.TRUE), 33, 35, 37, 52, Wire.var(0), 99);
+    Ledger.fails("behind ANY its variable is gone", 7, 4, Wire.and(w, Wire.TRUE), 33, 35, 37, 52, Wire.var(0),
+        99);
     Ledger.fails("a PART has no binder of another one", 7, 1, Wire.then(Wire.TRUE, Wire.TRUE), 34, 64, 1);
-    Ledger.loads("PART 1 begins with none", 7, Wire.showingAt(w) + 2, Wire.upTo(Wire.showing(w, 35, 37, 64, 0),
+    Ledger.loads("PART 1 begins with none", 7, Wire.showingAt(w) + 2, Wire.upTo(Wire.showing(w, 35, 37, 64,
+        0),
         Wire.showingAt(w) + 4));
   }
 

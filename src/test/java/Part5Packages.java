@@ -8,7 +8,8 @@ public final class Part5Packages {
   /** A package that comes in, with every kind of byte in it. */
   private static byte[] whole() {
     byte[] claim0 = Wire.and(Wire.atMost(Wire.num(0), Wire.reg(1)), Wire.less(Wire.reg(1), Wire.num(9)));
-    byte[] claim1 = Wire.all(Wire.then(Wire.less(Wire.var(0), Wire.reg(1)), Wire.less(Wire.var(0), Wire.reg(1))));
+    byte[] claim1 = Wire.all(Wire.then(Wire.less(Wire.var(0), Wire.reg(1)), Wire.less(Wire.var(0),
+        Wire.reg(1))));
     // What no MARK has is read, too.
     byte[] claim2 = Wire.and(Wire.TRUE, Wire.then(Wire.equal(Wire.reg(7), Wire.num(-1)), Wire.all(Wire.and(
         Wire.unequal(Wire.plus(Wire.var(0), Wire.num(1)), Wire.minus(Wire.reg(0), Wire.num(2))),
@@ -58,7 +59,8 @@ public final class Part5Packages {
       Ledger.loads("first byte " + first, 2, 0, first);
       Ledger.loads("first byte " + first, 2, 0, first, 0, 1, 0, 0, Wire.HALT, 32);
     }
-    Ledger.sentence("Part 5", "how many instructions there are (2 bytes, the highest first), 1 to 1000; 2 HEAD:"
+    Ledger.sentence("Part 5",
+        "how many instructions there are (2 bytes, the highest first), 1 to 1000; 2 HEAD:"
         + " instructions (1)");
     Ledger.loads("0", 2, 1, 80, 0, 0);
     Ledger.loads("0, and more", 2, 1, 80, 0, 0, 0, 0, 32);
@@ -69,14 +71,16 @@ public final class Part5Packages {
     Ledger.loads("32768", 2, 1, 80, 128, 0);
     Ledger.loads("65535", 2, 1, 80, 255, 255);
     Ledger.loads("256 in the lower byte", 1, 12, 80, 1, 0, 0, 0, Wire.HALT);
-    CodeHarbour x = Ledger.loads("1000", 0, -1, Wire.head(1000, 0), Wire.times(999, Wire.li(7, 3)), Wire.HALT, 32);
+    CodeHarbour x = Ledger.loads("1000", 0, -1, Wire.head(1000, 0), Wire.times(999, Wire.li(7, 3)), Wire.HALT,
+        32);
     Ledger.due("told(0)", x.told(0), 1000);
     Ledger.due("run()", x.run(1000), 1);
     Ledger.due("steps()", x.steps(), 1000);
     Ledger.sentence("Part 5", "how many claims (2), at most 1000; 2 HEAD: claims (3)");
     Ledger.loads("0", 0, -1, Wire.head(1, 0), Wire.HALT, 32);
     Ledger.loads("1000", 0, -1, Wire.head(1, 1000), Wire.HALT, Wire.times(1000, 16), 32);
-    Ledger.loads("the last one of 1000 is wanted", 4, 12 + 999, Wire.head(1, 1000), Wire.HALT, Wire.times(999, 16),
+    Ledger.loads("the last one of 1000 is wanted", 4, 12 + 999, Wire.head(1, 1000), Wire.HALT, Wire.times(999,
+        16),
         32);
     Ledger.loads("1001", 2, 3, Wire.head(1, 1001));
     Ledger.loads("1001, and more", 2, 3, Wire.head(1, 1001), Wire.HALT, Wire.times(1001, 16), 32);
@@ -98,7 +102,8 @@ public final class Part5Packages {
   }
 
   /** For each op what is named with it. */
-  private static final String[] NAMED = {"an", "ab", "abc", "abc", "abc", "abn", "abn", "abn", "n", "abn", "abn",
+  private static final String[] NAMED = {"an", "ab", "abc", "abc", "abc", "abn", "abn", "abn", "n", "abn",
+      "abn",
     "abn", "abn", "", "n", "n"};
 
   /** An n with which the instruction is well, where there is a choice. */
@@ -114,13 +119,16 @@ public final class Part5Packages {
     Ledger.sentence("Part 5", "3 CODE: a register above 7; what is not named with an op must be 0");
     for (int op = 0; op < 16; op++) {
       for (int a : new int[] {1, 7, 8, 128, 255}) {
-        instruction("op " + op + ", a " + a, NAMED[op].contains("a") && a <= 7, Wire.ins(op, a, 0, someN(op)));
-        instruction("op " + op + ", b " + a, NAMED[op].contains("b") && a <= 7, Wire.ins(op, 0, a, someN(op)));
+        instruction("op " + op + ", a " + a, NAMED[op].contains("a") && a <= 7, Wire.ins(op, a, 0,
+            someN(op)));
+        instruction("op " + op + ", b " + a, NAMED[op].contains("b") && a <= 7, Wire.ins(op, 0, a,
+            someN(op)));
       }
       for (int n : new int[] {-1, 1, 7, 8, 256, 65536, 16777216, Wire.LEAST, Wire.MOST}) {
         boolean free = op == 0 || op == 5 || op == 6 || op == 7;
         boolean register = op >= 2 && op <= 4;
-        instruction("op " + op + ", n " + n, free || register && n >= 0 && n <= 7 || op == 14 && n >= 1 && n <= 99,
+        instruction("op " + op + ", n " + n,
+            free || register && n >= 0 && n <= 7 || op == 14 && n >= 1 && n <= 99,
             Wire.ins(op, 0, 0, n));
       }
     }
@@ -129,26 +137,31 @@ public final class Part5Packages {
       instruction("TRAP " + n, n >= 1 && n <= 99, Wire.trap(n));
     }
     Ledger.sentence("Part 5", "n (4, with sign)");
-    CodeHarbour x = Ledger.loads("LI", 0, -1, Wire.code(0, Wire.join(0, 0, 0, 255, 254, 253, 252), Wire.HALT), 32);
+    CodeHarbour x = Ledger.loads("LI", 0, -1, Wire.code(0, Wire.join(0, 0, 0, 255, 254, 253, 252), Wire.HALT),
+        32);
     x.run(2);
     Ledger.due("result()", x.result(), 0xfffefdfc);
-    Ledger.sentence("Part 5", "3 (place of the instruction's first byte; looked at when its seven are there)");
+    Ledger.sentence("Part 5",
+        "3 (place of the instruction's first byte; looked at when its seven are there)");
     for (int at = 0; at < 4; at++) {
       byte[][] code = {Wire.li(0, 1), Wire.li(0, 2), Wire.li(0, 3), Wire.HALT};
       code[at] = Wire.ins(16, 0, 0, 0);
       Ledger.loads("instruction " + at, 3, 5 + 7 * at, Wire.upTo(Wire.code(0, code), 5 + 7 * at + 7));
-      Ledger.loads("cut at instruction " + at, 1, 5 + 7 * at + 6, Wire.upTo(Wire.code(0, code), 5 + 7 * at + 6));
+      Ledger.loads("cut at instruction " + at, 1, 5 + 7 * at + 6, Wire.upTo(Wire.code(0, code), 5 + 7 * at
+          + 6));
     }
     Ledger.loads("the first one of two", 3, 5, Wire.code(0, Wire.li(8, 0), Wire.li(9, 0)));
   }
 
   private static void jumps() {
-    Ledger.sentence("Part 5", "When all instructions are there, 3 for each in order: n of a jump is the place of a"
+    Ledger.sentence("Part 5",
+        "When all instructions are there, 3 for each in order: n of a jump is the place of a"
         + " MARK");
     for (int op = 8; op <= 12; op++) {
       for (int n = -1; n <= 4; n++) {
         boolean well = n == 1 || n == 3;
-        byte[] opening = Wire.join(Wire.code(1, Wire.ins(op, 0, 0, n), Wire.mark(0), Wire.li(0, 0), Wire.mark(0),
+        byte[] opening = Wire.join(Wire.code(1, Wire.ins(op, 0, 0, n), Wire.mark(0), Wire.li(0, 0),
+            Wire.mark(0),
             Wire.HALT), 16);
         Ledger.loads("op " + op + " to " + n, well ? 7 : 3, well ? opening.length : 5, opening, 99);
       }
@@ -202,7 +215,8 @@ public final class Part5Packages {
     Ledger.sentence("Part 5", "4 (place of the tag): a register above 7");
     byte[] shown = {37};
     for (int i = 0; i < 8; i++) {
-      Ledger.loads("register " + i, 0, -1, MARKED, Wire.equal(Wire.reg(i), Wire.reg(i)), shown, Wire.PART_OF_TRUE);
+      Ledger.loads("register " + i, 0, -1, MARKED, Wire.equal(Wire.reg(i), Wire.reg(i)), shown,
+          Wire.PART_OF_TRUE);
     }
     for (int i : new int[] {8, 9, 128, 255}) {
       Ledger.loads("register " + i, 4, CLAIM + 1, MARKED, Wire.equal(Wire.reg(i), Wire.reg(0)), shown);
@@ -212,12 +226,14 @@ public final class Part5Packages {
     for (int binders = 0; binders < 4; binders++) {
       for (int i = 0; i < 5; i++) {
         byte[] claim = Wire.all(binders, Wire.equal(Wire.var(i), Wire.var(i)));
-        Ledger.loads(i + " within " + binders, i < binders ? 0 : 4, i < binders ? -1 : CLAIM + binders + 1, MARKED,
+        Ledger.loads(i + " within " + binders, i < binders ? 0 : 4, i < binders ? -1 : CLAIM + binders + 1,
+            MARKED,
             claim, Wire.times(binders, 35), 37, Wire.PART_OF_TRUE);
       }
     }
     Ledger.loads("255 within one", 4, CLAIM + 2, MARKED, Wire.all(Wire.equal(Wire.var(255), ZERO)));
-    Ledger.loads("behind its ALL", 4, CLAIM + 4, MARKED, Wire.and(Wire.all(Wire.TRUE), Wire.equal(Wire.var(0), ZERO)));
+    Ledger.loads("behind its ALL", 4, CLAIM + 4, MARKED, Wire.and(Wire.all(Wire.TRUE), Wire.equal(Wire.var(0),
+        ZERO)));
     Ledger.sentence("Part 5", "Claims, each a formula: all of them are read, whether a MARK has them or not");
     Ledger.loads("the second one", 4, CLAIM + 1, Wire.code(2, Wire.mark(0), Wire.HALT), 16, 99);
     Ledger.loads("of no MARK", 4, 12, Wire.code(1, Wire.HALT), 32, 32);
@@ -225,7 +241,8 @@ public final class Part5Packages {
   }
 
   private static void depths() {
-    Ledger.sentence("Part 5", "5 DEEP (place of the tag): more than 40 tags within one another (of one claim)");
+    Ledger.sentence("Part 5",
+        "5 DEEP (place of the tag): more than 40 tags within one another (of one claim)");
     Ledger.loads("40", 0, -1, MARKED, Wire.times(39, 19), 16, Wire.times(39, 35), 32, Wire.PART_OF_TRUE);
     Ledger.loads("41", 5, CLAIM + 40, MARKED, Wire.times(40, 19), 16);
     byte[] right = Wire.times(39, 17, 16);
@@ -238,9 +255,11 @@ public final class Part5Packages {
     byte[] terms = Wire.join(Wire.times(38, 2), ZERO, Wire.times(38, ZERO));
     Ledger.loads("40 with terms", 0, -1, MARKED, 22, terms, terms, 37, Wire.PART_OF_TRUE);
     Ledger.loads("41 with terms", 5, CLAIM + 40, MARKED, 22, 2, terms);
-    Ledger.loads("40 with terms on the right", 8, CLAIM + 6 + 38 * 6 + 5, MARKED, 22, ZERO, Wire.times(38, 4, ZERO),
+    Ledger.loads("40 with terms on the right", 8, CLAIM + 6 + 38 * 6 + 5, MARKED, 22, ZERO, Wire.times(38, 4,
+        ZERO),
         ZERO, 37);
-    Ledger.loads("41 with terms on the right", 5, CLAIM + 6 + 38 * 6 + 1, MARKED, 22, ZERO, Wire.times(39, 4, ZERO),
+    Ledger.loads("41 with terms on the right", 5, CLAIM + 6 + 38 * 6 + 1, MARKED, 22, ZERO, Wire.times(39, 4,
+        ZERO),
         ZERO);
     Ledger.loads("a register is a tag, too", 5, CLAIM + 40, MARKED, Wire.times(39, 19), 22, 6, 0, 6, 0);
     Ledger.loads("and so is a variable", 5, CLAIM + 40, MARKED, Wire.times(39, 19), 22, 5, 0, 5, 0);
@@ -255,16 +274,20 @@ public final class Part5Packages {
   }
 
   private static void derivationDepths() {
-    Ledger.sentence("Part 5", "5 DEEP: more than 40 tags within one another (of one term or formula in a derivation)");
+    Ledger.sentence("Part 5",
+        "5 DEEP: more than 40 tags within one another (of one term or formula in a derivation)");
     byte[] forty = Wire.join(Wire.times(39, 3), ZERO, Wire.times(39, ZERO));
     Ledger.fails("a term of 40", 8, 1 + forty.length, Wire.TRUE, 52, forty, 36);
     Ledger.fails("a term of 41", 5, 1 + 40, Wire.TRUE, 52, 3, forty, ZERO, 36);
     Ledger.fails("a second term of 40", 7, 1 + 5 + forty.length, Wire.TRUE, 53, ZERO, forty, 99);
     Ledger.fails("a second term of 41", 5, 1 + 5 + 40, Wire.TRUE, 53, ZERO, 3, forty, ZERO, 99);
-    Ledger.fails("a formula of 40", 7, 1 + 40 + 10 + 1, Wire.all(39, Wire.TRUE), 38, Wire.times(39, 19), 16, ZERO,
+    Ledger.fails("a formula of 40", 7, 1 + 40 + 10 + 1, Wire.all(39, Wire.TRUE), 38, Wire.times(39, 19), 16,
+        ZERO,
         ZERO, 37, 99);
-    Ledger.fails("a formula of 41", 5, 1 + 40, Wire.all(39, Wire.TRUE), 38, Wire.times(40, 19), 16, ZERO, ZERO);
-    Ledger.fails("what is within a derivation is not deeper", 8, 2 + forty.length, Wire.then(Wire.TRUE, Wire.TRUE),
+    Ledger.fails("a formula of 41", 5, 1 + 40, Wire.all(39, Wire.TRUE), 38, Wire.times(40, 19), 16, ZERO,
+        ZERO);
+    Ledger.fails("what is within a derivation is not deeper", 8, 2 + forty.length, Wire.then(Wire.TRUE,
+        Wire.TRUE),
         34, 52, forty, 36);
     Ledger.fails("no term at 41 is 5", 5, 1 + 40, Wire.TRUE, 52, Wire.times(40, 3), 99);
     Ledger.fails("no term at 40 is 7", 7, 1 + 39, Wire.TRUE, 52, Wire.times(39, 3), 99);
@@ -284,7 +307,8 @@ public final class Part5Packages {
     // A hypothesis of 158 ANDs: 34, 158 LEFTs and 64 are 160 tags within one another.
     byte[] deepAnd = Wire.join(Wire.times(30, 17), 16, Wire.times(30, 16));
     Ledger.shows("those that tell, 32 tags", Wire.then(deepAnd, Wire.TRUE), 34, Wire.times(30, 65), 64, 0);
-    Ledger.fails("those that tell count, too", 5, 160, Wire.then(deepAnd, Wire.TRUE), 34, Wire.times(159, 65), 64, 0);
+    Ledger.fails("those that tell count, too", 5, 160, Wire.then(deepAnd, Wire.TRUE), 34, Wire.times(159, 65),
+        64, 0);
     Ledger.fails("one less", 8, 159 - 31, Wire.then(deepAnd, Wire.TRUE), 34, Wire.times(158, 65), 64, 0);
     Ledger.loads("PART 1 has 160 of its own", 0, -1, MARKED, 16, open159, 32, Wire.times(159, 32),
         Wire.times(8, 35), 34, Wire.times(150, open), 32, Wire.times(150, 32));
@@ -309,15 +333,19 @@ public final class Part5Packages {
       Ledger.loads("199 by op " + op, 0, -1, Wire.head(16, 0), sum199, Wire.HALT, 32);
       Ledger.loads("201 by op " + op, 6, 0, Wire.head(17, 0), sum199, Wire.ins(op, 6, 5, 0), Wire.HALT, 32);
     }
-    Ledger.loads("it is never used", 6, 0, Wire.head(102, 0), Wire.times(100, Wire.addi(3, 3, 1)), Wire.li(3, 0),
+    Ledger.loads("it is never used", 6, 0, Wire.head(102, 0), Wire.times(100, Wire.addi(3, 3, 1)), Wire.li(3,
+        0),
         Wire.HALT, 32);
     Ledger.loads("LI makes it small again", 0, -1, Wire.head(192, 0), Wire.times(95, Wire.addi(3, 3, 1)),
         Wire.li(3, 0), Wire.times(95, Wire.addi(3, 3, 1)), Wire.HALT, 32);
-    Ledger.loads("a PATH of another PART begins anew", 0, -1, Wire.head(196, 1), Wire.times(97, Wire.addi(3, 3, 1)),
+    Ledger.loads("a PATH of another PART begins anew", 0, -1, Wire.head(196, 1), Wire.times(97, Wire.addi(3,
+        3, 1)),
         Wire.mark(0), Wire.times(97, Wire.addi(3, 3, 1)), Wire.HALT, 16, 32, Wire.PART_OF_TRUE);
-    Ledger.loads("in a PART of a MARK", 6, 0, Wire.head(102, 1), Wire.mark(0), Wire.times(100, Wire.addi(3, 3, 1)),
+    Ledger.loads("in a PART of a MARK", 6, 0, Wire.head(102, 1), Wire.mark(0), Wire.times(100, Wire.addi(3, 3,
+        1)),
         Wire.HALT, 16, 32, Wire.PART_OF_TRUE);
-    Ledger.loads("where no PATH comes to", 0, -1, Wire.head(122, 0), Wire.HALT, Wire.times(120, Wire.addi(3, 3, 1)),
+    Ledger.loads("where no PATH comes to", 0, -1, Wire.head(122, 0), Wire.HALT, Wire.times(120, Wire.addi(3,
+        3, 1)),
         Wire.HALT, 32);
     Ledger.loads("what is read is a variable", 0, -1, Wire.head(191, 0), Wire.times(94, Wire.addi(3, 3, 1)),
         Wire.ld(3, 0, 0), Wire.times(95, Wire.addi(3, 3, 1)), Wire.HALT, 33, 33, 36, 36, 35, 32);
@@ -338,7 +366,8 @@ public final class Part5Packages {
 
   /** PART 0: s. PART 1: 8 ALL, IF-THEN, s; j times JEQ 0 0: AND, 2 IF-THEN, 2 of 3, s; TRUE. */
   private static byte[] filling(int jumps, int size) {
-    return Wire.join(Wire.head(jumps + 2, 1), Wire.mark(0), Wire.times(jumps, Wire.ins(11, 0, 0, 0)), Wire.HALT,
+    return Wire.join(Wire.head(jumps + 2, 1), Wire.mark(0), Wire.times(jumps, Wire.ins(11, 0, 0, 0)),
+        Wire.HALT,
         wide(size));
   }
 
@@ -404,8 +433,10 @@ public final class Part5Packages {
     }
     Ledger.sentence("Part 5", "6 a register (1; in claims alone)");
     Ledger.fails("in a derivation", 7, 1, Wire.TRUE, 52, Wire.reg(0), 99);
-    Ledger.fails("in a formula of a derivation", 7, 2, Wire.TRUE, 38, Wire.equal(Wire.reg(0), ZERO), ZERO, ZERO);
-    Ledger.sentence("Part 5", "7: a variable that no binder binds, or that is a hypothesis; a hypothesis that is none");
+    Ledger.fails("in a formula of a derivation", 7, 2, Wire.TRUE, 38, Wire.equal(Wire.reg(0), ZERO), ZERO,
+        ZERO);
+    Ledger.sentence("Part 5",
+        "7: a variable that no binder binds, or that is a hypothesis; a hypothesis that is none");
     byte[] w = Wire.all(Wire.then(Wire.TRUE, Wire.TRUE));
     Ledger.fails("the variable", 7, 2 + 3, w, 35, 34, 52, Wire.var(1), 99);
     Ledger.fails("a hypothesis", 7, 2 + 1, w, 35, 34, 52, Wire.var(0), 99);
@@ -418,15 +449,19 @@ public final class Part5Packages {
     Ledger.fails("none far off", 7, 2, w, 35, 34, 64, 255);
     Ledger.fails("none at all", 7, 0, Wire.TRUE, 64, 0);
     // In the formula of a PUT its own binder is 0, and those of an ALL in it come ahead of it.
-    Ledger.fails("PUT's binder", 7, 2 + 1 + 5 + 2, w, 35, 34, 38, Wire.equal(Wire.var(0), Wire.var(2)), Wire.var(1),
+    Ledger.fails("PUT's binder", 7, 2 + 1 + 5 + 2, w, 35, 34, 38, Wire.equal(Wire.var(0), Wire.var(2)),
+        Wire.var(1),
         Wire.var(0));
-    Ledger.fails("a hypothesis in its formula", 7, 2 + 2, w, 35, 34, 38, Wire.equal(Wire.var(1), ZERO), ZERO, ZERO);
+    Ledger.fails("a hypothesis in its formula", 7, 2 + 2, w, 35, 34, 38, Wire.equal(Wire.var(1), ZERO), ZERO,
+        ZERO);
     Ledger.fails("none in its formula", 7, 2 + 2, w, 35, 34, 38, Wire.equal(Wire.var(3), ZERO), ZERO, ZERO);
-    Ledger.fails("within its ALL", 7, 2 + 3, w, 35, 34, 38, Wire.all(Wire.equal(Wire.var(2), ZERO)), ZERO, ZERO);
+    Ledger.fails("within its ALL", 7, 2 + 3, w, 35, 34, 38, Wire.all(Wire.equal(Wire.var(2), ZERO)), ZERO,
+        ZERO);
   }
 
   private static void shown() {
-    Ledger.sentence("Part 5", "8 SHOWN (place of the tag): behind its terms and formulas W is not as it must be");
+    Ledger.sentence("Part 5",
+        "8 SHOWN (place of the tag): behind its terms and formulas W is not as it must be");
     Ledger.fails("CHAIN of TRUE", 8, 0, Wire.TRUE, 40, ZERO, 99);
     Ledger.fails("its term goes first", 7, 1, Wire.TRUE, 40, 99);
     Ledger.fails("its second term goes first", 7, 6, Wire.TRUE, 56, ZERO, 99);
@@ -435,7 +470,8 @@ public final class Part5Packages {
     Ledger.loads("W goes ahead of its derivations' CUT", 8, CLAIM + 1, MARKED, 16, 40, ZERO);
     Ledger.fails("PUT's formula goes first", 7, 1, Wire.TRUE, 38, 99);
     Ledger.fails("PUT's terms go first", 7, 2, Wire.TRUE, 38, Wire.TRUE, 99);
-    Ledger.fails("PUT's second term goes first", 7, 1 + 8 + 5, Wire.TRUE, 38, Wire.equal(Wire.var(0), ZERO), ZERO, 99);
+    Ledger.fails("PUT's second term goes first", 7, 1 + 8 + 5, Wire.TRUE, 38, Wire.equal(Wire.var(0), ZERO),
+        ZERO, 99);
     Ledger.fails("the tag further in", 8, 2, Wire.and(Wire.TRUE, Wire.TRUE), 33, 32, 33);
     Ledger.sentence("Part 5", "8 SHOWN: behind its first derivation (65 to 68) that tells no such formula");
     byte[] none = Wire.then(Wire.TRUE, Wire.TRUE);
@@ -443,7 +479,8 @@ public final class Part5Packages {
       byte[] read = tag == 68 ? ZERO : NOTHING;
       Ledger.fails(tag + " of TRUE", 8, 1, none, 34, tag, read, 64, 0, 99);
       Ledger.fails(tag + ", its first derivation goes first", 7, 2 + read.length, none, 34, tag, read, 64, 9);
-      Ledger.loads(tag + ", its CUT goes first", 1, CLAIM + none.length + 3 + read.length, MARKED, none, 34, tag, read,
+      Ledger.loads(tag + ", its CUT goes first", 1, CLAIM + none.length + 3 + read.length, MARKED, none, 34,
+          tag, read,
           64);
       Ledger.fails(tag + " of one that tells, further in", 8, 2, none, 34, 65, tag, read, 64, 0, 99);
     }
@@ -454,7 +491,8 @@ public final class Part5Packages {
     Ledger.fails("65", 8, 1, Wire.then(Wire.and(one, Wire.TRUE), Wire.TRUE), 34, 65, 64, 0);
     Ledger.fails("66", 8, 1, Wire.then(Wire.and(Wire.TRUE, one), Wire.TRUE), 34, 66, 64, 0);
     Ledger.fails("67", 8, 1, Wire.then(Wire.then(Wire.TRUE, one), Wire.TRUE), 34, 67, 64, 0, 32);
-    Ledger.fails("67, its second one goes first", 8, 4, Wire.then(Wire.then(Wire.TRUE, one), Wire.TRUE), 34, 67, 64,
+    Ledger.fails("67, its second one goes first", 8, 4, Wire.then(Wire.then(Wire.TRUE, one), Wire.TRUE), 34,
+        67, 64,
         0, 36);
     Ledger.fails("68", 8, 1, Wire.then(Wire.all(one), Wire.TRUE), 34, 68, ZERO, 64, 0);
     Ledger.fails("what tells within another one may be anything", 8, 1, Wire.then(Wire.and(Wire.and(one, one),
@@ -470,7 +508,8 @@ public final class Part5Packages {
     Ledger.loads("PART 1 comes behind it", 7, CLAIM + 2, code, 16, 32, 99);
     // An object that has seen faults of all kinds takes a whole package as a new one does.
     CodeHarbour y = new CodeHarbour();
-    byte[][] faulty = {{}, {81}, Wire.code(0, Wire.li(8, 0)), Wire.join(code, 99), Wire.join(code, Wire.times(41, 19)),
+    byte[][] faulty = {{}, {81}, Wire.code(0, Wire.li(8, 0)), Wire.join(code, 99), Wire.join(code,
+        Wire.times(41, 19)),
       Wire.join(Wire.head(102, 0), Wire.times(101, Wire.addi(3, 3, 1)), Wire.HALT), Wire.join(code, 16, 99),
       Wire.join(code, 16, 36), Wire.join(code, 16, 32, Wire.PART_OF_TRUE, 7)};
     int[] places = {0, 0, 5, CLAIM, CLAIM + 40, 0, CLAIM + 1, CLAIM + 1, CLAIM + 12};

@@ -1,4 +1,5 @@
-/** Part 6 of the document, cells, DIRECT accesses and CODE, by numbers of instructions and steps, and results. */
+/** Part 6 of the document, cells, DIRECT accesses and CODE, by numbers of instructions and steps,
+    and results. */
 public final class Part6Code {
   private static final int LEAST = Wire.LEAST;
   private static final int MOST = Wire.MOST;
@@ -83,8 +84,10 @@ public final class Part6Code {
   }
 
   private static void accesses() {
-    Ledger.sentence("Part 6", "name [ e ], the arr from cell c on, of m: E(e, k), LI k+1 0, JLT k k+1 T, LI k+1 m, JLE k+1"
-        + " k T, LD k k c; name [ x ] = e: MARK, E(x, 0), LI 1 0, JLT 0 1 T, LI 1 m, JLE 1 0 T, E(e, 1), ST 1 0 c");
+    Ledger.sentence("Part 6",
+        "name [ e ], the arr from cell c on, of m: E(e, k), LI k+1 0, JLT k k+1 T, LI k+1 m, JLE k+1"
+        + " k T, LD k k c; name [ x ] = e: MARK, E(x, 0), LI 1 0, JLT 0 1 T, LI 1 m, JLE 1 0 T, E(e, 1),"
+        + " ST 1 0 c");
     reads(0, "0", 1, 1);
     reads(1, "1", 1, 1);
     reads(3, "3", 1, 1);
@@ -103,18 +106,21 @@ public final class Part6Code {
     Ledger.runs("arr a[64]; return a[64];", 8 + END, 2, 1, 8);
     // a[a[a[0]]] with 0 in all of them; a[0] - (a[1] - (a[2] - 4)) with 1, 2, 3.
     Ledger.runs("arr a[4]; return a[a[a[0]]];", 2 + 1 + 15 + END, 1, 0, 18);
-    Ledger.runs("arr a[4]; a[0] = 1; a[1] = 2; a[2] = 3; return a[0] - (a[1] - (a[2] - 4));", 24 + 24 + END, 1, -2, 48);
+    Ledger.runs("arr a[4]; a[0] = 1; a[1] = 2; a[2] = 3; return a[0] - (a[1] - (a[2] - 4));", 24 + 24 + END,
+        1, -2, 48);
     Ledger.runs("arr a[4]; a[a[0] + 1] = a[0] + 7; return a[1];", 1 + 8 + 4 + 8 + 1 + 8 + END, 1, 7, 30);
     // The index of what is put is looked at ahead of e.
     Ledger.runs("arr a[4]; a[4] = a[9];", 1 + 1 + 4 + 6 + 1 + END, 2, 1, 8);
   }
 
   private static void cells() {
-    Ledger.sentence("Part 6", "Cells are given in order, from wlo on: one for a var, as many as its number says for an arr");
+    Ledger.sentence("Part 6",
+        "Cells are given in order, from wlo on: one for a var, as many as its number says for an arr");
     for (int wlo : new int[] {0, 1, 10, 248}) {
       CodeHarbour x = new CodeHarbour();
       x.policy(0, 256, wlo, wlo + 8);
-      Ledger.source(x, "var a; arr b[3]; var c; arr d[2]; var e; a = 1; b[0] = 2; b[1] = 3; b[2] = 4; c = 5; d[0] = 6;"
+      Ledger.source(x, "var a; arr b[3]; var c; arr d[2]; var e; a = 1; b[0] = 2; b[1] = 3; b[2] = 4; c ="
+          + " 5; d[0] = 6;"
           + " d[1] = 7; e = 8;", 0, -1);
       Ledger.due("run()", x.run(1000), 1);
       for (int i = 0; i < 256; i++) {
@@ -136,7 +142,8 @@ public final class Part6Code {
     Ledger.due("cell 1", x.peek(1), 5);
   }
 
-  /** For bounds and an index, whether it is DIRECT; in the code E of the index takes so much, if it is not. */
+  /** For bounds and an index, whether it is DIRECT; in the code E of the index takes so much,
+      if it is not. */
   private static void direct(String low, String high, String index, int code, boolean isDirect) {
     String loop = "var u; arr b[3]; arr a[4]; for i = " + low + " .. " + high + " { ";
     String put = loop + "a[" + index + "] = 1; }";
@@ -147,7 +154,8 @@ public final class Part6Code {
   }
 
   private static void directness() {
-    Ledger.sentence("Part 6", "An access name [ e ] is DIRECT, if e is a loop variable alone, and lo and hi are not below 0"
+    Ledger.sentence("Part 6",
+        "An access name [ e ] is DIRECT, if e is a loop variable alone, and lo and hi are not below 0"
         + " and not above the arr's number");
     direct("0", "4", "i", 1, true);
     direct("0", "5", "i", 1, false);
@@ -160,7 +168,8 @@ public final class Part6Code {
     direct("- 1", "- 1", "i", 1, false);
     direct("- 1", "0", "i", 1, false);
     direct("- 100000", "100000", "i", 1, false);
-    Ledger.sentence("Part 6", "DIRECT: or with + or - a number behind it and nothing else, and lo and hi, so much more or"
+    Ledger.sentence("Part 6",
+        "DIRECT: or with + or - a number behind it and nothing else, and lo and hi, so much more or"
         + " less");
     direct("0", "3", "i + 1", 3, true);
     direct("0", "4", "i + 1", 3, false);
@@ -201,15 +210,18 @@ public final class Part6Code {
   private static void directRuns() {
     Ledger.sentence("Part 6", "DIRECT: LD k r c + (+ or - the number); DIRECT: MARK, E(e, 0), ST 0 r c + ..");
     // MARK, LI; each turn MARK, LI, JLE, then MARK, MOV, ST, then ADDI, JMP; then MARK, LI, JLE, MARK.
-    CodeHarbour x = Ledger.runs("var u; arr a[4]; for i = 0 .. 4 { a[i] = i; }", 11 + END, 1, 0, 2 + 4 * 8 + 4 + LAST_STEPS);
+    CodeHarbour x = Ledger.runs("var u; arr a[4]; for i = 0 .. 4 { a[i] = i; }", 11 + END, 1, 0, 2 + 4 * 8
+        + 4 + LAST_STEPS);
     for (int i = 0; i < 6; i++) {
       Ledger.due("cell " + i, x.peek(i), i >= 1 && i < 5 ? i - 1 : 0);
     }
-    x = Ledger.runs("var u; arr a[4]; for i = - 2 .. 2 { a[i + 2] = i; }", 11 + END, 1, 0, 2 + 4 * 8 + 4 + LAST_STEPS);
+    x = Ledger.runs("var u; arr a[4]; for i = - 2 .. 2 { a[i + 2] = i; }", 11 + END, 1, 0, 2 + 4 * 8 + 4
+        + LAST_STEPS);
     for (int i = 0; i < 6; i++) {
       Ledger.due("cell " + i, x.peek(i), i >= 1 && i < 5 ? i - 3 : 0);
     }
-    x = Ledger.runs("var u; arr a[4]; for i = 7 .. 11 { a[i - 7] = i; }", 11 + END, 1, 0, 2 + 4 * 8 + 4 + LAST_STEPS);
+    x = Ledger.runs("var u; arr a[4]; for i = 7 .. 11 { a[i - 7] = i; }", 11 + END, 1, 0, 2 + 4 * 8 + 4
+        + LAST_STEPS);
     for (int i = 0; i < 6; i++) {
       Ledger.due("cell " + i, x.peek(i), i >= 1 && i < 5 ? i + 6 : 0);
     }
@@ -223,15 +235,18 @@ public final class Part6Code {
     Ledger.source(x, "var u; arr a[4]; for i = - 3 .. 1 { return a[i + 3]; }", 0, -1);
     x.run(100);
     Ledger.due("a[- 3 + 3]", x.result(), 51);
-    Ledger.sentence("Part 6", "it lies in register 5, in a for within a for 6, then 7; lo and hi are its bounds");
-    x = Ledger.well("arr a[2]; arr b[3]; arr c[4]; var n; for i = 0 .. 2 { for j = 0 .. 3 { for k = 0 .. 4 { a[i] = 100 + i;"
+    Ledger.sentence("Part 6",
+        "it lies in register 5, in a for within a for 6, then 7; lo and hi are its bounds");
+    x = Ledger.well("arr a[2]; arr b[3]; arr c[4]; var n; for i = 0 .. 2 { for j = 0 .. 3 { for k = 0 .."
+        + " 4 { a[i] = 100 + i;"
         + " b[j] = 200 + j; c[k] = 300 + k; n = n + 1; } } }");
     Ledger.due("run()", x.run(20000), 1);
     int[] due = {100, 101, 200, 201, 202, 300, 301, 302, 303, 24};
     for (int i = 0; i < due.length; i++) {
       Ledger.due("cell " + i, x.peek(i), due[i]);
     }
-    x = Ledger.well("var s; for i = 1 .. 3 { for j = 4 .. 6 { for k = 7 .. 9 { s = s * 3 + i * 100 + j * 10 + k; } } }"
+    x = Ledger.well("var s; for i = 1 .. 3 { for j = 4 .. 6 { for k = 7 .. 9 { s = s * 3 + i * 100 + j *"
+        + " 10 + k; } } }"
         + " for k = 0 .. 2 { s = s + k; } return s;");
     Ledger.due("run()", x.run(20000), 1);
     int s = 0;
@@ -250,12 +265,14 @@ public final class Part6Code {
     String right = y < 0 ? "- 2147483647 - 1" : Integer.toString(y);
     int code = (x < 0 ? 5 : 1) + (y < 0 ? 5 : 1);
     // MARK, E, E, jump, (MARK, LI, HALT), JMP, MARK, (MARK, LI, HALT), MARK.
-    Ledger.runs("if (" + left + sign + right + ") { return 1; } else { return 2; }", 1 + code + 1 + 3 + 1 + 1 + 3 + 1 + END,
+    Ledger.runs("if (" + left + sign + right + ") { return 1; } else { return 2; }", 1 + code + 1 + 3 + 1 + 1
+        + 3 + 1 + END,
         1, holds ? 1 : 2, 1 + code + 1 + (holds ? 3 : 4));
   }
 
   private static void comparisons() {
-    Ledger.sentence("Part 6", "C(L), for each comparison: E(x, 0), E(y, 1), then for < JLE 1 0 L; <= JLT 1 0 L; == JNE 0 1 L;"
+    Ledger.sentence("Part 6",
+        "C(L), for each comparison: E(x, 0), E(y, 1), then for < JLE 1 0 L; <= JLT 1 0 L; == JNE 0 1 L;"
         + " != JEQ 0 1 L");
     int[][] pairs = {{1, 2}, {2, 2}, {3, 2}, {LEAST, MOST}, {MOST, LEAST}, {0, MOST}, {LEAST, 0}};
     for (int[] p : pairs) {
@@ -269,7 +286,8 @@ public final class Part6Code {
       boolean a = (i & 1) != 0;
       boolean b = (i & 2) != 0;
       boolean c = (i & 4) != 0;
-      String text = "if (" + (a ? "1<2" : "2<1") + " and " + (b ? "1==1" : "1==2") + " and " + (c ? "1!=2" : "1!=1")
+      String text = "if (" + (a ? "1<2" : "2<1") + " and " + (b ? "1==1" : "1==2") + " and "
+          + (c ? "1!=2" : "1!=1")
           + ") { return 1; } return 2;";
       int looked = !a ? 1 : !b ? 2 : 3;
       boolean all = a && b && c;
@@ -283,15 +301,19 @@ public final class Part6Code {
     Ledger.runs("if (1 < 2) {}", 7 + END, 1, 0, 6 + LAST_STEPS);
     Ledger.runs("if (2 < 1) {}", 7 + END, 1, 0, 6 + LAST_STEPS);
     Ledger.runs("if (1 < 2) {} else {}", 7 + END, 1, 0, 6 + LAST_STEPS);
-    Ledger.runs("var a; if (1 < 2) { a = 1; } else { a = 2; a = 3; } return a;", 7 + 12 + 4 + END, 1, 1, 4 + 4 + 2 + 4);
-    Ledger.runs("var a; if (2 < 1) { a = 1; } else { a = 2; a = 3; } return a;", 7 + 12 + 4 + END, 1, 3, 4 + 1 + 8 + 1 + 4);
+    Ledger.runs("var a; if (1 < 2) { a = 1; } else { a = 2; a = 3; } return a;", 7 + 12 + 4 + END, 1, 1, 4
+        + 4 + 2 + 4);
+    Ledger.runs("var a; if (2 < 1) { a = 1; } else { a = 2; a = 3; } return a;", 7 + 12 + 4 + END, 1, 3, 4
+        + 1 + 8 + 1 + 4);
     Ledger.sentence("Part 6", "while: L: MARK, C(N), block, JMP L, N: MARK");
     Ledger.runs("while (2 < 1) {}", 6 + END, 1, 0, 5 + LAST_STEPS);
     // MARK, LI, LD, LI, JLE; MARK, LI, LD, LI, ADD, LI, ST, JMP.
-    Ledger.runs("var n; while (n < 3) { n = n + 1; } return n;", 5 + 8 + 1 + 4 + END, 1, 3, 4 * 5 + 3 * 8 + 1 + 4);
+    Ledger.runs("var n; while (n < 3) { n = n + 1; } return n;", 5 + 8 + 1 + 4 + END, 1, 3, 4 * 5 + 3 * 8 + 1
+        + 4);
     CodeHarbour x = Ledger.well("while (1 < 2) {}");
     Ledger.due("run()", x.run(20000), 3);
-    Ledger.sentence("Part 6", "for: MARK, LI r lo, L: MARK, LI 0 hi, JLE 0 r N, block, ADDI r r 1, JMP L, N: MARK");
+    Ledger.sentence("Part 6",
+        "for: MARK, LI r lo, L: MARK, LI 0 hi, JLE 0 r N, block, ADDI r r 1, JMP L, N: MARK");
     Ledger.runs("for i = 0 .. 0 {}", 8 + END, 1, 0, 2 + 3 + 1 + LAST_STEPS);
     Ledger.runs("for i = 0 .. 1 {}", 8 + END, 1, 0, 2 + 5 + 3 + 1 + LAST_STEPS);
     Ledger.runs("for i = - 2 .. 1 {}", 8 + END, 1, 0, 2 + 3 * 5 + 3 + 1 + LAST_STEPS);
@@ -307,8 +329,10 @@ public final class Part6Code {
   private static void claims() {
     Ledger.sentence("Part 6", "The MARKS have claims with which the package comes in");
     String[] bodies = {
-      "a[i] = a[j + 1] + c[k];", "while (v < 2) { a[i] = v; v = v + 1; }", "if (a[i] < c[k]) { c[k] = 1; } else { a[j] = 2; }",
-      "if (1 < 2) { while (v < 2) { v = v + 1; a[i] = a[j]; } } a[j + 1] = c[k];", "v = a[c[k]]; a[v] = c[k];",
+      "a[i] = a[j + 1] + c[k];", "while (v < 2) { a[i] = v; v = v + 1; }",
+          "if (a[i] < c[k]) { c[k] = 1; } else { a[j] = 2; }",
+      "if (1 < 2) { while (v < 2) { v = v + 1; a[i] = a[j]; } } a[j + 1] = c[k];",
+      "v = a[c[k]]; a[v] = c[k];",
       "if (a[v] < a[i] and c[k] == a[j] and c[v] != a[i]) { a[i] = 1; }", "v = v + 1;", "return a[i] + c[k];",
     };
     int[][] policies = {{0, 256, 0, 256}, {0, 256, 200, 256}, {9, 30, 10, 30}, {3, 14, 3, 14}};
@@ -316,7 +340,8 @@ public final class Part6Code {
       for (int[] p : policies) {
         CodeHarbour x = new CodeHarbour();
         x.policy(p[0], p[1], p[2], p[3]);
-        String text = "arr a[4]; var v; arr c[6]; for i = 0 .. 4 { for j = 0 .. 3 { for k = 2 .. 6 { " + body + " } " + "a[j] = i; } "
+        String text = "arr a[4]; var v; arr c[6]; for i = 0 .. 4 { for j = 0 .. 3 { for k = 2 .. 6 { " + body
+            + " } " + "a[j] = i; } "
             + "for k = 1 .. 2 { " + "a[i] = c[k]; } " + "} for i = 0 .. 6 { c[i] = c[i] + 1; }";
         Ledger.source(x, text, 0, -1);
         int ends = x.run(20000);
@@ -332,7 +357,8 @@ public final class Part6Code {
         Ledger.due(text + ": watched steps()", x.steps(), steps);
       }
     }
-    Ledger.due("three fors and fors behind them", Ledger.well("for i = 0 .. 1 { for j = 0 .. 1 { for k = 0 .. 1 {} for k = 1 .. 2 {} }"
+    Ledger.due("three fors and fors behind them",
+        Ledger.well("for i = 0 .. 1 { for j = 0 .. 1 { for k = 0 .. 1 {} for k = 1 .. 2 {} }"
         + " for j = - 1 .. 5 {} } for i = 0 .. 1 {}").told(0), 6 * 8 + END);
   }
 

@@ -1,556 +1,693 @@
-import java.nio.charset.StandardCharsets;
+import java.math.BigInteger;
 
-/** For each promise of the document what it says, with answers that were reckoned by hand. */
+/** The promises 1 to 16 of the document, sentence by sentence, with answers that were reckoned by hand. */
 public final class Promises {
-  private static int wrong = 0;
-  private static String promise = "";
+  private static final int LEAST = Wire.LEAST;
+  private static final int MOST = Wire.MOST;
+  private static final byte[] HALTING = Wire.join(Wire.code(0, Wire.HALT), 32);
 
-  private static void due(String what, long got, long want) {
-    if (got != want) {
-      wrong++;
-      System.out.println(promise + ": " + what + " answered " + got + ", due is " + want);
-    }
+  /** One package for each FAULT, 0 for none; all have one instruction more than the one before. */
+  private static byte[] packageOf(int fault) {
+    byte[] code = Wire.join(Wire.times(fault + 1, Wire.li(0, fault)), Wire.HALT);
+    byte[] head = Wire.head(fault + 2, fault == 4 || fault == 5 ? 1 : 0);
+    return switch (fault) {
+      case 0 -> Wire.join(head, code, 32);
+      case 1 -> Wire.join(head, code);
+      case 2 -> Wire.join(79, head, code, 32);
+      case 3 -> Wire.join(head, Wire.times(fault + 1, Wire.li(0, fault)), Wire.trap(100), 32);
+      case 4 -> Wire.join(head, code, 99);
+      case 5 -> Wire.join(head, code, Wire.times(41, 19));
+      case 6 -> Wire.join(Wire.head(102, 0), Wire.times(101, Wire.addi(0, 0, 1)), Wire.HALT, 32);
+      case 7 -> Wire.join(head, code, 99);
+      case 8 -> Wire.join(head, code, 36);
+      default -> Wire.join(head, code, 32, 32);
+    };
   }
 
-  private static void bring(CodeHarbour x, byte[] bytes) {
-    for (int at = 0; at < bytes.length; at += 20) {
-      int[] five = new int[5];
-      for (int i = 0; i < 20 && at + i < bytes.length; i++) {
-        five[i / 4] |= (bytes[at + i] & 255) << 24 - i % 4 * 8;
-      }
-      x.feed(five[0], five[1], five[2], five[3], five[4]);
-    }
-    due("end of what was brought", x.end(bytes.length), bytes.length);
+  private static int instructionsOf(int fault) {
+    return fault == 6 ? 102 : fault + 2;
   }
 
-  private static int compile(CodeHarbour x, String text) {
-    bring(x, text.getBytes(StandardCharsets.ISO_8859_1));
-    return x.compile();
-  }
-
-  private static int load(CodeHarbour x, Object... parts) {
-    bring(x, Forge.bytes(parts));
-    return x.load();
-  }
-
-  private static byte[] ins(int op, int a, int b, int n) {
-    return Forge.ins(op, a, b, n);
-  }
-
-  private static final byte[] HALT = ins(13, 0, 0, 0);
-
-  /** d of 7 over zeros and the last ten numbers. */
-  private static long digestOf(int[] cells, long... rest) {
-    long d = 7;
-    for (int c : cells) {
-      d = d * 31 + c;
-    }
-    for (long r : rest) {
-      d = d * 31 + r;
-    }
-    return d;
+  private static int placeOf(int fault) {
+    int behindCode = 5 + 7 * (fault + 2);
+    return switch (fault) {
+      case 0 -> -1;
+      case 1, 4, 7, 8 -> behindCode;
+      case 2, 6 -> 0;
+      case 3 -> behindCode - 7;
+      case 5 -> behindCode + 40;
+      default -> behindCode + 1;
+    };
   }
 
   private static void newObject() {
-    promise = "1";
+    Ledger.sentence("Promise 1", "No code");
     CodeHarbour x = new CodeHarbour();
-    for (int i = 0; i < 256; i++) {
-      due("peek", x.peek(i), 0);
-    }
     for (int i = -1; i < 10; i++) {
-      due("told " + i, x.told(i), 0);
+      Ledger.due("told(" + i + ")", x.told(i), 0);
     }
-    due("run", x.run(1), -1);
-    due("watch", x.watch(1), -1);
-    due("result", x.result(), 0);
-    due("steps", x.steps(), 0);
-    due("strays", x.strays(), 0);
-    due("fault 0", x.fault(0), 0);
-    due("fault 1", x.fault(1), -1);
-    due("end", x.end(1), -1);
-    due("end 0", x.end(0), 0);
-    due("digest", x.digest(), digestOf(new int[266]));
-    // At first every cell may be read and written.
-    due("the last cell", compile(x, "arr a[64]; arr b[64]; arr c[64]; arr d[64]; d[63] = 5;"), 0);
-    due("run", x.run(100), 1);
-    due("cell 255", x.peek(255), 5);
-    due("another object's cell", new CodeHarbour().peek(255), 0);
+    Ledger.due("run()", x.run(1), -1);
+    Ledger.due("watch()", x.watch(1), -1);
+    Ledger.sentence("Promise 1", "TAPE empty");
+    Ledger.due("end(1)", x.end(1), -1);
+    Ledger.due("end(0)", x.end(0), 0);
+    Ledger.due("feed()", x.feed(0, 0, 0, 0, 0), 20);
+    CodeHarbour empty = new CodeHarbour();
+    Ledger.due("load() of nothing", empty.load(), -1);
+    Ledger.due("its fault", empty.fault(0), 1);
+    Ledger.due("its place", empty.fault(1), 0);
+    Ledger.sentence("Promise 1", "cells 0");
+    CodeHarbour y = new CodeHarbour();
+    for (int i = 0; i < 256; i++) {
+      Ledger.due("peek(" + i + ")", y.peek(i), 0);
+    }
+    Ledger.sentence("Promise 1", "the policy as at first");
+    Ledger.source(y, "arr a[64]; arr b[64]; arr c[64]; arr d[64]; a[0] = 4; d[63] = 5; return a[0];", 0, -1);
+    Ledger.due("run()", y.run(100), 1);
+    Ledger.due("cell 0", y.peek(0), 4);
+    Ledger.due("cell 255", y.peek(255), 5);
+    Ledger.sentence("Promise 1", "A new object has nothing of another one");
+    CodeHarbour z = new CodeHarbour();
+    Ledger.due("peek(255)", z.peek(255), 0);
+    Ledger.due("told(3)", z.told(3), 0);
+    Ledger.due("steps()", z.steps(), 0);
+    Ledger.due("fault(1)", z.fault(1), -1);
   }
 
   private static void feed() {
-    promise = "2";
+    Ledger.sentence("Promise 2",
+        "The twenty bytes of five ints, the highest of each first, come to the TAPE; answers how"
+        + " many it has then");
     CodeHarbour x = new CodeHarbour();
-    // "return 1" and "23;" with blanks behind.
-    due("feed", x.feed(0x72657475, 0x726e2031, 0x32333b20, 0x20202020, 0x20202020), 20);
-    due("compile", x.compile(), 0);
+    Ledger.due("return 1", x.feed(0x20726574, 0x75726e20, 0x31202020, 0x20202020, 0x20202020), 20);
+    Ledger.due("+ 23;", x.feed(0x2b203233, 0x3b202020, 0x20202020, 0x20202020, 0x2020200a), 40);
+    Ledger.due("compile()", x.compile(), 0);
     x.run(10);
-    due("the bytes came in order", x.result(), 123);
-    // Bytes above 127 come as they are: 255 is no word.
-    due("feed", x.feed(-1, -1, -1, -1, -1), 20);
-    due("feed", x.feed(-1, -1, -1, -1, -1), 40);
-    x.compile();
-    due("fault", x.fault(0), 1);
-    for (int i = 1; i <= 1000; i++) {
-      if (x.feed(0, 0, 0, 0, 0) != 20 * i) {
-        due("feed " + i, 0, 20 * i);
-      }
+    Ledger.due("result()", x.result(), 24);
+    // All places of the twenty: a byte that is no word, at each of them.
+    for (int at = 0; at < 20; at++) {
+      int[] five = {0x20202020, 0x20202020, 0x20202020, 0x20202020, 0x20202020};
+      five[at / 4] ^= 0xdf << 24 - at % 4 * 8;
+      x.feed(0x20202020, 0x20202020, 0x20202020, 0x20202020, 0x20202020);
+      Ledger.due("feed()", x.feed(five[0], five[1], five[2], five[3], five[4]), 40);
+      x.compile();
+      Ledger.due("fault(0)", x.fault(0), 1);
+      Ledger.due("fault(1)", x.fault(1), 20 + at);
     }
-    due("a full tape", x.feed(1, 1, 1, 1, 1), -1);
-    due("it stays", x.end(20000), 20000);
-    due("19981", x.end(19981), 19981);
-    due("nothing of it comes", x.feed(1, 1, 1, 1, 1), -1);
-    due("it stays", x.end(19982), -1);
-    due("19980", x.end(19980), 19980);
-    due("and one more", x.feed(1, 1, 1, 1, 1), 20000);
+    Ledger.sentence("Promise 2", "-1, and nothing comes, if these would be more than 20000");
+    // This takes more calls than the 512 for which an object is promised; no run of 512 can fill the tape.
+    CodeHarbour full = new CodeHarbour();
+    for (int i = 1; i <= 999; i++) {
+      Ledger.due("feed() " + i, full.feed(0x20202020, 0x20202020, 0x20202020, 0x20202020, 0x20202020),
+          20 * i);
+    }
+    Ledger.due("end(19979)", full.end(19979), 19979);
+    Ledger.due("to 19999", full.feed(0x20202020, 0x20202020, 0x20202020, 0x20202020, 0x20202020), 19999);
+    Ledger.due("one byte of room", full.feed(-1, -1, -1, -1, -1), -1);
+    Ledger.due("nothing came", full.end(20000), -1);
+    Ledger.due("nothing came", full.end(19999), 19999);
+    Ledger.due("end(19981)", full.end(19981), 19981);
+    Ledger.due("19 bytes of room", full.feed(-1, -1, -1, -1, -1), -1);
+    Ledger.due("nothing came", full.end(19982), -1);
+    Ledger.due("end(19980)", full.end(19980), 19980);
+    Ledger.due("20 bytes of room", full.feed(0x20202020, 0x20202020, 0x20202020, 0x20202020, 0x2020203f),
+        20000);
+    Ledger.due("no room", full.feed(-1, -1, -1, -1, -1), -1);
+    Ledger.due("it stays", full.end(20000), 20000);
+    full.compile();
+    Ledger.due("fault(0)", full.fault(0), 1);
+    Ledger.due("the last byte", full.fault(1), 19999);
+    Ledger.due("feed() behind it", full.feed(0, 0, 0, 0, 0), 20);
   }
 
   private static void end() {
-    promise = "3";
+    Ledger.sentence("Promise 3", "The TAPE keeps its first n bytes; answers how many it has then");
     CodeHarbour x = new CodeHarbour();
-    due("below", x.end(-1), -1);
-    due("above", x.end(1), -1);
-    x.feed(0x72657475, 0x726e2037, 0x3b3f3f3f, 0, 0);
-    due("above", x.end(21), -1);
-    due("all", x.end(20), 20);
-    due("the least", x.end(-2147483648), -1);
-    due("the source alone", x.end(9), 9);
-    due("what is gone is gone", x.end(10), -1);
-    due("compile", x.compile(), 0);
-    due("the tape was taken", x.end(1), -1);
-    x.feed(0x72657475, 0x726e2037, 0x3b3f3f3f, 0, 0);
-    x.end(0);
-    due("feed behind it", x.feed(0, 0, 0, 0, 0), 20);
+    x.feed(0x72657475, 0x726e2037, 0x37373b3f, 0x3f3f3f3f, 0x3f3f3f3f);
+    Ledger.due("end(20)", x.end(20), 20);
+    Ledger.due("end(11)", x.end(11), 11);
+    Ledger.due("end(11) again", x.end(11), 11);
+    Ledger.due("end(8)", x.end(8), 8);
+    // "return 7" goes on with "9;"
+    Ledger.due("feed() behind it", x.feed(0x393b2020, 0x20202020, 0x20202020, 0x20202020, 0x20202020), 28);
+    Ledger.due("compile()", x.compile(), 0);
+    x.run(9);
+    Ledger.due("result()", x.result(), 79);
+    x.feed(0, 0, 0, 0, 0);
+    Ledger.due("end(0)", x.end(0), 0);
+    Ledger.due("nothing is left", x.compile(), 0);
+    Ledger.sentence("Promise 3", "-1, and it stays, if n is below 0 or above what it has");
+    CodeHarbour y = new CodeHarbour();
+    for (int n : new int[] {-1, LEAST, 1, 20, MOST}) {
+      Ledger.due("end(" + n + ") of none", y.end(n), -1);
+    }
+    y.feed(0x72657475, 0x726e2037, 0x3b202020, 0x20202020, 0x20202020);
+    for (int n : new int[] {-1, -20, LEAST, 21, 40, 20000, 20001, MOST}) {
+      Ledger.due("end(" + n + ") of 20", y.end(n), -1);
+    }
+    Ledger.due("it stays", y.end(20), 20);
+    Ledger.due("end(9)", y.end(9), 9);
+    Ledger.due("end(10) of 9", y.end(10), -1);
+    Ledger.due("compile()", y.compile(), 0);
+    y.run(9);
+    Ledger.due("result()", y.result(), 7);
+    Ledger.due("end(1) behind a compile()", y.end(1), -1);
+  }
+
+  private static boolean isPolicy(int rlo, int rhi, int wlo, int whi) {
+    return 0 <= rlo && rlo <= wlo && wlo <= whi && whi <= rhi && rhi <= 256;
+  }
+
+  /** The policy is seen by which of the cells LD and ST may touch when they are watched. */
+  private static void policyIs(CodeHarbour x, int rlo, int rhi, int wlo, int whi) {
+    for (int[] edge : new int[][] {{6, rlo - 1, 4}, {6, rlo, 1}, {6, rhi - 1, 1}, {6, rhi, 4}, {7, wlo - 1,
+        5},
+        {7, wlo, 1}, {7, whi - 1, 1}, {7, whi, 5}}) {
+      Ledger.holds(x, Wire.ins(edge[0], 0, 1, edge[1]), Wire.HALT);
+      Ledger.due("op " + edge[0] + " of " + edge[1], x.watch(2), edge[2]);
+    }
   }
 
   private static void policy() {
-    promise = "4";
+    Ledger.sentence("Promise 4", "The policy; answers 0, and no code is held or in then");
     CodeHarbour x = new CodeHarbour();
-    int[][] bad = {{-1, 256, 0, 256}, {0, 257, 0, 256}, {1, 256, 0, 256}, {0, 255, 0, 256},
-        {0, 256, 5, 4}, {0, 256, 0, 257}, {0, 10, 11, 11}, {5, 4, 4, 4}, {-2147483648, 256, 0, 1},
-        {0, 2147483647, 0, 1}};
-    due("compile", compile(x, "return 3;"), 0);
+    Ledger.source(x, "return 3;", 0, -1);
+    x.run(9);
+    Ledger.due("policy()", x.policy(1, 9, 2, 8), 0);
+    Ledger.due("told(0)", x.told(0), 0);
+    Ledger.due("told(2)", x.told(2), 0);
+    Ledger.due("told(3)", x.told(3), 0);
+    Ledger.due("run()", x.run(1), -1);
+    Ledger.due("watch()", x.watch(1), -1);
+    Ledger.due("result() stays", x.result(), 3);
+    Ledger.due("steps() stay", x.steps(), 3);
+    Ledger.due("told(6) stays", x.told(6), 1);
+    policyIs(x, 1, 9, 2, 8);
+    Ledger.due("held code", x.told(2), 1);
+    Ledger.due("the same policy", x.policy(1, 9, 2, 8), 0);
+    Ledger.due("no code is held", x.told(2), 0);
+    Ledger.due("the tape stays", x.feed(0x72657475, 0x726e2037, 0x3b202020, 0x20202020, 0x20202020), 20);
+    x.policy(0, 256, 0, 256);
+    Ledger.due("the tape stays", x.end(20), 20);
+    Ledger.sentence("Promise 4",
+        "-1, and nothing is changed, if it is not as told: each edge of 0 <= rlo <= wlo <= whi <= rhi"
+        + " <= 256");
+    CodeHarbour y = new CodeHarbour();
+    y.policy(5, 100, 6, 90);
+    Ledger.source(y, "return 4;", 0, -1);
+    int[][] bad = {{-1, 100, 6, 90}, {7, 100, 6, 90}, {5, 100, 91, 90}, {5, 89, 6, 90}, {5, 257, 6, 90}, {5,
+        257, 6, 257},
+      {LEAST, 100, 6, 90}, {5, MOST, 6, 90}, {5, 100, -1, 90}, {5, 100, 6, -1}, {5, LEAST, 6, 90}, {MOST, 100,
+      6, 90},
+      {-1, -1, -1, -1}, {257, 257, 257, 257}, {0, 256, 0, 257}, {0, 256, 256, 255}, {1, 0, 0, 0}, {0, 255, 0,
+      256}};
     for (int[] p : bad) {
-      due("policy " + java.util.Arrays.toString(p), x.policy(p[0], p[1], p[2], p[3]), -1);
-      due("code is in", x.told(3), 1);
+      Ledger.due("policy" + java.util.Arrays.toString(p), y.policy(p[0], p[1], p[2], p[3]), -1);
+      Ledger.due("code is in", y.told(3), 1);
     }
-    due("run", x.run(10), 1);
-    int[][] good = {{0, 256, 0, 256}, {0, 0, 0, 0}, {256, 256, 256, 256}, {3, 3, 3, 3}, {0, 5, 5, 5},
-        {1, 9, 2, 8}};
+    Ledger.due("run()", y.run(9), 1);
+    policyIs(y, 5, 100, 6, 90);
+    int[][] good = {{0, 256, 0, 256}, {0, 0, 0, 0}, {256, 256, 256, 256}, {5, 5, 5, 5}, {0, 256, 256, 256},
+        {0, 256, 0, 0},
+      {0, 1, 0, 1}, {255, 256, 255, 256}, {0, 256, 255, 255}, {6, 90, 6, 90}};
     for (int[] p : good) {
-      compile(x, "return 3;");
-      due("policy " + java.util.Arrays.toString(p), x.policy(p[0], p[1], p[2], p[3]), 0);
-      due("none is held", x.told(2), 0);
-      due("none is in", x.told(3), 0);
-      due("its number", x.told(0), 0);
-      due("run", x.run(1), -1);
-      due("watch", x.watch(1), -1);
-      due("the result stays", x.result(), 3);
+      Ledger.due("policy" + java.util.Arrays.toString(p), y.policy(p[0], p[1], p[2], p[3]), 0);
     }
-    // 1 .. 8 may be read, 2 .. 7 written: the gate and the watch see it.
-    for (int cell = 0; cell < 10; cell++) {
-      boolean may = cell >= 1 && cell < 9;
-      due("LD " + cell, load(x, 80, 0, 2, 0, 0, ins(6, 0, 1, cell), HALT, 33, 33, 36, 36, 35, 32),
-          may ? 0 : -1);
-      due("watched", x.watch(9), may ? 1 : 4);
-      boolean mayWrite = cell >= 2 && cell < 8;
-      due("ST " + cell, load(x, 80, 0, 2, 0, 0, ins(7, 0, 1, cell), HALT, 33, 33, 36, 36, 32),
-          mayWrite ? 0 : -1);
-      due("watched", x.watch(9), mayWrite ? 1 : 5);
+    int[] values = {LEAST, -1, 0, 1, 255, 256, 257, MOST};
+    for (int a : values) {
+      for (int b : values) {
+        CodeHarbour z = new CodeHarbour();
+        for (int c : values) {
+          for (int d : values) {
+            Ledger.due("policy " + a + " " + b + " " + c + " " + d, z.policy(a, b, c, d), isPolicy(a, b, c,
+                d) ? 0 : -1);
+          }
+        }
+      }
     }
   }
 
   private static void load() {
-    promise = "5";
-    CodeHarbour x = new CodeHarbour();
-    due("a HALT", load(x, 80, 0, 1, 0, 0, HALT, 32), 0);
-    due("it is in", x.told(3), 1);
-    due("it is held", x.told(2), 1);
-    due("the tape is empty", x.end(1), -1);
-    due("fault 3", load(x, 80, 0, 1, 0, 0, ins(13, 1, 0, 0), 32), -1);
-    due("none is held", x.told(2), 0);
-    due("none is in", x.told(3), 0);
-    due("the tape is empty", x.end(1), -1);
-    due("fault 4", load(x, 80, 0, 1, 0, 1, HALT, 99), -1);
-    due("which", x.fault(0), 4);
-    due("it is held", x.told(2), 1);
-    due("none is in", x.told(3), 0);
-    due("fault 8", load(x, 80, 0, 1, 0, 0, HALT, 36), -1);
-    due("it is held", x.told(2), 1);
-    due("none is in", x.told(3), 0);
-    due("it can be watched", x.watch(1), 1);
-    due("but not run", x.run(1), -1);
-    // The derivation is cut: that is fault 1, and nothing is held.
-    due("fault 1", load(x, 80, 0, 1, 0, 0, HALT), -1);
-    due("which", x.fault(0), 1);
-    due("where", x.fault(1), 12);
-    due("none is held", x.told(2), 0);
-    due("fault 9", load(x, 80, 0, 1, 0, 0, HALT, 32, 0), -1);
-    due("which", x.fault(0), 9);
-    due("where", x.fault(1), 13);
-    due("it is held", x.told(2), 1);
-    due("an empty tape", x.load(), -1);
-    due("which", x.fault(0), 1);
-    due("where", x.fault(1), 0);
-    loadLoop(x);
-  }
-
-  /** A loop that adds up cells 0 to 9, its claim being 0 <= r1 AND r1 <= 10. */
-  private static void loadLoop(CodeHarbour x) {
-    for (int i = 0; i < 10; i++) {
-      x.poke(i, i * i);
+    Ledger.sentence("Promise 5", "The TAPE is taken as a PACKAGE (it is empty then)");
+    for (int fault = 0; fault <= 9; fault++) {
+      CodeHarbour x = new CodeHarbour();
+      Ledger.loads(x, "fault " + fault, fault, placeOf(fault), packageOf(fault));
+      Ledger.due("end(1) behind fault " + fault, x.end(1), -1);
+      Ledger.due("feed() behind fault " + fault, x.feed(0, 0, 0, 0, 0), 20);
     }
-    byte[] zero = Forge.bytes(1, Forge.four(0));
-    byte[] ten = Forge.bytes(1, Forge.four(10));
-    byte[] code = Forge.bytes(80, 0, 9, 0, 2, ins(0, 2, 0, 10), ins(15, 0, 0, 0), ins(0, 2, 0, 10),
-        ins(10, 2, 1, 7), ins(6, 3, 1, 0), ins(2, 0, 0, 3), ins(5, 1, 1, 1), ins(15, 0, 0, 1), HALT);
-    byte[] claims = Forge.bytes(17, 21, zero, 6, 1, 21, 6, 1, ten, 16);
-    // The code falls out of the loop behind one turn; what it shows is the rules of a step.
-    byte[] low = Forge.bytes(65, 64, 1);
-    byte[] below = Forge.bytes(64, 0);
-    byte[] shiftLow = Forge.bytes(40, 2, zero, zero, 36, 45, ten, low, 39, below, 36, 36);
-    byte[] shiftHigh = Forge.bytes(41, 2, ten, zero, 46, zero, low, below, 36, 36, 36);
-    byte[] part0 = Forge.bytes(33, 36, 36);
-    byte[] part1 = Forge.bytes(Forge.any(8), 34, 33, 34, 32, 34, 33, 33, shiftLow, shiftHigh, 35, 32);
-    byte[] part2 = Forge.bytes(Forge.any(8), 34, 32);
-    due("a step of a loop", load(x, code, claims, part0, part1, part2), 0);
-    due("run", x.run(20), 1);
-    due("result", x.result(), 0);
-    byte[] wrongLow = Forge.bytes(40, 2, zero, zero, 36, 45, zero, low, 39, below, 36, 36);
-    byte[] broken = Forge.bytes(Forge.any(8), 34, 33, 34, 32, 34, 33, 33, wrongLow, shiftHigh, 35, 32);
-    due("t is below", load(x, code, claims, part0, broken, part2), -1);
-    due("which", x.fault(0), 8);
+    Ledger.sentence("Promise 5", "0: it is in, and held");
+    CodeHarbour x = new CodeHarbour();
+    Ledger.loads(x, "a package", 0, -1, packageOf(0));
+    Ledger.due("told(0)", x.told(0), 2);
+    Ledger.due("run()", x.run(9), 1);
+    Ledger.due("watch()", x.watch(9), 1);
+    Ledger.sentence("Promise 5",
+        "-1: it has a FAULT; it is not in; its code is held if the FAULT is 4 or more, else none is");
+    for (int fault = 1; fault <= 9; fault++) {
+      for (int before = 0; before < 3; before++) {
+        CodeHarbour y = new CodeHarbour();
+        if (before == 1) {
+          Ledger.loads(y, "one that is in", 0, -1, HALTING);
+        } else if (before == 2) {
+          Ledger.holds(y, Wire.trap(3));
+        }
+        Ledger.loads(y, "fault " + fault, fault, placeOf(fault), packageOf(fault));
+        boolean held = fault >= 4;
+        Ledger.due("told(0) of fault " + fault, y.told(0), held ? instructionsOf(fault) : 0);
+        Ledger.due("run() of fault " + fault, y.run(200), -1);
+        Ledger.due("watch() of fault " + fault, y.watch(200), held ? 1 : -1);
+        Ledger.due("result() of fault " + fault, y.result(), held ? fault == 6 ? 101 : fault : 0);
+      }
+    }
   }
 
   private static void compile() {
-    promise = "6";
+    Ledger.sentence("Promise 6", "The TAPE is taken as a source. Answers 0: its package is in, and held");
     CodeHarbour x = new CodeHarbour();
-    due("nothing at all", x.compile(), 0);
-    due("its code", x.told(0), 5);
-    due("run", x.run(3), 1);
-    due("steps", x.steps(), 3);
-    due("result", x.result(), 0);
-    due("a fault", compile(x, "return"), -1);
-    due("none is held", x.told(2), 0);
-    due("none is in", x.told(3), 0);
-    due("the tape is empty", x.end(1), -1);
-    // MARK, LI, LI, MUL, LI, LI, SUB, ADD, HALT: 9, and 5 behind all.
-    due("an expression", compile(x, "return 6 * 7 + - 2;"), 0);
-    due("its code", x.told(0), 14);
-    due("run", x.run(100), 1);
-    due("steps", x.steps(), 9);
-    due("result", x.result(), 40);
-    compileStatements(x);
-    compileArrays(x);
-  }
-
-  private static void compileStatements(CodeHarbour x) {
-    String[] signs = {"<", "<=", "==", "!="};
-    int[][] answers = {{1, 0, 0}, {1, 1, 0}, {0, 1, 0}, {1, 0, 1}};
-    for (int s = 0; s < 4; s++) {
-      for (int v = 1; v <= 3; v++) {
-        due("if", compile(x, "if (" + v + signs[s] + "2) { return 1; } else { return 0; }"), 0);
-        // MARK, LI, LI, jump, (MARK, LI, HALT), JMP, MARK, (MARK, LI, HALT), MARK, and 5.
-        due("its code", x.told(0), 18);
-        x.run(100);
-        due(v + signs[s] + "2", x.result(), answers[s][v - 1]);
-        due("steps", x.steps(), answers[s][v - 1] == 1 ? 7 : 8);
-      }
+    Ledger.source(x, "var n; n = n + 1; return n;", 0, -1);
+    Ledger.due("told(0)", x.told(0), 7 + 4 + 5);
+    Ledger.due("end(1)", x.end(1), -1);
+    Ledger.due("run()", x.run(99), 1);
+    Ledger.due("watch()", x.watch(99), 1);
+    Ledger.due("result()", x.result(), 2);
+    Ledger.due("compile() of nothing", x.compile(), 0);
+    Ledger.due("told(0)", x.told(0), 5);
+    CodeHarbour again = new CodeHarbour();
+    for (int i = 0; i < 5; i++) {
+      Ledger.source(again, "arr a[9];" + "for i=0..9{a[i]=i;}".repeat(70), 0, -1);
+      Ledger.due("told(0) of 70 fors", again.told(0), 70 * 11 + 5);
     }
-    due("and", compile(x, "if (1 < 2 and 2 < 1) { return 1; } return 2;"), 0);
-    x.run(100);
-    due("result", x.result(), 2);
-    due("while", compile(x, "var n; while (n < 5) { n = n + 1; } return n * n;"), 0);
-    due("run", x.run(1000), 1);
-    due("result", x.result(), 25);
-    x.poke(0, 0);
-    // MARK, LI, LD, LI, JLE: 5 a look; MARK, LI, LD, LI, ADD, LI, ST, JMP: 8 a turn;
-    // MARK, MARK, LI, LD, LI, LD, MUL, HALT: 8 behind it.
-    x.run(1000);
-    due("steps", x.steps(), 6 * 5 + 5 * 8 + 8);
-    due("for", compile(x, "var s; s = 0; for i = - 3 .. 4 { s = s * 10 + i; } return s;"), 0);
-    due("run", x.run(1000), 1);
-    due("result", x.result(), -3210000 + 123);
-    due("a for of none", compile(x, "for i = 4 .. 4 { return 1; } return 2;"), 0);
-    x.run(1000);
-    due("result", x.result(), 2);
-  }
-
-  private static void compileArrays(CodeHarbour x) {
-    String fill = "var s; arr a[5]; for i = 0 .. 5 { a[i] = i * i; } ";
-    due("direct", compile(x, fill + "s = 0; for i = 0 .. 4 { s = s + a[i + 1]; } return s;"), 0);
-    x.run(2000);
-    due("result", x.result(), 30);
-    due("cell", x.peek(5), 16);
-    due("not direct", compile(x, fill + "return a[2 + 1] * a[a[2]];"), 0);
-    x.run(2000);
-    due("result", x.result(), 144);
-    for (String index : new String[] {"0 - 1", "5", "- 2147483647 - 1", "2147483647"}) {
-      due("beyond", compile(x, fill + "return a[" + index + "];"), 0);
-      due("it traps", x.run(2000), 2);
-      due("with", x.result(), 1);
-      due("beyond", compile(x, fill + "a[" + index + "] = 9; return 7;"), 0);
-      due("it traps", x.run(2000), 2);
-      due("with", x.result(), 1);
+    Ledger.sentence("Promise 6", "-1: it has a FAULT; no code is held or in");
+    String[] faulty = {"return ?;", "return;", "return a;", "arr a[1]; return a;", "arr a[0];",
+        "return 1;".repeat(400),
+      "return - - - - - 1;"};
+    int[] places = {7, 6, 7, 17, 6, 0, 17};
+    for (int i = 0; i < faulty.length; i++) {
+      CodeHarbour y = new CodeHarbour();
+      Ledger.source(y, faulty[i], i + 1, places[i]);
+      Ledger.due("told(0)", y.told(0), 0);
+      Ledger.due("watch()", y.watch(9), -1);
+      Ledger.loads(y, "one that is in", 0, -1, HALTING);
+      Ledger.source(y, faulty[i], i + 1, places[i]);
+      Ledger.due("told(0)", y.told(0), 0);
+      Ledger.due("run()", y.run(9), -1);
+      Ledger.due("watch()", y.watch(9), -1);
+      Ledger.due("end(1)", y.end(1), -1);
+      Ledger.source(y, "return 5;", 0, -1);
+      Ledger.source(y, faulty[i], i + 1, places[i]);
+      Ledger.due("run()", y.run(9), -1);
+      Ledger.holds(y, Wire.HALT);
+      Ledger.source(y, faulty[i], i + 1, places[i]);
+      Ledger.due("watch()", y.watch(9), -1);
     }
-    due("to be put", compile(x, fill + "a[1 + 1] = 77; return a[2];"), 0);
-    x.run(2000);
-    due("result", x.result(), 77);
-    due("strays", x.strays(), 0);
   }
 
   private static void fault() {
-    promise = "7";
+    Ledger.sentence("Promise 7", "Of the latest load() or compile() its FAULT (what = 0), its place (1)");
     CodeHarbour x = new CodeHarbour();
-    due("before one", x.fault(0), 0);
-    due("its place", x.fault(1), -1);
-    compile(x, "return a;");
-    due("what", x.fault(0), 3);
-    due("where", x.fault(1), 7);
-    due("another what", x.fault(2), 0);
-    due("another what", x.fault(-1), 0);
-    due("another what", x.fault(2147483647), 0);
+    for (int fault = 1; fault <= 9; fault++) {
+      Ledger.loads(x, "fault " + fault, fault, placeOf(fault), packageOf(fault));
+    }
+    Ledger.source(x, "return  a;", 3, 8);
     x.policy(0, 256, 0, 256);
     x.run(1);
-    due("it stays", x.fault(0), 3);
-    compile(x, "return 1;");
-    due("none", x.fault(0), 0);
-    due("its place", x.fault(1), -1);
-    load(x, 81);
-    due("of a load", x.fault(0), 2);
-    due("its place", x.fault(1), 0);
-    load(x, 80, 0, 1, 0, 0, HALT, 32);
-    due("none", x.fault(0), 0);
-    due("its place", x.fault(1), -1);
+    x.watch(1);
+    x.feed(0, 0, 0, 0, 0);
+    x.end(0);
+    x.poke(1, 1);
+    Ledger.due("fault(0) stays", x.fault(0), 3);
+    Ledger.due("fault(1) stays", x.fault(1), 8);
+    Ledger.sentence("Promise 7", "0 and -1 if it had none, or before one");
+    CodeHarbour y = new CodeHarbour();
+    Ledger.due("fault(0) before one", y.fault(0), 0);
+    Ledger.due("fault(1) before one", y.fault(1), -1);
+    y.policy(1, 0, 0, 0);
+    y.end(-1);
+    y.run(-1);
+    Ledger.due("fault(0) before one", y.fault(0), 0);
+    Ledger.due("fault(1) before one", y.fault(1), -1);
+    Ledger.loads(x, "a load() that had none", 0, -1, HALTING);
+    Ledger.source(x, "return;", 2, 6);
+    Ledger.source(x, "return 1;", 0, -1);
+    Ledger.loads(x, "a load() with one", 1, 0);
+    Ledger.source(x, "return 1;", 0, -1);
+    Ledger.sentence("Promise 7", "0 for another what");
+    Ledger.source(x, "return  a;", 3, 8);
+    for (int what : new int[] {-1, 2, 3, 8, 256, LEAST, MOST}) {
+      Ledger.due("fault(" + what + ")", x.fault(what), 0);
+    }
   }
 
   private static void run() {
-    promise = "8";
+    Ledger.sentence("Promise 8", "A RUN of the code that is in, unwatched. Answers how it ends, 1, 2 or 3");
     CodeHarbour x = new CodeHarbour();
-    due("none is in", x.run(5), -1);
-    compile(x, "var n; n = n + 1; return n;");
-    due("fuel below 0", x.run(-1), -1);
-    due("fuel above 20000", x.run(20001), -1);
-    due("nothing is done", x.peek(0), 0);
-    due("no steps", x.steps(), 0);
-    due("no fuel", x.run(0), 3);
-    due("no steps", x.steps(), 0);
     // MARK, LI, LD, LI, ADD, LI, ST; MARK, LI, LD, HALT.
-    due("ahead of ST", x.run(6), 3);
-    due("cell", x.peek(0), 0);
-    due("behind ST", x.run(7), 3);
-    due("cell", x.peek(0), 1);
-    due("ahead of HALT", x.run(10), 3);
-    due("result", x.result(), 0);
-    due("HALT", x.run(11), 1);
-    due("result", x.result(), 3);
-    due("the most fuel", x.run(20000), 1);
-    due("result", x.result(), 4);
-    due("a failed one", x.run(-5), -1);
-    due("leaves the result", x.result(), 4);
-    due("and the steps", x.steps(), 11);
-    runAllOps(x);
-    compile(x, "while (1 < 2) {}");
-    due("it never ends", x.run(20000), 3);
-    due("steps", x.steps(), 20000);
-    due("result", x.result(), 0);
-  }
-
-  /** All instructions, by hand; registers are 0 at the beginning of each run. */
-  private static void runAllOps(CodeHarbour x) {
-    byte[] mark = ins(15, 0, 0, 0);
-    byte[] end = Forge.bytes(16, 32, Forge.any(8), 34, 32);
-    due("arithmetic", load(x, 80, 0, 9, 0, 0, ins(0, 1, 0, 2147483647), ins(5, 2, 1, 1),
-        ins(3, 3, 2, 1), ins(4, 4, 1, 1), ins(2, 0, 3, 4), ins(1, 5, 0, 0), ins(2, 0, 5, 7),
-        ins(2, 0, 0, 0), HALT, 32), 0);
-    due("run", x.run(9), 1);
-    // -2147483648 - 2147483647 = 1; 2147483647 squared = 1; 1 + 1; twice.
-    due("result", x.result(), 4);
-    for (int op = 8; op <= 12; op++) {
-      for (int v = -1; v <= 1; v++) {
-        boolean jumps = op == 8 || op == 9 && v < 0 || op == 10 && v <= 0 || op == 11 && v == 0
-            || op == 12 && v != 0;
-        byte[] jump = op == 8 ? ins(8, 0, 0, 4) : ins(op, 1, 2, 4);
-        due("a jump", load(x, 80, 0, 6, 0, 1, ins(0, 1, 0, v), ins(0, 0, 0, 5), jump, ins(14, 0, 0, 99),
-            mark, HALT, 16, op == 8 ? Forge.bytes(32) : Forge.bytes(33, 34, 32, 34, 32), Forge.any(8), 34,
-            32), 0);
-        due("op " + op + " of " + v, x.run(9), jumps ? 1 : 2);
-        due("result", x.result(), jumps ? 5 : 99);
-        due("steps", x.steps(), jumps ? 5 : 4);
-      }
+    Ledger.source(x, "var n; n = n + 1; return n;", 0, -1);
+    Ledger.due("behind its HALT", x.run(11), 1);
+    Ledger.due("result()", x.result(), 1);
+    Ledger.due("ahead of its HALT", x.run(10), 3);
+    Ledger.due("cell 0", x.peek(0), 2);
+    Ledger.due("behind its ST", x.run(7), 3);
+    Ledger.due("cell 0", x.peek(0), 3);
+    Ledger.due("ahead of its ST", x.run(6), 3);
+    Ledger.due("cell 0", x.peek(0), 3);
+    Ledger.loads(x, "a TRAP", 0, -1, Wire.code(0, Wire.trap(7)), 32);
+    Ledger.due("behind its TRAP", x.run(1), 2);
+    Ledger.sentence("Promise 8", "-1, and nothing is done, if none is in");
+    CodeHarbour y = new CodeHarbour();
+    Ledger.due("run()", y.run(5), -1);
+    Ledger.holds(y, Wire.st(0, 1, 0), Wire.HALT);
+    y.poke(0, 9);
+    Ledger.due("of code that is held", y.run(5), -1);
+    Ledger.due("cell 0", y.peek(0), 9);
+    Ledger.due("steps()", y.steps(), 0);
+    Ledger.sentence("Promise 8", "-1, and nothing is done, if FUEL is not 0 to 20000");
+    CodeHarbour z = new CodeHarbour();
+    Ledger.source(z, "var n; while (0 < 1) { n = n + 1; }", 0, -1);
+    z.run(20);
+    long before = z.digest();
+    for (int fuel : new int[] {-1, LEAST, 20001, MOST}) {
+      Ledger.due("run(" + fuel + ")", z.run(fuel), -1);
+      Ledger.due("digest()", z.digest(), before);
     }
-    due("LD and ST", load(x, 80, 0, 6, 0, 0, ins(0, 1, 0, 200), ins(0, 2, 0, 9), ins(7, 2, 1, 55),
-        ins(0, 1, 0, 300), ins(6, 0, 1, -45), HALT, 33, 33, 36, 36, 33, 33, 36, 36, 35, 32), 0);
-    due("run", x.run(20), 1);
-    due("result", x.result(), 9);
-    due("cell 255", x.peek(255), 9);
-    due("a MARK does nothing", load(x, 80, 0, 2, 0, 1, mark, HALT, end), 0);
-    due("run", x.run(2), 1);
-    due("result", x.result(), 0);
+    Ledger.due("run(0)", z.run(0), 3);
+    Ledger.due("steps()", z.steps(), 0);
+    Ledger.due("run(1)", z.run(1), 3);
+    Ledger.due("steps()", z.steps(), 1);
+    Ledger.due("run(20000)", z.run(20000), 3);
+    Ledger.due("steps()", z.steps(), 20000);
+    Ledger.due("run(19999)", z.run(19999), 3);
+    Ledger.due("steps()", z.steps(), 19999);
+    // LI, 6666 times MARK, ADDI, JNE, then HALT: 20000 steps.
+    Ledger.loads(z, "a loop", 0, -1, Wire.code(1, Wire.li(1, 6666), Wire.mark(0), Wire.addi(0, 0, 1),
+        Wire.ins(12, 0, 1, 1),
+        Wire.HALT), 16, 32, Wire.times(8, 35), 34, 33, 34, 32, 34, 32);
+    Ledger.due("HALT is the last step", z.run(20000), 1);
+    Ledger.due("result()", z.result(), 6666);
+    Ledger.due("steps()", z.steps(), 20000);
+    Ledger.due("HALT is no step any more", z.run(19999), 3);
+    Ledger.due("watched", z.watch(20000), 1);
   }
 
   private static void watch() {
-    promise = "9";
+    Ledger.sentence("Promise 9", "A RUN of the code that is held, watched");
     CodeHarbour x = new CodeHarbour();
-    due("none is held", x.watch(5), -1);
-    x.policy(10, 20, 12, 18);
-    int[][] reads = {{9, 4}, {10, 1}, {19, 1}, {20, 4}, {-1, 4}, {256, 4}, {2147483647, 4}};
-    for (int[] r : reads) {
-      load(x, 80, 0, 3, 0, 0, ins(0, 1, 0, r[0]), ins(6, 0, 1, 0), HALT, 99);
-      due("LD " + r[0], x.watch(3), r[1]);
-      due("its cell", x.result(), r[1] == 4 ? r[0] : 0);
-      due("steps", x.steps(), r[1] == 4 ? 1 : 3);
-      due("the fuel ends ahead of it", x.watch(1), 3);
-      due("result", x.result(), 0);
-      due("steps", x.steps(), 1);
+    Ledger.due("none is held", x.watch(5), -1);
+    Ledger.holds(x, Wire.li(0, 4), Wire.HALT);
+    Ledger.due("held", x.watch(5), 1);
+    Ledger.due("result()", x.result(), 4);
+    Ledger.source(x, "return 5;", 0, -1);
+    Ledger.due("in", x.watch(5), 1);
+    Ledger.due("result()", x.result(), 5);
+    Ledger.sentence("Promise 9",
+        "a LD of a cell that may not be read ends it as 4, a ST that may not be written as 5, ahead of"
+        + " this step, with that cell");
+    CodeHarbour y = new CodeHarbour();
+    y.policy(10, 20, 12, 18);
+    for (int cell : new int[] {LEAST, -1, 0, 9, 20, 255, 256, MOST}) {
+      Ledger.holds(y, Wire.li(1, cell), Wire.ld(0, 1, 0), Wire.HALT);
+      Ledger.due("LD " + cell, y.watch(9), 4);
+      Ledger.due("result()", y.result(), cell);
+      Ledger.due("steps()", y.steps(), 1);
     }
-    int[][] writes = {{11, 5}, {12, 1}, {17, 1}, {18, 5}, {-2147483648, 5}, {10, 5}};
-    for (int[] w : writes) {
-      x.poke(w[0], 3);
-      load(x, 80, 0, 3, 0, 0, ins(0, 1, 0, w[0]), ins(7, 1, 1, 0), HALT, 99);
-      due("ST " + w[0], x.watch(3), w[1]);
-      due("its cell", x.result(), w[1] == 5 ? w[0] : 0);
-      due("the cell itself", x.peek(w[0]), w[1] == 5 ? w[0] < 0 ? 0 : 3 : w[0]);
+    for (int cell : new int[] {LEAST, -1, 0, 10, 11, 18, 19, 255, 256, MOST}) {
+      y.poke(cell, 3);
+      Ledger.holds(y, Wire.li(1, cell), Wire.st(1, 1, 0), Wire.HALT);
+      Ledger.due("ST " + cell, y.watch(9), 5);
+      Ledger.due("result()", y.result(), cell);
+      Ledger.due("steps()", y.steps(), 1);
+      Ledger.due("the cell", y.peek(cell), cell >= 0 && cell < 256 ? 3 : 0);
     }
-    // b + n wraps.
-    load(x, 80, 0, 3, 0, 0, ins(0, 1, 0, 2147483647), ins(6, 0, 1, -2147483634), HALT, 99);
-    due("it may be read", x.watch(9), 1);
-    load(x, 80, 0, 3, 0, 0, ins(0, 1, 0, 2147483647), ins(6, 0, 1, 1), HALT, 99);
-    due("it may not", x.watch(9), 4);
-    due("its cell", x.result(), -2147483648);
-    due("fuel below 0", x.watch(-1), -1);
-    due("fuel above", x.watch(20001), -1);
-    due("nothing is done", x.steps(), 1);
-    due("no fuel", x.watch(0), 3);
-    due("no step", x.steps(), 0);
-    due("strays", x.strays(), 0);
-    compile(x, "return 5;");
-    due("code that is in", x.watch(9), 1);
-    due("result", x.result(), 5);
+    for (int cell : new int[] {10, 11, 12, 17, 18, 19}) {
+      y.poke(cell, 100 + cell);
+      Ledger.holds(y, Wire.ld(0, 1, cell), Wire.HALT);
+      Ledger.due("LD " + cell, y.watch(9), 1);
+      Ledger.due("result()", y.result(), 100 + cell);
+    }
+    for (int cell : new int[] {12, 13, 16, 17}) {
+      Ledger.holds(y, Wire.li(2, 7), Wire.st(2, 1, cell), Wire.HALT);
+      Ledger.due("ST " + cell, y.watch(9), 1);
+      Ledger.due("the cell", y.peek(cell), 7);
+    }
+    Ledger.sentence("Promise 9", "ahead of this step: the FUEL may end first");
+    Ledger.holds(y, Wire.li(1, 5), Wire.ld(0, 1, 0), Wire.HALT);
+    Ledger.due("watch(0)", y.watch(0), 3);
+    Ledger.due("watch(1)", y.watch(1), 3);
+    Ledger.due("result()", y.result(), 0);
+    Ledger.due("steps()", y.steps(), 1);
+    Ledger.due("watch(2)", y.watch(2), 4);
+    Ledger.due("steps()", y.steps(), 1);
+    Ledger.sentence("Promise 9", "Else as run()");
+    Ledger.source(y, "var n; while (0 < 1) { n = n + 1; }", 0, -1);
+    y.watch(20);
+    long before = y.digest();
+    for (int fuel : new int[] {-1, LEAST, 20001, MOST}) {
+      Ledger.due("watch(" + fuel + ")", y.watch(fuel), -1);
+      Ledger.due("digest()", y.digest(), before);
+    }
+    Ledger.due("watch(0)", y.watch(0), 3);
+    Ledger.due("steps()", y.steps(), 0);
+    Ledger.due("watch(20000)", y.watch(20000), 3);
+    Ledger.due("steps()", y.steps(), 20000);
+    Ledger.holds(y, Wire.trap(8));
+    Ledger.due("watch(0)", y.watch(0), 3);
+    Ledger.due("watch(1)", y.watch(1), 2);
+    Ledger.due("result()", y.result(), 8);
+    y.policy(0, 256, 0, 256);
+    Ledger.due("behind a policy()", y.watch(1), -1);
   }
 
   private static void resultAndSteps() {
-    promise = "10 and 11";
+    Ledger.sentence("Promise 10",
+        "Of the latest run() or watch() that was done: what it ended with: register 0, the TRAP's n, the"
+        + " cell; 0 for 3, and before one");
+    Ledger.sentence("Promise 11", "How many steps it took; 0 before one");
     CodeHarbour x = new CodeHarbour();
-    due("before one", x.result(), 0);
-    due("before one", x.steps(), 0);
-    load(x, 80, 0, 2, 0, 0, ins(0, 0, 0, -7), HALT, 32);
+    Ledger.due("result() before one", x.result(), 0);
+    Ledger.due("steps() before one", x.steps(), 0);
     x.run(5);
-    due("register 0", x.result(), -7);
-    due("steps", x.steps(), 2);
-    load(x, 80, 0, 2, 0, 0, ins(0, 0, 0, -7), ins(14, 0, 0, 42), 32);
-    due("a load leaves it", x.result(), -7);
-    due("a load leaves it", x.steps(), 2);
-    due("run", x.run(2), 2);
-    due("the TRAP's n", x.result(), 42);
-    due("steps", x.steps(), 2);
-    x.run(1);
-    due("out of fuel", x.result(), 0);
-    due("steps", x.steps(), 1);
-    x.watch(2);
-    due("watched", x.result(), 42);
+    x.watch(5);
+    Ledger.due("result() before one that was done", x.result(), 0);
+    Ledger.due("steps() before one that was done", x.steps(), 0);
+    Ledger.loads(x, "HALT", 0, -1, Wire.code(0, Wire.li(0, -7), Wire.HALT), 32);
+    Ledger.due("result() before one", x.result(), 0);
+    x.run(5);
+    Ledger.due("register 0", x.result(), -7);
+    Ledger.due("steps()", x.steps(), 2);
+    Ledger.loads(x, "TRAP", 0, -1, Wire.code(0, Wire.li(0, -7), Wire.li(1, 1), Wire.trap(42)), 32);
+    Ledger.due("result() stays", x.result(), -7);
+    Ledger.due("steps() stay", x.steps(), 2);
+    x.run(3);
+    Ledger.due("the TRAP's n", x.result(), 42);
+    Ledger.due("steps()", x.steps(), 3);
+    x.run(-1);
+    x.run(20001);
+    x.watch(-1);
+    Ledger.due("what was not done leaves result()", x.result(), 42);
+    Ledger.due("what was not done leaves steps()", x.steps(), 3);
+    x.run(2);
+    Ledger.due("0 for 3", x.result(), 0);
+    Ledger.due("steps()", x.steps(), 2);
+    x.watch(3);
+    Ledger.due("watched", x.result(), 42);
+    Ledger.due("watched steps()", x.steps(), 3);
+    x.watch(1);
+    Ledger.due("0 for 3", x.result(), 0);
+    Ledger.due("steps()", x.steps(), 1);
+    Ledger.holds(x, Wire.mov(0, 0), Wire.ld(0, 0, 999), Wire.HALT);
+    Ledger.due("result() stays", x.result(), 0);
+    x.watch(9);
+    Ledger.due("the cell", x.result(), 999);
+    Ledger.due("steps()", x.steps(), 1);
     x.policy(0, 256, 0, 256);
-    due("a policy leaves it", x.result(), 42);
-    due("run", x.run(1), -1);
-    due("what was not done leaves it", x.result(), 42);
-    due("what was not done leaves it", x.steps(), 2);
+    Ledger.source(x, "return;", 2, 6);
+    x.run(1);
+    x.poke(0, 1);
+    Ledger.due("result() stays", x.result(), 999);
+    Ledger.due("steps() stay", x.steps(), 1);
   }
 
   private static void pokeAndPeek() {
-    promise = "12 and 13";
+    Ledger.sentence("Promise 12", "A cell becomes v; answers what it was");
     CodeHarbour x = new CodeHarbour();
-    due("poke", x.poke(0, 5), 0);
-    due("poke", x.poke(0, -6), 5);
-    due("peek", x.peek(0), -6);
-    due("poke", x.poke(255, 2147483647), 0);
-    due("peek", x.peek(255), 2147483647);
-    for (int cell : new int[] {-1, 256, -2147483648, 2147483647}) {
-      due("no such cell", x.poke(cell, 9), 0);
-      due("no such cell", x.peek(cell), 0);
+    for (int cell : new int[] {0, 1, 127, 128, 254, 255}) {
+      Ledger.due("poke()", x.poke(cell, LEAST), 0);
+      Ledger.due("poke()", x.poke(cell, MOST), LEAST);
+      Ledger.due("poke()", x.poke(cell, cell), MOST);
+      Ledger.due("peek()", x.peek(cell), cell);
     }
+    Ledger.due("its neighbour", x.peek(2), 0);
+    Ledger.sentence("Promise 12", "poke(): 0 if there is no such cell");
+    long before = x.digest();
+    for (int cell : new int[] {-1, 256, 257, -256, 512, LEAST, MOST}) {
+      Ledger.due("poke(" + cell + ")", x.poke(cell, 9), 0);
+      Ledger.due("poke(" + cell + ") again", x.poke(cell, 9), 0);
+      Ledger.due("digest()", x.digest(), before);
+    }
+    Ledger.sentence("Promise 13", "A cell; 0 if there is none");
+    for (int cell : new int[] {-1, 256, 257, -256, 512, LEAST, MOST}) {
+      Ledger.due("peek(" + cell + ")", x.peek(cell), 0);
+    }
+    Ledger.due("peek(255)", x.peek(255), 255);
+    Ledger.sentence("Promises 12 and 13", "No policy is spoken of; cells stay");
     x.policy(3, 3, 3, 3);
-    due("the policy is not for it", x.poke(7, 1), 0);
-    due("the policy is not for it", x.peek(7), 1);
-    due("cells stay", x.peek(0), -6);
+    Ledger.due("poke()", x.poke(255, 1), 255);
+    Ledger.due("peek()", x.peek(255), 1);
+    Ledger.source(x, "return 1;", 0, -1);
+    Ledger.due("peek()", x.peek(128), 128);
   }
 
   private static void told() {
-    promise = "14";
+    Ledger.sentence("Promise 14",
+        "0: instructions of the code that is held, 0 without one. 2: 1 if code is held. 3: 1 if code is"
+        + " in");
     CodeHarbour x = new CodeHarbour();
-    // PART 0: 1. PART 1: 8 ALL, IF-THEN, 1, 1.
-    load(x, 80, 0, 2, 0, 1, ins(15, 0, 0, 0), HALT, 16, 32, Forge.any(8), 34, 32);
-    due("instructions", x.told(0), 2);
-    due("nodes", x.told(1), 12);
-    due("held", x.told(2), 1);
-    due("in", x.told(3), 1);
-    due("came in", x.told(4), 1);
-    // LD: AND, AND, <=, rlo, +, 0, n, <, +, 0, n, rhi, ALL, TRUE.
-    load(x, 80, 0, 2, 0, 0, ins(6, 0, 1, 3), HALT, 99);
-    due("nodes of LD", x.told(1), 14);
-    due("did not", x.told(5), 1);
-    // ST of a cell at 0 + 1: AND, AND, <=, wlo, ((0 + 1) + n), <, the same, whi; TRUE.
-    load(x, 80, 0, 3, 0, 0, ins(5, 1, 1, 1), ins(7, 0, 1, 3), HALT, 99);
-    due("nodes of ST", x.told(1), 2 + 1 + 1 + 5 + 1 + 5 + 1 + 1);
-    // JLT: AND, IF-THEN, <, 0, 0, claim, IF-THEN, <=, 0, 0, TRUE; the claim is r0 = r1.
-    load(x, 80, 0, 4, 0, 1, ins(9, 2, 3, 2), HALT, ins(15, 0, 0, 0), HALT, 22, 6, 0, 6, 1, 99);
-    due("nodes of JLT", x.told(1), 10 + 3 + 9 + 3 + 1);
-    due("came in", x.told(4), 1);
-    due("did not", x.told(5), 3);
-    load(x, 80, 0, 1, 0, 0, HALT);
-    due("nodes of one that was cut", x.told(1), 0);
-    load(x, 80, 0, 1, 0, 0, HALT, 32);
-    due("nodes", x.told(1), 1);
-    due("policy", x.policy(0, 256, 0, 256), 0);
-    due("nodes stay", x.told(1), 1);
-    due("instructions do not", x.told(0), 0);
-    compile(x, "return 1;");
-    due("nodes behind a compile", x.told(1), 0);
-    due("compiled", x.told(6), 1);
-    load(x, 80, 0, 1, 0, 0, HALT, 32, 32);
-    due("nodes with fault 9", x.told(1), 1);
-    compile(x, "return;");
-    due("nodes behind a compile", x.told(1), 0);
-    due("did not compile", x.told(7), 1);
-    due("came in", x.told(4), 2);
-    due("did not", x.told(5), 5);
-    due("another what", x.told(8), 0);
-    due("another what", x.told(-1), 0);
-    due("another what", x.told(-2147483648), 0);
+    for (int fault = 0; fault <= 9; fault++) {
+      Ledger.bring(x, packageOf(fault));
+      x.load();
+      boolean held = fault == 0 || fault >= 4;
+      Ledger.due("told(0) of fault " + fault, x.told(0), held ? instructionsOf(fault) : 0);
+      Ledger.due("told(2) of fault " + fault, x.told(2), held ? 1 : 0);
+      Ledger.due("told(3) of fault " + fault, x.told(3), fault == 0 ? 1 : 0);
+    }
+    x.policy(0, 256, 0, 256);
+    Ledger.due("told(0) behind a policy()", x.told(0), 0);
+    Ledger.sentence("Promise 14",
+        "1: NODES of the latest load()'s OBLIGATION; 0 before one, if it had a FAULT of 1 to 6, and behind"
+        + " a compile()");
+    CodeHarbour y = new CodeHarbour();
+    Ledger.due("told(1) before one", y.told(1), 0);
+    byte[] marked = Wire.join(Wire.code(1, Wire.mark(0), Wire.HALT), 16);
+    for (int fault = 0; fault <= 9; fault++) {
+      Ledger.loads(y, "one of 12", 0, -1, marked, 32, Wire.PART_OF_TRUE);
+      Ledger.due("told(1)", y.told(1), 12);
+      Ledger.loads(y, "fault " + fault, fault, placeOf(fault), packageOf(fault));
+      Ledger.due("told(1) of fault " + fault, y.told(1), fault == 0 || fault >= 7 ? 1 : 0);
+    }
+    Ledger.loads(y, "one of 12, cut in its derivations", 1, marked.length + 1, marked, 32);
+    Ledger.due("told(1)", y.told(1), 0);
+    Ledger.loads(y, "one of 12, too deep in its derivations", 5, marked.length + 1 + 40, marked, 52,
+        Wire.times(40, 2), 1);
+    Ledger.due("told(1)", y.told(1), 0);
+    Ledger.loads(y, "one of 12", 0, -1, marked, 32, Wire.PART_OF_TRUE);
+    y.run(1);
+    y.policy(0, 256, 0, 256);
+    y.policy(1, 0, 0, 0);
+    Ledger.due("told(1) stays", y.told(1), 12);
+    Ledger.source(y, "return 1;", 0, -1);
+    Ledger.due("told(1) behind a compile()", y.told(1), 0);
+    Ledger.loads(y, "one of 12", 8, marked.length, marked, 36);
+    Ledger.due("told(1)", y.told(1), 12);
+    Ledger.source(y, "return;", 2, 6);
+    Ledger.due("told(1) behind a compile() with a FAULT", y.told(1), 0);
+  }
+
+  private static void counts(CodeHarbour x, int in, int out, int compiled, int not) {
+    Ledger.due("told(4)", x.told(4), in);
+    Ledger.due("told(5)", x.told(5), out);
+    Ledger.due("told(6)", x.told(6), compiled);
+    Ledger.due("told(7)", x.told(7), not);
+  }
+
+  private static void toldCounts() {
+    Ledger.sentence("Promise 14",
+        "4: packages that came in by load(), 5: that did not; 6, 7: likewise by compile()");
+    CodeHarbour x = new CodeHarbour();
+    counts(x, 0, 0, 0, 0);
+    Ledger.loads(x, "one", 0, -1, HALTING);
+    counts(x, 1, 0, 0, 0);
+    for (int fault = 1; fault <= 9; fault++) {
+      Ledger.loads(x, "fault " + fault, fault, placeOf(fault), packageOf(fault));
+      counts(x, 1, fault, 0, 0);
+    }
+    Ledger.source(x, "", 0, -1);
+    counts(x, 1, 9, 1, 0);
+    Ledger.source(x, "return 2;", 0, -1);
+    counts(x, 1, 9, 2, 0);
+    Ledger.source(x, "?", 1, 0);
+    counts(x, 1, 9, 2, 1);
+    Ledger.source(x, "return 1;".repeat(400), 6, 0);
+    counts(x, 1, 9, 2, 2);
+    Ledger.loads(x, "another one", 0, -1, HALTING);
+    x.policy(0, 256, 0, 256);
+    x.run(1);
+    counts(x, 2, 9, 2, 2);
+    Ledger.sentence("Promise 14", "told(): 0 for another what");
+    for (int what : new int[] {-1, 8, 9, 256, LEAST, MOST, LEAST + 4}) {
+      Ledger.due("told(" + what + ")", x.told(what), 0);
+    }
   }
 
   private static void strays() {
-    promise = "15";
+    Ledger.sentence("Promise 15",
+        "How many steps of all run()s read or wrote a cell that may not be, or went to a place where no"
+        + " instruction is");
     CodeHarbour x = new CodeHarbour();
+    Ledger.due("before one", x.strays(), 0);
     x.policy(2, 6, 3, 5);
-    compile(x, "arr a[2]; for i = 0 .. 2 { a[i] = a[1 - i] + 1; } return a[1];");
-    for (int fuel = 0; fuel < 60; fuel += 7) {
+    Ledger.source(x, "arr a[2]; for i = 0 .. 2 { a[i] = a[1 - i] + 1; } return a[1];", 0, -1);
+    for (int fuel = 0; fuel < 90; fuel += 3) {
       x.run(fuel);
-      due("strays", x.strays(), 0);
+      Ledger.due("strays() of " + fuel, x.strays(), 0);
     }
-    load(x, 80, 0, 2, 0, 0, ins(7, 0, 1, 0), HALT, 99);
-    due("watched", x.watch(9), 5);
-    due("strays", x.strays(), 0);
+    Ledger.source(x, "arr a[2]; return a[2];", 0, -1);
+    Ledger.due("a trap", x.run(20), 2);
+    Ledger.due("strays()", x.strays(), 0);
+    Ledger.loads(x, "the edges", 0, -1, Wire.code(0, Wire.ld(0, 1, 2), Wire.ld(0, 1, 5), Wire.st(0, 1, 3),
+        Wire.st(0, 1, 4),
+        Wire.HALT), 33, 33, 36, 36, 35, 33, 33, 36, 36, 35, 33, 33, 36, 36, 33, 33, 36, 36, 32);
+    Ledger.due("run()", x.run(20), 1);
+    Ledger.due("strays()", x.strays(), 0);
+    Ledger.sentence("Promise 15",
+        "of all run()s: what is watched is ended ahead of such a step, and is no run()");
+    Ledger.holds(x, Wire.st(0, 1, 0), Wire.HALT);
+    Ledger.due("watch()", x.watch(9), 5);
+    Ledger.holds(x, Wire.ld(0, 1, 6), Wire.HALT);
+    Ledger.due("watch()", x.watch(9), 4);
+    Ledger.due("strays()", x.strays(), 0);
+  }
+
+  /** d of 7 over numbers, without wrapping, and then the lowest 64 bits of it, with sign. */
+  private static long digestOf(int[] cells, int... rest) {
+    BigInteger d = BigInteger.valueOf(7);
+    BigInteger by = BigInteger.valueOf(31);
+    for (int c : cells) {
+      d = d.multiply(by).add(BigInteger.valueOf(c));
+    }
+    for (int r : rest) {
+      d = d.multiply(by).add(BigInteger.valueOf(r));
+    }
+    return d.longValue();
   }
 
   private static void digest() {
-    promise = "16";
+    Ledger.sentence("Promise 16",
+        "d, of 7, goes over numbers x: d * 31 + x, wrapping, one behind the other: the cells, result(),"
+        + " steps(), told(0) to told(7)");
     CodeHarbour x = new CodeHarbour();
     int[] cells = new int[256];
-    cells[0] = -1;
-    cells[7] = 2147483647;
-    cells[255] = 77;
-    x.poke(0, -1);
-    x.poke(7, 2147483647);
-    x.poke(255, 77);
-    due("cells", x.digest(), digestOf(cells, 0, 0, 0, 0, 0, 0, 0, 0, 0, 0));
-    compile(x, "return - 4;");
+    Ledger.due("a new object", x.digest(), digestOf(cells, 0, 0, 0, 0, 0, 0, 0, 0, 0, 0));
+    for (int cell : new int[] {0, 1, 7, 100, 254, 255}) {
+      for (int v : new int[] {1, -1, LEAST, MOST, cell}) {
+        cells[cell] = v;
+        x.poke(cell, v);
+        Ledger.due("cell " + cell, x.digest(), digestOf(cells, 0, 0, 0, 0, 0, 0, 0, 0, 0, 0));
+      }
+    }
+    Ledger.source(x, "return - 4;", 0, -1);
+    Ledger.due("a compile()", x.digest(), digestOf(cells, 0, 0, 10, 0, 1, 1, 0, 0, 1, 0));
     x.run(100);
-    // MARK, LI, LI, SUB, HALT, and 5.
-    due("a run", x.digest(), digestOf(cells, -4, 5, 10, 0, 1, 1, 0, 0, 1, 0));
-    load(x, 80, 0, 2, 0, 1, ins(15, 0, 0, 0), HALT, 16, 33);
-    due("a load", x.digest(), digestOf(cells, -4, 5, 2, 12, 1, 0, 0, 1, 1, 0));
-    compile(x, "}");
-    due("a compile", x.digest(), digestOf(cells, -4, 5, 0, 0, 0, 0, 0, 1, 1, 1));
-    due("it changes nothing", x.digest(), x.digest());
+    Ledger.due("a run()", x.digest(), digestOf(cells, -4, 5, 10, 0, 1, 1, 0, 0, 1, 0));
+    Ledger.loads(x, "PART 0", 7, 20, Wire.code(1, Wire.mark(0), Wire.HALT), 16, 99);
+    Ledger.due("a load() with a FAULT", x.digest(), digestOf(cells, -4, 5, 2, 12, 1, 0, 0, 1, 1, 0));
+    Ledger.loads(x, "HALT", 0, -1, HALTING);
+    Ledger.due("a load()", x.digest(), digestOf(cells, -4, 5, 1, 1, 1, 1, 1, 1, 1, 0));
+    Ledger.source(x, "}", 2, 0);
+    Ledger.due("a compile() with a FAULT", x.digest(), digestOf(cells, -4, 5, 0, 0, 0, 0, 1, 1, 1, 1));
+    Ledger.holds(x, Wire.mov(0, 0), Wire.ld(0, 0, LEAST), Wire.HALT);
+    x.watch(9);
+    Ledger.due("a watch()", x.digest(), digestOf(cells, LEAST, 1, 3, 14, 1, 0, 1, 2, 1, 1));
+    Ledger.due("it changes nothing", x.digest(), digestOf(cells, LEAST, 1, 3, 14, 1, 0, 1, 2, 1, 1));
   }
 
   public static void main(String[] args) {
@@ -566,11 +703,9 @@ public final class Promises {
     resultAndSteps();
     pokeAndPeek();
     told();
+    toldCounts();
     strays();
     digest();
-    System.out.println(wrong == 0 ? "all answers are as due" : wrong + " answers are not as due");
-    if (wrong != 0) {
-      System.exit(1);
-    }
+    Ledger.close();
   }
 }

@@ -8,6 +8,9 @@ final class Ledger {
   private static String sentence = "no sentence yet";
   private static int sentences = 0;
   private static int wrong = 0;
+  // An object that has seen what was asked before, as long as it may be used, answers as a new one.
+  private static CodeHarbour worn = new CodeHarbour();
+  private static int wornCalls = 0;
 
   private Ledger() {
   }
@@ -30,6 +33,16 @@ final class Ledger {
     if (wrong != 0) {
       System.exit(1);
     }
+  }
+
+  private static CodeHarbour worn(int bytes) {
+    int calls = bytes / 20 + 8;
+    if (wornCalls + calls > 512) {
+      worn = new CodeHarbour();
+      wornCalls = 0;
+    }
+    wornCalls += calls;
+    return worn;
   }
 
   // ---- the tape
@@ -70,9 +83,11 @@ final class Ledger {
     due(what + ": in", x.told(3), fault == 0 ? 1 : 0);
   }
 
+  /** On an object that was used before, too; the new one is answered. */
   static CodeHarbour loads(String what, int fault, int place, Object... parts) {
     CodeHarbour x = new CodeHarbour();
     loads(x, what, fault, place, parts);
+    loads(worn(Wire.join(parts).length), "used again, " + what, fault, place, parts);
     return x;
   }
 
@@ -105,12 +120,15 @@ final class Ledger {
   /** A source has this FAULT; it is seen where ^ stands, which is not part of it. */
   static void faulty(int fault, String marked) {
     int place = marked.indexOf('^');
-    source(new CodeHarbour(), marked.replace("^", ""), fault, place);
+    String words = marked.replace("^", "");
+    source(new CodeHarbour(), words, fault, place);
+    source(worn(words.length()), words, fault, place);
   }
 
   static CodeHarbour well(String words) {
     CodeHarbour x = new CodeHarbour();
     source(x, words, 0, -1);
+    source(worn(words.length()), words, 0, -1);
     return x;
   }
 
