@@ -114,8 +114,23 @@ public final class Part2Formulas {
       Ledger.shows("the same", Wire.all(many, Wire.then(deeper, deeper)), open, 34, 64, 0);
       for (byte[][] pair : new byte[][][] {{below, above}, {below, itself}, {itself, above},
           {deeper, deeperTurned}}) {
-        Ledger.fails("variable " + i, 8, many + 1, Wire.all(many, Wire.then(pair[0], pair[1])), open, 34, 64, 0);
+        Ledger.fails("variable " + i, 8, many + 1, Wire.all(many, Wire.then(pair[0], pair[1])), open, 34, 64,
+            0);
       }
+    }
+  }
+
+  /** As above, behind many hypotheses, of which each is a binder, too; and further in. */
+  private static void manyHypotheses() {
+    Ledger.sentence("Part 2",
+        "binders for binders: each is another one than all that stand around it, of either sort");
+    byte[] below = Wire.and(Wire.TRUE, Wire.all(Wire.less(Wire.var(0), Wire.var(1))));
+    byte[] above = Wire.and(Wire.TRUE, Wire.all(Wire.less(Wire.var(1), Wire.var(0))));
+    for (int many = 0; many < 30; many++) {
+      byte[] same = Wire.join(Wire.times(many, 18, 16), Wire.all(Wire.then(below, below)));
+      byte[] other = Wire.join(Wire.times(many, 18, 16), Wire.all(Wire.then(below, above)));
+      Ledger.shows("behind " + many, same, Wire.times(many, 34), 35, 34, 64, 0);
+      Ledger.fails("behind " + many, 8, many + 2, other, Wire.times(many, 34), 35, 34, 64, 0);
     }
   }
 
@@ -212,6 +227,7 @@ public final class Part2Formulas {
     sameness();
     moved();
     manyBinders();
+    manyHypotheses();
     fitting();
     reckoned();
     claims();

@@ -1,3 +1,5 @@
+import java.util.Random;
+
 /**
  * Part 3 of the document, THE OBLIGATION, sentence by sentence. That a PART is a formula F, to the
  * letter, is seen by PUT F 0 0: it has fault 8 if W is not F, else what stands behind it is read.
@@ -195,6 +197,66 @@ public final class Part3Obligation {
     pathOf("MARK", Wire.mov(0, 0), ofAll(r));
   }
 
+  /** The term that register a has behind an instruction of ops 0 to 5. */
+  private static byte[] term(byte[][] r, int op, int b, int n) {
+    return switch (op) {
+      case 0 -> Wire.num(n);
+      case 1 -> r[b];
+      case 2 -> Wire.plus(r[b], r[n]);
+      case 3 -> Wire.minus(r[b], r[n]);
+      case 4 -> Wire.product(r[b], r[n]);
+      default -> Wire.plus(r[b], Wire.num(n));
+    };
+  }
+
+  /** What ops 6 to 12 make of the PATH behind them, which is a claim, as is that of the MARK they jump to. */
+  private static byte[] last(byte[][] r, int op, int a, int b, int n) {
+    byte[] claim = ofAll(r);
+    return switch (op) {
+      case 6 -> Wire.and(within(0, 256, Wire.plus(r[b], Wire.num(n))), Wire.all(ofAll(with(r, a,
+          Wire.var(0)))));
+      case 7 -> Wire.and(within(0, 256, Wire.plus(r[b], Wire.num(n))), claim);
+      case 8 -> claim;
+      case 9 -> Wire.and(Wire.then(Wire.less(r[a], r[b]), claim), Wire.then(Wire.atMost(r[b], r[a]), claim));
+      case 10 -> Wire.and(Wire.then(Wire.atMost(r[a], r[b]), claim), Wire.then(Wire.less(r[b], r[a]), claim));
+      case 11 -> Wire.and(Wire.then(Wire.equal(r[a], r[b]), claim), Wire.then(Wire.unequal(r[a], r[b]),
+          claim));
+      default -> Wire.and(Wire.then(Wire.unequal(r[a], r[b]), claim), Wire.then(Wire.equal(r[a], r[b]),
+          claim));
+    };
+  }
+
+  private static void longPaths() {
+    Ledger.sentence("Part 3", "the PATH from the next place: instructions behind one another, and its NODES");
+    Random random = new Random(3);
+    for (int i = 0; i < 140; i++) {
+      byte[][] r = zeros();
+      byte[] code = new byte[0];
+      int many = 1 + random.nextInt(9);
+      for (int k = 0; k < many; k++) {
+        int a = random.nextInt(8);
+        int b = random.nextInt(8);
+        int op = random.nextInt(6);
+        int n = op == 1 ? 0 : random.nextInt(8);
+        if (Wire.nodes(term(r, op, b, n)) > 50) {
+          op = 0;
+        }
+        code = Wire.join(code, Wire.ins(op, a, op == 0 ? 0 : b, n));
+        r = with(r, a, term(r, op, b, n));
+      }
+      int op = 6 + i % 7;
+      int a = op == 8 ? 0 : random.nextInt(8);
+      int b = op == 8 ? 0 : random.nextInt(8);
+      int n = op < 8 ? random.nextInt(9) : many + 1;
+      byte[] opening = Wire.join(Wire.head(many + 3, 1), code, Wire.ins(op, a, b, n), Wire.mark(0), Wire.HALT,
+          claimOfAll());
+      byte[] part0 = last(r, op, a, b, n);
+      CodeHarbour x = partIs(new CodeHarbour(), "path " + i, opening, new byte[0], part0);
+      Ledger.due("NODES of path " + i, x.told(1),
+          Wire.nodes(part0) + Wire.nodes(partOf(ofAll(variables(0)), Wire.TRUE)));
+    }
+  }
+
   private static void nodes() {
     Ledger.sentence("Part 3",
         "NODES: each number, variable, operation, relation, TRUE, AND, IF-THEN, ALL is one,"
@@ -230,6 +292,7 @@ public final class Part3Obligation {
     plainPaths();
     cellPaths();
     jumpPaths();
+    longPaths();
     nodes();
     Ledger.close();
   }

@@ -4,7 +4,7 @@ import java.util.List;
 
 /** Part 4 of the document, DERIVATIONS: each rule where W is as it must be, and where it just is not. */
 public final class Part4Rules {
-  private static final String LETTERS = "xyzktu";
+  private static final String LETTERS = "wxyzktu";
   private static final int MANY = LETTERS.length();
   private static final byte[] OPEN = Wire.times(MANY, 35);
 
@@ -45,22 +45,27 @@ public final class Part4Rules {
     return all;
   }
 
+  /** Left side, relation, right side. */
+  private static String[] parted(String relation) {
+    String[] sides = relation.split(" (<|<=|=|!=|FITS) ");
+    int end = relation.length() - sides[1].length() - 1;
+    return new String[] {sides[0], relation.substring(sides[0].length() + 1, end), sides[1]};
+  }
+
   /** What is near a premise, but is not it: another relation, another side, both turned round. */
   private static List<String> near(String premise) {
-    List<String> relations = List.of("<", "<=", "=", "!=", "FITS");
-    String[] parts = premise.split(" (<|<=|=|!=|FITS) ");
-    String relation = premise.substring(parts[0].length() + 1, premise.length() - parts[1].length() - 1);
+    String[] parts = parted(premise);
     List<String> all = new ArrayList<>();
-    for (String r : relations) {
-      if (!r.equals(relation)) {
-        all.add(parts[0] + " " + r + " " + parts[1]);
+    for (String r : List.of("<", "<=", "=", "!=", "FITS")) {
+      if (!r.equals(parts[1])) {
+        all.add(parts[0] + " " + r + " " + parts[2]);
       }
     }
-    all.add("z " + relation + " " + parts[1]);
-    all.add(parts[0] + " " + relation + " z");
-    all.add(parts[0] + " + 0 " + relation + " " + parts[1]);
-    if (!parts[0].equals(parts[1])) {
-      all.add(parts[1] + " " + relation + " " + parts[0]);
+    all.add("w " + parts[1] + " " + parts[2]);
+    all.add(parts[0] + " " + parts[1] + " w");
+    all.add(parts[0] + " + 0 " + parts[1] + " " + parts[2]);
+    if (!parts[0].equals(parts[2])) {
+      all.add(parts[2] + " " + parts[1] + " " + parts[0]);
     }
     return all;
   }
@@ -83,6 +88,76 @@ public final class Part4Rules {
             whole(f(w), wrong), d);
       }
     }
+    within(tag, w, terms, true, premises);
+  }
+
+  /** The derivation of a rule within other ones: so many hypotheses, of which the first are its premises. */
+  private static byte[] inner(int tag, String[] terms, int premises, int hypotheses) {
+    byte[] d = Wire.join(tag, terms(hypotheses, terms));
+    for (int i = 0; i < premises; i++) {
+      d = Wire.join(d, 64, hypotheses - 1 - i);
+    }
+    return d;
+  }
+
+  /** A rule whose W is of sides that come from elsewhere: one of a formula, one of a rule's term, or both. */
+  private static void within(int tag, String w, String[] terms, boolean well, String... premises) {
+    if (w.equals("TRUE")) {
+      return;
+    }
+    String[] sides = parted(w);
+    if (sides[1].equals("<=") || sides[1].equals("<")) {
+      chained(tag, w, terms, well, true, premises);
+      chained(tag, w, terms, well, false, premises);
+    } else if (sides[1].equals("!=")) {
+      String[] more = Arrays.copyOf(premises, premises.length + 1);
+      more[premises.length] = sides[0] + " <= " + sides[2];
+      chained(tag, w, terms, well, true, more);
+      chained(tag, w, terms, well, false, more);
+    } else if (sides[1].equals("=")) {
+      put(tag, w, terms, well, premises);
+    }
+  }
+
+  /** W is one side of a CHAIN (40), of 41 or 42; the other side is a hypothesis. */
+  private static void chained(int tag, String w, String[] terms, boolean well, boolean first,
+      String... premises) {
+    String[] sides = parted(w);
+    boolean apart = sides[1].equals("!=");
+    boolean less = apart || sides[1].equals("<");
+    int many = premises.length + 1;
+    String wanted = first ? sides[0] + (less ? " < w" : " <= w") : (less ? "w < " : "w <= ") + sides[2];
+    List<byte[]> given = formulas(Arrays.asList(premises));
+    given.add(f(first ? sides[2] + " <= w" : "w <= " + sides[0]));
+    byte[] middle = terms(many, first ? sides[2] : sides[0]);
+    byte[] ahead = Wire.join(!less ? 40 : first ? 41 : 42, middle, first ? NONE : Wire.join(64, 0));
+    // BELOW shows x < y from x <= y, a hypothesis, and x != y.
+    byte[] below = apart ? Wire.join(51, 64, 1) : NONE;
+    byte[] rule = inner(tag, terms, premises.length - (apart ? 1 : 0), many);
+    byte[] d = Wire.join(OPEN, Wire.times(many, 34), ahead, below, rule, first ? Wire.join(64, 0) : NONE);
+    String what = tag + " of " + w + (first ? ", its left side given" : ", its right side given");
+    if (well) {
+      Ledger.shows(what, whole(f(wanted), given), d);
+    } else {
+      Ledger.fails(what, 8, MANY + many + ahead.length + below.length, whole(f(wanted), given), d);
+    }
+  }
+
+  /** W is what the first derivation of a PUT shows: both of its sides are terms of that rule. */
+  private static void put(int tag, String w, String[] terms, boolean well, String... premises) {
+    String[] sides = parted(w);
+    int many = premises.length + 1;
+    List<byte[]> given = formulas(Arrays.asList(premises));
+    given.add(f(sides[0] + " < w"));
+    byte[] ahead = Wire.join(38, Wire.less(Wire.var(0), Wire.var(MANY - 1 + many + 1)), terms(many, sides[0],
+        sides[2]));
+    byte[] d = Wire.join(OPEN, Wire.times(many, 34), ahead, inner(tag, terms, premises.length, many), 64, 0);
+    if (well) {
+      Ledger.shows(tag + " of " + w + " in a PUT", whole(f(sides[2] + " < w"), given), d);
+    } else {
+      Ledger.fails(tag + " of " + w + " in a PUT", 8, MANY + many + ahead.length,
+          whole(f(sides[2] + " < w"), given), d);
+    }
   }
 
   /** W is not as it must be: fault 8 at the rule's tag, ahead of its derivations. */
@@ -90,6 +165,7 @@ public final class Part4Rules {
     byte[] read = terms(0, terms);
     for (String w : wrong) {
       Ledger.fails(tag + " of " + w, 8, MANY, Wire.all(MANY, f(w)), OPEN, tag, read, 99);
+      within(tag, w, terms, false);
     }
   }
 
@@ -142,6 +218,24 @@ public final class Part4Rules {
     }
   }
 
+  /** Registers that are numbers: what stands for them is reckoned, in all of W or in a side of it. */
+  private static void registersReckoned() {
+    byte[][] code = {Wire.li(1, 3), Wire.li(2, 9), Wire.addi(3, 2, 4), Wire.mark(0), Wire.HALT};
+    byte[] sum = Wire.plus(Wire.product(Wire.reg(1), Wire.reg(3)), Wire.minus(Wire.reg(2), Wire.reg(1)));
+    byte[] claim = Wire.equal(sum, Wire.num(3 * 13 + 6));
+    Ledger.loads("registers in a term", 0, -1, Wire.code(1, code), claim, 36, Wire.PART_OF_TRUE);
+    byte[] wrong = Wire.equal(sum, Wire.num(3 * 13 + 7));
+    Ledger.loads("another number", 8, 5 + 7 * 5 + wrong.length, Wire.code(1, code), wrong, 36,
+        Wire.PART_OF_TRUE);
+    byte[] order = Wire.atMost(Wire.reg(1), Wire.plus(Wire.reg(2), Wire.reg(3)));
+    Ledger.loads("either side of a CHAIN", 0, -1, Wire.code(1, code), order, 40, Wire.num(5), 36, 36,
+        Wire.PART_OF_TRUE);
+    Ledger.loads("the left side of a CHAIN", 8, 5 + 7 * 5 + order.length + 6, Wire.code(1, code), order, 40,
+        Wire.num(2), 36, 36, Wire.PART_OF_TRUE);
+    Ledger.loads("the right side of a CHAIN", 8, 5 + 7 * 5 + order.length + 7, Wire.code(1, code), order, 40,
+        Wire.num(23), 36, 36, Wire.PART_OF_TRUE);
+  }
+
   private static void reckoning() {
     Ledger.sentence("Part 4", "36 RECKON: W is a relation, with no variable in it, and holds");
     String[] signs = {"<", "<=", "=", "!="};
@@ -167,6 +261,7 @@ public final class Part4Rules {
         "0 < 1 + x * 0");
     refusesFormulas(36, NONE, Wire.TRUE, AN_AND, AN_IF, AN_ALL, Wire.and(f("1 = 1"), f("1 = 1")),
         Wire.all(f("1 = 1")));
+    registersReckoned();
     Ledger.sentence("Part 4", "37 SAME: W is x = x");
     rule(37, "x = x", t());
     rule(37, "x + 2 * y = x + 2 * y", t());
@@ -296,6 +391,14 @@ public final class Part4Rules {
     rule(56, "y FITS k", t("t", "u"), "t <= y", "y <= u", "t FITS k", "u FITS k");
     rule(56, "y * 2 FITS k - x", t("t + 1", "u - 1"), "t + 1 <= y * 2", "y * 2 <= u - 1", "t + 1 FITS k - x",
         "u - 1 FITS k - x");
+    // Within a SHIFT: x FITS k is of a formula, t FITS k of a term and a formula.
+    List<byte[]> given = formulas(List.of("x <= y", "y <= t", "z <= x", "x <= u", "z FITS k", "u FITS k",
+        "z <= t",
+        "t <= u"));
+    Ledger.shows("56 in 45", whole(f("x + k <= y + k"), given), OPEN, Wire.times(8, 34), 45, terms(8, "t"),
+        64, 7, 64,
+        6, 56, terms(8, "z", "u"), 64, 5, 64, 4, 64, 3, 64, 2, 56, terms(8, "z", "u"), 64, 1, 64, 0, 64, 3,
+        64, 2);
     refuses(56, t("t", "u"), "y < k", "y <= k", "y = k", "y != k");
     refusesFormulas(56, terms(0, "t", "u"), Wire.TRUE, AN_ALL);
   }
@@ -371,6 +474,13 @@ public final class Part4Rules {
     byte[] turned = terms(2, "u", "t");
     Ledger.fails("u and t", 8, p + 3, w, OPEN, 34, 34, 53, turned, 67, 64, 2, 64, 0, 67, 64, 1, 64, 0);
     Ledger.fails("p shows another one", 8, p, w, OPEN, 34, 34, 53, read, 64, 0, 67, 64, 1, 64, 0);
+    // W is x <= y, of which a CHAIN has given one side.
+    List<byte[]> given = formulas(List.of("x <= y", "y <= w", "w <= x"));
+    Ledger.shows("CASES of a left side", whole(f("x <= w"), given), OPEN, 34, 34, 34, 40, terms(3, "y"), 53,
+        terms(3, "t", "u"), 64, 3, 64, 3, 64, 1);
+    Ledger.shows("CASES of a right side", whole(f("w <= y"), given), OPEN, 34, 34, 34, 40, terms(3, "x"), 64,
+        0, 53,
+        terms(3, "t", "u"), 64, 3, 64, 3);
     Ledger.shows("CASES of a formula", Wire.all(MANY, Wire.then(AN_AND, AN_AND)), OPEN, 34, 53, terms(1, "t",
         "u"),
         64, 1, 64, 1);
@@ -447,6 +557,14 @@ public final class Part4Rules {
         terms(1, "y"), 64, 0);
     byte[] overX = Wire.all(Wire.less(Wire.var(6), Wire.var(0)));
     Ledger.shows("ALL within ALL", whole(overX, List.of(two)), OPEN, 34, 68, terms(1, "x"), 64, 0);
+    // ALL v (v < x IF-THEN v = y), for a term: what is to be shown, and what is told.
+    byte[] law = Wire.all(Wire.then(Wire.less(Wire.var(0), Wire.var(6)), Wire.equal(Wire.var(0),
+        Wire.var(5))));
+    byte[] ofTerm = whole(f("t + 1 = y"), List.of(law, f("t + 1 < x")));
+    Ledger.shows("THEN of FOR", ofTerm, OPEN, 34, 34, 67, 68, terms(2, "t + 1"), 64, 1, 64, 0);
+    Ledger.fails("THEN of FOR, another term", 8, MANY + 2 + 2 + terms(2, "t + 2").length + 2, ofTerm, OPEN,
+        34, 34, 67, 68,
+        terms(2, "t + 2"), 64, 1, 64, 0);
     // The term is not caught by the ALL that it comes to stand in.
     byte[] caught = Wire.all(Wire.less(Wire.var(0), Wire.var(0)));
     Ledger.fails("nothing is caught", 8, MANY + 1, whole(caught, List.of(two)), OPEN, 34, 68, terms(1, "u"),

@@ -457,54 +457,90 @@ public final class Promises {
     Ledger.due("behind a policy()", y.watch(1), -1);
   }
 
-  private static void resultAndSteps() {
-    Ledger.sentence("Promise 10",
-        "Of the latest run() or watch() that was done: what it ended with: register 0, the TRAP's n, the"
-        + " cell; 0 for 3, and before one");
-    Ledger.sentence("Promise 11", "How many steps it took; 0 before one");
+  private static void result() {
+    Ledger.sentence("Promise 10", "result(): 0 before one");
     CodeHarbour x = new CodeHarbour();
-    Ledger.due("result() before one", x.result(), 0);
-    Ledger.due("steps() before one", x.steps(), 0);
+    Ledger.due("before one", x.result(), 0);
     x.run(5);
     x.watch(5);
-    Ledger.due("result() before one that was done", x.result(), 0);
-    Ledger.due("steps() before one that was done", x.steps(), 0);
+    Ledger.due("before one that was done", x.result(), 0);
     Ledger.loads(x, "HALT", 0, -1, Wire.code(0, Wire.li(0, -7), Wire.HALT), 32);
-    Ledger.due("result() before one", x.result(), 0);
+    Ledger.due("behind a load()", x.result(), 0);
+    Ledger.sentence("Promise 10", "what it ended with: register 0, the TRAP's n, the cell; 0 for 3");
     x.run(5);
     Ledger.due("register 0", x.result(), -7);
-    Ledger.due("steps()", x.steps(), 2);
+    x.watch(2);
+    Ledger.due("register 0, watched", x.result(), -7);
+    x.run(1);
+    Ledger.due("0 for 3, though register 0 is -7", x.result(), 0);
+    x.run(2);
+    x.watch(1);
+    Ledger.due("0 for 3, watched", x.result(), 0);
     Ledger.loads(x, "TRAP", 0, -1, Wire.code(0, Wire.li(0, -7), Wire.li(1, 1), Wire.trap(42)), 32);
-    Ledger.due("result() stays", x.result(), -7);
-    Ledger.due("steps() stay", x.steps(), 2);
     x.run(3);
     Ledger.due("the TRAP's n", x.result(), 42);
-    Ledger.due("steps()", x.steps(), 3);
+    x.run(2);
+    x.watch(3);
+    Ledger.due("the TRAP's n, watched", x.result(), 42);
+    Ledger.holds(x, Wire.li(0, 5), Wire.ld(0, 0, 999), Wire.HALT);
+    x.watch(9);
+    Ledger.due("the cell of LD", x.result(), 1004);
+    Ledger.holds(x, Wire.li(0, 5), Wire.st(0, 0, -6), Wire.HALT);
+    x.watch(9);
+    Ledger.due("the cell of ST", x.result(), -1);
+    Ledger.sentence("Promise 10", "Of the latest run() or watch() that was done");
     x.run(-1);
     x.run(20001);
+    x.run(5);
     x.watch(-1);
-    Ledger.due("what was not done leaves result()", x.result(), 42);
-    Ledger.due("what was not done leaves steps()", x.steps(), 3);
-    x.run(2);
-    Ledger.due("0 for 3", x.result(), 0);
-    Ledger.due("steps()", x.steps(), 2);
-    x.watch(3);
-    Ledger.due("watched", x.result(), 42);
-    Ledger.due("watched steps()", x.steps(), 3);
-    x.watch(1);
-    Ledger.due("0 for 3", x.result(), 0);
-    Ledger.due("steps()", x.steps(), 1);
-    Ledger.holds(x, Wire.mov(0, 0), Wire.ld(0, 0, 999), Wire.HALT);
-    Ledger.due("result() stays", x.result(), 0);
-    x.watch(9);
-    Ledger.due("the cell", x.result(), 999);
-    Ledger.due("steps()", x.steps(), 1);
-    x.policy(0, 256, 0, 256);
+    x.watch(20001);
+    Ledger.due("what was not done leaves it", x.result(), -1);
+    Ledger.loads(x, "a load()", 0, -1, HALTING);
+    Ledger.source(x, "return 6;", 0, -1);
     Ledger.source(x, "return;", 2, 6);
-    x.run(1);
     x.poke(0, 1);
-    Ledger.due("result() stays", x.result(), 999);
-    Ledger.due("steps() stay", x.steps(), 1);
+    x.policy(0, 256, 0, 256);
+    x.watch(1);
+    Ledger.due("other calls leave it", x.result(), -1);
+    Ledger.source(x, "return 6;", 0, -1);
+    x.run(9);
+    Ledger.due("a later one", x.result(), 6);
+    x.run(0);
+    Ledger.due("the latest one", x.result(), 0);
+  }
+
+  private static void steps() {
+    Ledger.sentence("Promise 11", "steps(): 0 before one");
+    CodeHarbour x = new CodeHarbour();
+    Ledger.due("before one", x.steps(), 0);
+    x.run(5);
+    x.watch(5);
+    Ledger.due("before one that was done", x.steps(), 0);
+    Ledger.sentence("Promise 11", "How many steps it took");
+    Ledger.loads(x, "TRAP", 0, -1, Wire.code(0, Wire.li(0, -7), Wire.li(1, 1), Wire.trap(42)), 32);
+    for (int fuel = 0; fuel < 6; fuel++) {
+      x.run(fuel);
+      Ledger.due("run(" + fuel + ")", x.steps(), Math.min(fuel, 3));
+      x.watch(5 - fuel);
+      Ledger.due("watch(" + (5 - fuel) + ")", x.steps(), Math.min(5 - fuel, 3));
+    }
+    Ledger.holds(x, Wire.mov(0, 0), Wire.mov(0, 0), Wire.ld(0, 0, 999), Wire.HALT);
+    x.watch(9);
+    Ledger.due("ahead of a LD", x.steps(), 2);
+    Ledger.sentence("Promise 11", "it: the latest run() or watch() that was done");
+    x.run(5);
+    x.watch(-1);
+    x.watch(20001);
+    Ledger.due("what was not done leaves it", x.steps(), 2);
+    Ledger.source(x, "return 6;", 0, -1);
+    x.run(-1);
+    x.run(20001);
+    x.policy(0, 256, 0, 256);
+    x.run(5);
+    Ledger.due("other calls leave it", x.steps(), 2);
+    Ledger.source(x, "return 6;", 0, -1);
+    x.run(9);
+    Ledger.due("a later one", x.steps(), 3);
   }
 
   private static void pokeAndPeek() {
@@ -700,7 +736,8 @@ public final class Promises {
     fault();
     run();
     watch();
-    resultAndSteps();
+    result();
+    steps();
     pokeAndPeek();
     told();
     toldCounts();

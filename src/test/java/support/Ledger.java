@@ -7,6 +7,7 @@ import java.nio.charset.StandardCharsets;
 final class Ledger {
   private static String sentence = "no sentence yet";
   private static int sentences = 0;
+  private static int asked = 0;
   private static int wrong = 0;
   // An object that has seen what was asked before, as long as it may be used, answers as a new one.
   private static CodeHarbour worn = new CodeHarbour();
@@ -17,11 +18,22 @@ final class Ledger {
 
   /** What is asked from here on is what this sentence of this part or promise says. */
   static void sentence(String where, String words) {
+    endSentence();
     sentence = where + ", \"" + words + "\"";
     sentences++;
   }
 
+  /** A sentence of which nothing is asked has no test. */
+  private static void endSentence() {
+    if (asked == 0 && sentences > 0) {
+      wrong++;
+      System.out.println(sentence + ": nothing was asked");
+    }
+    asked = 0;
+  }
+
   static void due(String what, long got, long want) {
+    asked++;
     if (got != want) {
       wrong++;
       System.out.println(sentence + ": " + what + " answered " + got + ", due is " + want);
@@ -29,10 +41,12 @@ final class Ledger {
   }
 
   static void close() {
+    endSentence();
     System.out.println(sentences + " sentences, " + wrong + " answers are not as due");
     if (wrong != 0) {
       System.exit(1);
     }
+    sentences = 0;
   }
 
   private static CodeHarbour worn(int bytes) {
