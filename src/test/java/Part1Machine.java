@@ -53,8 +53,8 @@ public final class Part1Machine {
   }
 
   private static void reads(CodeHarbour x, int cell, int where) {
-    Ledger.loads(x, "LD " + cell, where == MAY ? 0 : 8, reckonAt(where, 2),
-        Wire.code(0, Wire.ld(0, 1, cell), Wire.HALT), 33, 33, 36, 36, 35, 32);
+    Ledger.loads(x, "LD " + cell, where == MAY ? 0 : 8, reckonAt(where, 2), Wire.code(0, Wire.ld(0, 1, cell),
+        Wire.HALT), 33, 33, 36, 36, 35, 32);
     Ledger.due("watch() of LD " + cell, x.watch(9), where == MAY ? 1 : 4);
     Ledger.due("result() of LD " + cell, x.result(), where == MAY ? x.peek(cell) : cell);
     Ledger.due("steps() of LD " + cell, x.steps(), where == MAY ? 2 : 0);
@@ -63,8 +63,8 @@ public final class Part1Machine {
   private static void writes(CodeHarbour x, int cell, int where) {
     boolean isCell = cell >= 0 && cell < 256;
     x.poke(cell, 3);
-    Ledger.loads(x, "ST " + cell, where == MAY ? 0 : 8, reckonAt(where, 3),
-        Wire.code(0, Wire.li(2, 7), Wire.st(2, 1, cell), Wire.HALT), 33, 33, 36, 36, 32);
+    Ledger.loads(x, "ST " + cell, where == MAY ? 0 : 8, reckonAt(where, 3), Wire.code(0, Wire.li(2, 7),
+        Wire.st(2, 1, cell), Wire.HALT), 33, 33, 36, 36, 32);
     Ledger.due("watch() of ST " + cell, x.watch(9), where == MAY ? 1 : 5);
     Ledger.due("result() of ST " + cell, x.result(), where == MAY ? 0 : cell);
     Ledger.due("steps() of ST " + cell, x.steps(), where == MAY ? 3 : 1);
@@ -134,12 +134,11 @@ public final class Part1Machine {
     Ledger.sentence("Part 1", "2 ADD a becomes b + c. 3 SUB b - c. 4 MUL b * c");
     int[] results = {26, 16, 105};
     for (int op = 2; op <= 4; op++) {
-      gives("op " + op, results[op - 2], Wire.li(6, 21), Wire.li(7, 5), Wire.ins(op, 0, 6, 7),
+      gives("op " + op, results[op - 2], Wire.li(6, 21), Wire.li(7, 5), Wire.ins(op, 0, 6, 7), Wire.HALT);
+      gives("op " + op + " into b", results[op - 2], Wire.li(0, 21), Wire.li(7, 5), Wire.ins(op, 0, 0, 7),
           Wire.HALT);
-      gives("op " + op + " into b", results[op - 2], Wire.li(0, 21), Wire.li(7, 5),
-          Wire.ins(op, 0, 0, 7), Wire.HALT);
-      gives("op " + op + " into c", results[op - 2], Wire.li(6, 21), Wire.li(0, 5),
-          Wire.ins(op, 0, 6, 0), Wire.HALT);
+      gives("op " + op + " into c", results[op - 2], Wire.li(6, 21), Wire.li(0, 5), Wire.ins(op, 0, 6, 0),
+          Wire.HALT);
     }
     Ledger.sentence("Part 1", "5 ADDI b + n");
     gives("ADDI", 9, Wire.li(4, 5), Wire.addi(0, 4, 4), Wire.HALT);

@@ -19,51 +19,30 @@ public final class Part2Formulas {
 
   /** Formulas of all kinds within two binders, no two of which are the same. */
   private static final byte[][] FORMULAS = {
-    Wire.TRUE,
-    Wire.and(Wire.TRUE, Wire.TRUE),
-    Wire.then(Wire.TRUE, Wire.TRUE),
-    Wire.all(Wire.TRUE),
-    Wire.all(2, Wire.TRUE),
-    Wire.less(Wire.var(0), Wire.var(1)),
-    Wire.less(Wire.var(1), Wire.var(0)),
-    Wire.atMost(Wire.var(0), Wire.var(1)),
-    Wire.equal(Wire.var(0), Wire.var(1)),
-    Wire.unequal(Wire.var(0), Wire.var(1)),
-    Wire.fits(Wire.var(0), Wire.var(1)),
-    Wire.equal(Wire.var(0), Wire.var(0)),
-    Wire.equal(num(2), num(2)),
-    Wire.equal(num(2), Wire.plus(num(1), num(1))),
-    Wire.equal(Wire.plus(num(1), num(1)), num(2)),
-    Wire.equal(num(2), num(3)),
-    Wire.equal(num(2), num(-2)),
-    Wire.equal(num(0), num(LEAST)),
-    Wire.equal(num(0), num(MOST)),
-    Wire.equal(Wire.var(0), Wire.plus(Wire.var(0), Wire.var(1))),
-    Wire.equal(Wire.var(0), Wire.plus(Wire.var(1), Wire.var(0))),
-    Wire.equal(Wire.var(0), Wire.minus(Wire.var(0), Wire.var(1))),
-    Wire.equal(Wire.var(0), Wire.product(Wire.var(0), Wire.var(1))),
-    Wire.equal(Wire.var(0), Wire.plus(Wire.var(0), num(0))),
-    Wire.equal(Wire.var(0), num(0)),
-    Wire.equal(Wire.var(0), num(1)),
-    Wire.and(Wire.TRUE, Wire.equal(num(2), num(2))),
-    Wire.and(Wire.equal(num(2), num(2)), Wire.TRUE),
-    Wire.then(Wire.TRUE, Wire.equal(num(2), num(2))),
-    Wire.all(Wire.less(Wire.var(0), Wire.var(1))),
-    Wire.all(Wire.less(Wire.var(1), Wire.var(0))),
-    Wire.all(Wire.less(Wire.var(0), Wire.var(2))),
-    Wire.all(Wire.less(Wire.var(1), Wire.var(2))),
-    Wire.all(2, Wire.less(Wire.var(0), Wire.var(1))),
-    Wire.all(2, Wire.less(Wire.var(1), Wire.var(0))),
-    Wire.all(2, Wire.less(Wire.var(0), Wire.var(0))),
-    Wire.all(2, Wire.less(Wire.var(1), Wire.var(1))),
-    Wire.all(2, Wire.less(Wire.var(2), Wire.var(3))),
-    Wire.all(Wire.then(Wire.equal(Wire.var(0), num(1)), Wire.TRUE)),
-    Wire.then(Wire.all(Wire.equal(Wire.var(0), num(1))), Wire.TRUE),
-  };
+    Wire.TRUE, Wire.and(Wire.TRUE, Wire.TRUE), Wire.then(Wire.TRUE, Wire.TRUE), Wire.all(Wire.TRUE),
+        Wire.all(2, Wire.TRUE), Wire.less(Wire.var(0), Wire.var(1)), Wire.less(Wire.var(1), Wire.var(0)),
+        Wire.atMost(Wire.var(0), Wire.var(1)), Wire.equal(Wire.var(0), Wire.var(1)), Wire.unequal(Wire.var(0),
+        Wire.var(1)), Wire.fits(Wire.var(0), Wire.var(1)), Wire.equal(Wire.var(0), Wire.var(0)),
+        Wire.equal(num(2), num(2)), Wire.equal(num(2), Wire.plus(num(1), num(1))),
+        Wire.equal(Wire.plus(num(1), num(1)), num(2)), Wire.equal(num(2), num(3)), Wire.equal(num(2),
+        num(-2)), Wire.equal(num(0), num(LEAST)), Wire.equal(num(0), num(MOST)), Wire.equal(Wire.var(0),
+        Wire.plus(Wire.var(0), Wire.var(1))), Wire.equal(Wire.var(0), Wire.plus(Wire.var(1), Wire.var(0))),
+        Wire.equal(Wire.var(0), Wire.minus(Wire.var(0), Wire.var(1))), Wire.equal(Wire.var(0),
+        Wire.product(Wire.var(0), Wire.var(1))), Wire.equal(Wire.var(0), Wire.plus(Wire.var(0), num(0))),
+        Wire.equal(Wire.var(0), num(0)), Wire.equal(Wire.var(0), num(1)), Wire.and(Wire.TRUE,
+        Wire.equal(num(2), num(2))), Wire.and(Wire.equal(num(2), num(2)), Wire.TRUE), Wire.then(Wire.TRUE,
+        Wire.equal(num(2), num(2))), Wire.all(Wire.less(Wire.var(0), Wire.var(1))),
+        Wire.all(Wire.less(Wire.var(1), Wire.var(0))), Wire.all(Wire.less(Wire.var(0), Wire.var(2))),
+        Wire.all(Wire.less(Wire.var(1), Wire.var(2))), Wire.all(2, Wire.less(Wire.var(0), Wire.var(1))),
+        Wire.all(2, Wire.less(Wire.var(1), Wire.var(0))), Wire.all(2, Wire.less(Wire.var(0), Wire.var(0))),
+        Wire.all(2, Wire.less(Wire.var(1), Wire.var(1))), Wire.all(2, Wire.less(Wire.var(2), Wire.var(3))),
+        Wire.all(Wire.then(Wire.equal(Wire.var(0), num(1)), Wire.TRUE)),
+        Wire.then(Wire.all(Wire.equal(Wire.var(0), num(1))), Wire.TRUE), };
 
   private static void sameness() {
-    Ledger.sentence("Part 2", "They are the same if they are put together alike, of the same numbers and"
-        + " variables, binders for binders; nothing is reckoned");
+    Ledger.sentence("Part 2",
+        "They are the same if they are put together alike, of the same numbers and variables, binders for"
+        + " binders; nothing is reckoned");
     for (int i = 0; i < FORMULAS.length; i++) {
       for (int j = 0; j < FORMULAS.length; j++) {
         compares("formula " + i + " and " + j, i == j, FORMULAS[i], FORMULAS[j]);

@@ -9,8 +9,8 @@ public final class Part3Obligation {
 
   /** The claim of MARK 1: it speaks of all registers. */
   private static byte[] ofAll(byte[]... t) {
-    return Wire.and(Wire.equal(t[0], t[1]), Wire.and(Wire.less(t[2], t[3]),
-        Wire.and(Wire.atMost(t[4], t[5]), Wire.unequal(t[6], t[7]))));
+    return Wire.and(Wire.equal(t[0], t[1]), Wire.and(Wire.less(t[2], t[3]), Wire.and(Wire.atMost(t[4], t[5]),
+        Wire.unequal(t[6], t[7]))));
   }
 
   private static byte[] claimOfAll() {
@@ -91,12 +91,11 @@ public final class Part3Obligation {
     Ledger.sentence("Part 3", "PART 0 is the PATH from place 0 with numbers 0 as registers");
     partIs(new CodeHarbour(), "zeros", Wire.join(Wire.code(1, Wire.mark(0), Wire.HALT), claimOfAll()),
         new byte[0], ofAll(zeros()));
-    partIs(new CodeHarbour(), "a path",
-        Wire.join(Wire.code(1, Wire.addi(5, 6, 9), Wire.mark(0), Wire.HALT), claimOfAll()),
-        new byte[0], ofAll(with(zeros(), 5, Wire.plus(ZERO, Wire.num(9)))));
+    partIs(new CodeHarbour(), "a path", Wire.join(Wire.code(1, Wire.addi(5, 6, 9), Wire.mark(0), Wire.HALT),
+        claimOfAll()), new byte[0], ofAll(with(zeros(), 5, Wire.plus(ZERO, Wire.num(9)))));
     Ledger.sentence("Part 3",
-        "ALL eight times, for registers 0 to 7, the outermost for 0: the claim of this MARK"
-        + " at them IF-THEN the PATH from the place behind it with them");
+        "ALL eight times, for registers 0 to 7, the outermost for 0: the claim of this MARK at them IF-THEN"
+        + " the PATH from the place behind it with them");
     byte[] opening = Wire.join(Wire.code(2, Wire.mark(0), Wire.HALT, Wire.mark(1), Wire.HALT), Wire.TRUE,
         claimOfAll());
     partIs(new CodeHarbour(), "the claim at variables", opening, Wire.join(32, Wire.PART_OF_TRUE),
@@ -120,8 +119,8 @@ public final class Part3Obligation {
     byte[] ahead = Wire.join(37);
     int[] outer = {3, 7, 5};
     for (int k = 0; k < 3; k++) {
-      partIs(new CodeHarbour(), "PART " + (k + 1), opening, ahead,
-          partOf(Wire.equal(Wire.var(outer[k]), Wire.var(outer[k] - 1)), Wire.TRUE));
+      partIs(new CodeHarbour(), "PART " + (k + 1), opening, ahead, partOf(Wire.equal(Wire.var(outer[k]),
+          Wire.var(outer[k] - 1)), Wire.TRUE));
       ahead = Wire.join(ahead, Wire.PART_OF_TRUE);
     }
     Ledger.loads("all of them", 0, -1, opening, ahead);
@@ -129,8 +128,8 @@ public final class Part3Obligation {
 
   private static void plainPaths() {
     Ledger.sentence("Part 3",
-        "LI, MOV, ADD, SUB, MUL, ADDI: the PATH from the next place, r[a] being the number n,"
-        + " r[b], r[b] + r[c], r[b] - r[c], r[b] * r[c], r[b] + the number n");
+        "LI, MOV, ADD, SUB, MUL, ADDI: the PATH from the next place, r[a] being the number n, r[b], r[b] +"
+        + " r[c], r[b] - r[c], r[b] * r[c], r[b] + the number n");
     byte[][] r = variables(0);
     pathOf("LI", Wire.li(3, -9), ofAll(with(r, 3, Wire.num(-9))));
     pathOf("LI of register 0", Wire.li(0, 7), ofAll(with(r, 0, Wire.num(7))));
@@ -148,8 +147,8 @@ public final class Part3Obligation {
     byte[][] r = variables(0);
     byte[][] further = variables(1);
     Ledger.sentence("Part 3",
-        "LD: (rlo <= r[b] + n AND r[b] + n < rhi) AND ALL of the PATH from the next place,"
-        + " r[a] being the variable");
+        "LD: (rlo <= r[b] + n AND r[b] + n < rhi) AND ALL of the PATH from the next place, r[a] being the"
+        + " variable");
     for (int a : new int[] {0, 3, 7}) {
       pathOf("LD " + a, Wire.ld(a, 3, 21), Wire.and(within(0, 256, Wire.plus(r[3], Wire.num(21))),
           Wire.all(ofAll(with(further, a, Wire.var(0))))));
@@ -166,8 +165,8 @@ public final class Part3Obligation {
         claimOfAll());
     byte[] inner = Wire.and(within(0, 256, Wire.plus(Wire.var(0), Wire.num(3))),
         Wire.all(ofAll(with(with(zeros(), 2, Wire.var(1)), 5, Wire.var(0)))));
-    partIs(new CodeHarbour(), "LD, LD", opening, new byte[0],
-        Wire.and(within(0, 256, Wire.plus(ZERO, Wire.num(1))), Wire.all(inner)));
+    partIs(new CodeHarbour(), "LD, LD", opening, new byte[0], Wire.and(within(0, 256, Wire.plus(ZERO,
+        Wire.num(1))), Wire.all(inner)));
   }
 
   private static void jumpPaths() {
@@ -176,15 +175,14 @@ public final class Part3Obligation {
     pathOf("JMP", Wire.jmp(2), ofAll(r));
     pathOf("JMP to another MARK", Wire.jmp(0), Wire.TRUE);
     Ledger.sentence("Part 3",
-        "JLT: (r[a] < r[b] IF-THEN that claim at r) AND (r[b] <= r[a] IF-THEN the PATH from"
-        + " the next place)");
+        "JLT: (r[a] < r[b] IF-THEN that claim at r) AND (r[b] <= r[a] IF-THEN the PATH from the next place)");
     pathOf("JLT", Wire.ins(9, 3, 6, 2), Wire.and(Wire.then(Wire.less(r[3], r[6]), ofAll(r)),
         Wire.then(Wire.atMost(r[6], r[3]), ofAll(r))));
     pathOf("JLT to another MARK", Wire.ins(9, 0, 7, 0), Wire.and(Wire.then(Wire.less(r[0], r[7]), Wire.TRUE),
         Wire.then(Wire.atMost(r[7], r[0]), ofAll(r))));
     Ledger.sentence("Part 3",
-        "JLE, JEQ, JNE likewise, with r[a] <= r[b] and r[b] < r[a]; r[a] = r[b] and r[a] !="
-        + " r[b]; r[a] != r[b] and r[a] = r[b]");
+        "JLE, JEQ, JNE likewise, with r[a] <= r[b] and r[b] < r[a]; r[a] = r[b] and r[a] != r[b]; r[a] !="
+        + " r[b] and r[a] = r[b]");
     pathOf("JLE", Wire.ins(10, 3, 6, 2), Wire.and(Wire.then(Wire.atMost(r[3], r[6]), ofAll(r)),
         Wire.then(Wire.less(r[6], r[3]), ofAll(r))));
     pathOf("JEQ", Wire.ins(11, 3, 6, 2), Wire.and(Wire.then(Wire.equal(r[3], r[6]), ofAll(r)),
@@ -252,15 +250,15 @@ public final class Part3Obligation {
           claimOfAll());
       byte[] part0 = last(r, op, a, b, n);
       CodeHarbour x = partIs(new CodeHarbour(), "path " + i, opening, new byte[0], part0);
-      Ledger.due("NODES of path " + i, x.told(1),
-          Wire.nodes(part0) + Wire.nodes(partOf(ofAll(variables(0)), Wire.TRUE)));
+      Ledger.due("NODES of path " + i, x.told(1), Wire.nodes(part0) + Wire.nodes(partOf(ofAll(variables(0)),
+          Wire.TRUE)));
     }
   }
 
   private static void nodes() {
     Ledger.sentence("Part 3",
-        "NODES: each number, variable, operation, relation, TRUE, AND, IF-THEN, ALL is one,"
-        + " wherever it stands");
+        "NODES: each number, variable, operation, relation, TRUE, AND, IF-THEN, ALL is one, wherever it"
+        + " stands");
     CodeHarbour x = Ledger.loads("HALT", 0, -1, Wire.code(0, Wire.HALT), 32);
     Ledger.due("TRUE is 1", x.told(1), 1);
     // A term of a register counts at every place of that register in a claim.
@@ -279,8 +277,7 @@ public final class Part3Obligation {
     x = Ledger.loads("behind a TRAP", 0, -1, Wire.code(0, Wire.trap(1), Wire.st(0, 0, -1), Wire.HALT), 32);
     Ledger.due("NODES", x.told(1), 1);
     x = Ledger.loads("behind a JMP", 0, -1, Wire.code(1, Wire.mark(0), Wire.jmp(0), Wire.ld(0, 0, 999),
-        Wire.HALT),
-        Wire.TRUE, 32, Wire.PART_OF_TRUE);
+        Wire.HALT), Wire.TRUE, 32, Wire.PART_OF_TRUE);
     Ledger.due("NODES", x.told(1), 12);
     x = Ledger.loads("claims of no MARK", 0, -1, Wire.code(2, Wire.HALT), claim, claim, 32);
     Ledger.due("NODES", x.told(1), 1);

@@ -155,8 +155,8 @@ public final class Part4Rules {
     if (well) {
       Ledger.shows(tag + " of " + w + " in a PUT", whole(f(sides[2] + " < w"), given), d);
     } else {
-      Ledger.fails(tag + " of " + w + " in a PUT", 8, MANY + many + ahead.length,
-          whole(f(sides[2] + " < w"), given), d);
+      Ledger.fails(tag + " of " + w + " in a PUT", 8, MANY + many + ahead.length, whole(f(sides[2] + " < w"),
+          given), d);
     }
   }
 
@@ -291,8 +291,8 @@ public final class Part4Rules {
 
   private static void putting() {
     Ledger.sentence("Part 4",
-        "38 PUT F x y p q: F is a formula within one more binder, a variable; W is F with y for"
-        + " it; p shows x = y, q F with x for it");
+        "38 PUT F x y p q: F is a formula within one more binder, a variable; W is F with y for it; p shows"
+        + " x = y, q F with x for it");
     // Within PUT's own binder and two hypotheses: z is called by 3 + 1 + 2.
     byte[] below = Wire.less(Wire.var(0), Wire.var(6));
     put("as it must be", 0, 0, f("y < z"), below, "x", "y", "x = y", f("x < z"));
@@ -317,10 +317,9 @@ public final class Part4Rules {
     put("within ALL, another W", 8, -1, overX, allBelow, "x", "y", "x = y", overX);
     put("within ALL, another q", 8, 2, overY, allBelow, "x", "y", "x = y", overY);
     put("of no relation", 0, 0, Wire.TRUE, Wire.TRUE, "x", "y", "x = y", Wire.TRUE);
-    put("F is W with its places", 0, 0, Wire.then(f("y = z"), f("z = y")),
-        Wire.then(Wire.equal(Wire.var(0), Wire.var(6)), Wire.equal(Wire.var(6), Wire.var(0))), "x", "y",
-        "x = y",
-        Wire.then(f("x = z"), f("z = x")));
+    put("F is W with its places", 0, 0, Wire.then(f("y = z"), f("z = y")), Wire.then(Wire.equal(Wire.var(0),
+        Wire.var(6)), Wire.equal(Wire.var(6), Wire.var(0))), "x", "y", "x = y", Wire.then(f("x = z"),
+        f("z = x")));
   }
 
   private static final String[] NO_TERMS = {};
@@ -363,42 +362,36 @@ public final class Part4Rules {
 
   private static void shiftRules() {
     Ledger.sentence("Part 4",
-        "45 SHIFT t p q r s: W is x + k <= y + k; p shows x <= y, q y <= t, r x FITS k, s t"
-        + " FITS k");
+        "45 SHIFT t p q r s: W is x + k <= y + k; p shows x <= y, q y <= t, r x FITS k, s t FITS k");
     rule(45, "x + k <= y + k", t("t"), "x <= y", "y <= t", "x FITS k", "t FITS k");
     rule(45, "x * 2 + (k - 1) <= y - 3 + (k - 1)", t("t * t"), "x * 2 <= y - 3", "y - 3 <= t * t",
         "x * 2 FITS (k - 1)", "t * t FITS (k - 1)");
     refuses(45, t("t"), "x + k <= y + t", "x + k < y + k", "x + k = y + k", "x + k != y + k",
-        "x + k FITS y + k",
-        "k + x <= k + y", "x - k <= y - k", "x * k <= y * k", "x + k <= y - k", "x - k <= y + k",
-        "x + k <= y",
-        "x <= y + k", "x + 1 <= y + (0 + 1)", "x + 1 <= y + 2", "x + k <= k + y", "x <= y");
+        "x + k FITS y + k", "k + x <= k + y", "x - k <= y - k", "x * k <= y * k", "x + k <= y - k",
+        "x - k <= y + k", "x + k <= y", "x <= y + k", "x + 1 <= y + (0 + 1)", "x + 1 <= y + 2",
+        "x + k <= k + y", "x <= y");
     Ledger.sentence("Part 4",
-        "46 SHIFT t p q r s: W is y + k < x + k; p shows t <= y, q y < x, r t FITS k, s x FITS"
-        + " k");
+        "46 SHIFT t p q r s: W is y + k < x + k; p shows t <= y, q y < x, r t FITS k, s x FITS k");
     rule(46, "y + k < x + k", t("t"), "t <= y", "y < x", "t FITS k", "x FITS k");
     rule(46, "y - 1 + k * 2 < x * x + k * 2", t("t - 5"), "t - 5 <= y - 1", "y - 1 < x * x",
         "t - 5 FITS (k * 2)", "x * x FITS (k * 2)");
     refuses(46, t("t"), "y + k < x + t", "y + k <= x + k", "y + k = x + k", "y + k != x + k",
-        "y + k FITS x + k",
-        "k + y < k + x", "y - k < x - k", "y * k < x * k", "y + k < x - k", "y - k < x + k", "y + k < x",
-        "y < x + k", "y + 1 < x + (0 + 1)", "y + 1 < x + 2", "y + k < k + x", "y < x");
+        "y + k FITS x + k", "k + y < k + x", "y - k < x - k", "y * k < x * k", "y + k < x - k",
+        "y - k < x + k", "y + k < x", "y < x + k", "y + 1 < x + (0 + 1)", "y + 1 < x + 2", "y + k < k + x",
+        "y < x");
     refusesFormulas(45, terms(0, "t"), Wire.TRUE, AN_AND);
     refusesFormulas(46, terms(0, "t"), Wire.TRUE, AN_IF);
     Ledger.sentence("Part 4",
-        "56 BETWEEN t u p q r s: W is y FITS k; p shows t <= y, q y <= u, r t FITS k, s u FITS"
-        + " k");
+        "56 BETWEEN t u p q r s: W is y FITS k; p shows t <= y, q y <= u, r t FITS k, s u FITS k");
     rule(56, "y FITS k", t("t", "u"), "t <= y", "y <= u", "t FITS k", "u FITS k");
     rule(56, "y * 2 FITS k - x", t("t + 1", "u - 1"), "t + 1 <= y * 2", "y * 2 <= u - 1", "t + 1 FITS k - x",
         "u - 1 FITS k - x");
     // Within a SHIFT: x FITS k is of a formula, t FITS k of a term and a formula.
     List<byte[]> given = formulas(List.of("x <= y", "y <= t", "z <= x", "x <= u", "z FITS k", "u FITS k",
-        "z <= t",
-        "t <= u"));
+        "z <= t", "t <= u"));
     Ledger.shows("56 in 45", whole(f("x + k <= y + k"), given), OPEN, Wire.times(8, 34), 45, terms(8, "t"),
-        64, 7, 64,
-        6, 56, terms(8, "z", "u"), 64, 5, 64, 4, 64, 3, 64, 2, 56, terms(8, "z", "u"), 64, 1, 64, 0, 64, 3,
-        64, 2);
+        64, 7, 64, 6, 56, terms(8, "z", "u"), 64, 5, 64, 4, 64, 3, 64, 2, 56, terms(8, "z", "u"), 64, 1, 64,
+        0, 64, 3, 64, 2);
     refuses(56, t("t", "u"), "y < k", "y <= k", "y = k", "y != k");
     refusesFormulas(56, terms(0, "t", "u"), Wire.TRUE, AN_ALL);
   }
@@ -409,21 +402,19 @@ public final class Part4Rules {
     rule(47, "(1 + 2) + 3 = 1 + (2 + 3)", NO_TERMS);
     rule(47, "(x + x) + x = x + (x + x)", NO_TERMS);
     refuses(47, NO_TERMS, "x + (y + z) = (x + y) + z", "(x + y) + z = x + (z + y)",
-        "(x + y) + z = y + (x + z)",
-        "(x + y) + z = (x + y) + z", "(x + y) + z = x + (y + k)", "(x + y) + z = x + (k + z)",
-        "(x + y) + z = k + (y + z)", "(x - y) + z = x - (y + z)", "(x - y) + z = x + (y + z)",
-        "(x + y) - z = x + (y + z)", "(x + y) + z = x + (y - z)", "(x + y) + z = x * (y + z)",
-        "(x + y) + z <= x + (y + z)", "(x + y) + z != x + (y + z)", "(x * y) * z = x * (y * z)",
-        "x + y = x + y",
-        "(x + y) + z < x + (y + z)", "(x + y) + z FITS x + (y + z)");
+        "(x + y) + z = y + (x + z)", "(x + y) + z = (x + y) + z", "(x + y) + z = x + (y + k)",
+        "(x + y) + z = x + (k + z)", "(x + y) + z = k + (y + z)", "(x - y) + z = x - (y + z)",
+        "(x - y) + z = x + (y + z)", "(x + y) - z = x + (y + z)", "(x + y) + z = x + (y - z)",
+        "(x + y) + z = x * (y + z)", "(x + y) + z <= x + (y + z)", "(x + y) + z != x + (y + z)",
+        "(x * y) * z = x * (y * z)", "x + y = x + y", "(x + y) + z < x + (y + z)",
+        "(x + y) + z FITS x + (y + z)");
     Ledger.sentence("Part 4", "48: W is x + y = y + x");
     rule(48, "x + y = y + x", NO_TERMS);
     rule(48, "x + x = x + x", NO_TERMS);
     rule(48, "x * y + (1 - z) = (1 - z) + (x * y)", NO_TERMS);
     refuses(48, NO_TERMS, "x + y = x + y", "x + y = y + z", "x + y = z + x", "x - y = y - x", "x * y = y * x",
         "x + y = y - x", "x - y = y + x", "x + y != y + x", "x + y <= y + x", "x + y < y + x",
-        "x + y FITS y + x",
-        "x = x");
+        "x + y FITS y + x", "x = x");
     Ledger.sentence("Part 4", "49: W is (x - y) + y = x");
     rule(49, "(x - y) + y = x", NO_TERMS);
     rule(49, "(x - x) + x = x", NO_TERMS);
@@ -479,11 +470,9 @@ public final class Part4Rules {
     Ledger.shows("CASES of a left side", whole(f("x <= w"), given), OPEN, 34, 34, 34, 40, terms(3, "y"), 53,
         terms(3, "t", "u"), 64, 3, 64, 3, 64, 1);
     Ledger.shows("CASES of a right side", whole(f("w <= y"), given), OPEN, 34, 34, 34, 40, terms(3, "x"), 64,
-        0, 53,
-        terms(3, "t", "u"), 64, 3, 64, 3);
+        0, 53, terms(3, "t", "u"), 64, 3, 64, 3);
     Ledger.shows("CASES of a formula", Wire.all(MANY, Wire.then(AN_AND, AN_AND)), OPEN, 34, 53, terms(1, "t",
-        "u"),
-        64, 1, 64, 1);
+        "u"), 64, 1, 64, 1);
   }
 
   private static void telling() {
@@ -513,22 +502,17 @@ public final class Part4Rules {
     byte[] then = whole(Y_IS_Z, List.of(AN_IF, X_IS_Y));
     Ledger.shows("THEN", then, OPEN, 34, 34, 67, 64, 1, 64, 0);
     Ledger.fails("q shows another one", 8, MANY + 5, whole(Y_IS_Z, List.of(AN_IF, f("y = x"))), OPEN, 34, 34,
-        67,
-        64, 1, 64, 0);
+        67, 64, 1, 64, 0);
     Ledger.fails("it does not tell A", 8, MANY + 2, whole(X_IS_Y, List.of(AN_IF, X_IS_Y)), OPEN, 34, 34, 67,
-        64,
-        1, 64, 0);
-    Ledger.fails("it does not tell all of it", 8, MANY + 2, whole(AN_IF, List.of(AN_IF, X_IS_Y)), OPEN, 34,
-        34, 67,
         64, 1, 64, 0);
+    Ledger.fails("it does not tell all of it", 8, MANY + 2, whole(AN_IF, List.of(AN_IF, X_IS_Y)), OPEN, 34,
+        34, 67, 64, 1, 64, 0);
     for (byte[] a : new byte[][] {Wire.TRUE, AN_AND, AN_ALL, X_IS_Y}) {
       Ledger.fails("THEN of no IF-THEN", 8, MANY + 1, Wire.all(MANY, Wire.then(a, Y_IS_Z)), OPEN, 34, 67, 64,
-          0,
-          99);
+          0, 99);
     }
     Ledger.shows("q is shown by any rule", whole(Y_IS_Z, List.of(Wire.then(f("1 < 2"), Y_IS_Z))), OPEN, 34,
-        67, 64,
-        0, 36);
+        67, 64, 0, 36);
   }
 
   private static void forTerms() {
@@ -537,24 +521,19 @@ public final class Part4Rules {
     byte[] read = terms(1, "t - 2");
     Ledger.shows("FOR", whole(f("t - 2 < t - 2 + x"), List.of(every)), OPEN, 34, 68, read, 64, 0);
     Ledger.fails("another term", 8, MANY + 1, whole(f("t - 2 < t - 1 + x"), List.of(every)), OPEN, 34, 68,
-        read,
-        64, 0);
+        read, 64, 0);
     Ledger.fails("another letter", 8, MANY + 1, whole(f("t - 2 < t - 2 + y"), List.of(every)), OPEN, 34, 68,
-        read,
-        64, 0);
+        read, 64, 0);
     for (byte[] a : new byte[][] {Wire.TRUE, AN_AND, AN_IF, X_IS_Y}) {
       Ledger.fails("FOR of no ALL", 8, MANY + 1, Wire.all(MANY, Wire.then(a, Y_IS_Z)), OPEN, 34, 68, terms(1,
-          "t"),
-          64, 0);
+          "t"), 64, 0);
     }
     // ALL a ALL b (a < b): the outermost is the one that is put first.
     byte[] two = Wire.all(2, Wire.less(Wire.var(1), Wire.var(0)));
     Ledger.shows("two FORs", whole(f("x < y"), List.of(two)), OPEN, 34, 68, terms(1, "y"), 68, terms(1, "x"),
-        64,
-        0);
+        64, 0);
     Ledger.fails("in their order", 8, MANY + 1, whole(f("x < y"), List.of(two)), OPEN, 34, 68, terms(1, "x"),
-        68,
-        terms(1, "y"), 64, 0);
+        68, terms(1, "y"), 64, 0);
     byte[] overX = Wire.all(Wire.less(Wire.var(6), Wire.var(0)));
     Ledger.shows("ALL within ALL", whole(overX, List.of(two)), OPEN, 34, 68, terms(1, "x"), 64, 0);
     // ALL v (v < x IF-THEN v = y), for a term: what is to be shown, and what is told.
@@ -563,8 +542,7 @@ public final class Part4Rules {
     byte[] ofTerm = whole(f("t + 1 = y"), List.of(law, f("t + 1 < x")));
     Ledger.shows("THEN of FOR", ofTerm, OPEN, 34, 34, 67, 68, terms(2, "t + 1"), 64, 1, 64, 0);
     Ledger.fails("THEN of FOR, another term", 8, MANY + 2 + 2 + terms(2, "t + 2").length + 2, ofTerm, OPEN,
-        34, 34, 67, 68,
-        terms(2, "t + 2"), 64, 1, 64, 0);
+        34, 34, 67, 68, terms(2, "t + 2"), 64, 1, 64, 0);
     // The term is not caught by the ALL that it comes to stand in.
     byte[] caught = Wire.all(Wire.less(Wire.var(0), Wire.var(0)));
     Ledger.fails("nothing is caught", 8, MANY + 1, whole(caught, List.of(two)), OPEN, 34, 68, terms(1, "u"),
@@ -573,8 +551,8 @@ public final class Part4Rules {
 
   private static void binders() {
     Ledger.sentence("Part 4",
-        "HYPOTHESES and variables are called by how many binders stand between, of either sort"
-        + " (0: the innermost)");
+        "HYPOTHESES and variables are called by how many binders stand between, of either sort (0: the"
+        + " innermost)");
     // ALL a (a = a IF-THEN ALL b (b = b IF-THEN W)): behind 35 34 35 34 a is 3 and b is 1;
     // 2 and 0 are hypotheses.
     byte[] ofOne = Wire.equal(Wire.var(0), Wire.var(0));
@@ -603,20 +581,17 @@ public final class Part4Rules {
     Ledger.fails("behind CASES the variable is 1", 7, 1 + 1 + 4 + 1, w, 35, 53, Wire.var(0), Wire.var(0), 52,
         Wire.var(0), 99);
     Ledger.fails("and 1 in its second, too", 7, 1 + 1 + 4 + 1 + 1, w, 35, 53, Wire.var(0), Wire.var(0), 37,
-        52,
-        Wire.var(0), 99);
+        52, Wire.var(0), 99);
     Ledger.shows("so it is", w, 35, 53, Wire.var(0), Wire.var(0), 52, Wire.var(1), 64, 0, 37);
     Ledger.fails("behind CASES its hypothesis is gone", 7, 1 + 1 + 1 + 4 + 2, Wire.and(w, Wire.TRUE), 33, 35,
         53, Wire.var(0), Wire.var(0), 37, 37, 64, 0);
     Ledger.fails("behind IF its hypothesis is gone", 7, 3, Wire.and(Wire.then(Wire.TRUE, Wire.TRUE),
-        Wire.TRUE), 33,
-        34, 32, 64, 0);
+        Wire.TRUE), 33, 34, 32, 64, 0);
     Ledger.fails("behind ANY its variable is gone", 7, 4, Wire.and(w, Wire.TRUE), 33, 35, 37, 52, Wire.var(0),
         99);
     Ledger.fails("a PART has no binder of another one", 7, 1, Wire.then(Wire.TRUE, Wire.TRUE), 34, 64, 1);
     Ledger.loads("PART 1 begins with none", 7, Wire.showingAt(w) + 2, Wire.upTo(Wire.showing(w, 35, 37, 64,
-        0),
-        Wire.showingAt(w) + 4));
+        0), Wire.showingAt(w) + 4));
   }
 
   public static void main(String[] args) {

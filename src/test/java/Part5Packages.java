@@ -11,9 +11,9 @@ public final class Part5Packages {
     byte[] claim1 = Wire.all(Wire.then(Wire.less(Wire.var(0), Wire.reg(1)), Wire.less(Wire.var(0),
         Wire.reg(1))));
     // What no MARK has is read, too.
-    byte[] claim2 = Wire.and(Wire.TRUE, Wire.then(Wire.equal(Wire.reg(7), Wire.num(-1)), Wire.all(Wire.and(
-        Wire.unequal(Wire.plus(Wire.var(0), Wire.num(1)), Wire.minus(Wire.reg(0), Wire.num(2))),
-        Wire.fits(Wire.product(Wire.num(3), Wire.reg(4)), Wire.var(0))))));
+    byte[] claim2 = Wire.and(Wire.TRUE, Wire.then(Wire.equal(Wire.reg(7), Wire.num(-1)),
+        Wire.all(Wire.and(Wire.unequal(Wire.plus(Wire.var(0), Wire.num(1)), Wire.minus(Wire.reg(0),
+        Wire.num(2))), Wire.fits(Wire.product(Wire.num(3), Wire.reg(4)), Wire.var(0))))));
     byte[] opening = Wire.join(Wire.code(3, Wire.li(1, 5), Wire.mark(0), Wire.ld(3, 1, 2), Wire.jmp(4),
         Wire.mark(1), Wire.trap(9)), claim0, claim1, claim2);
     byte[] low = Wire.join(65, 64, 0);
@@ -60,8 +60,7 @@ public final class Part5Packages {
       Ledger.loads("first byte " + first, 2, 0, first, 0, 1, 0, 0, Wire.HALT, 32);
     }
     Ledger.sentence("Part 5",
-        "how many instructions there are (2 bytes, the highest first), 1 to 1000; 2 HEAD:"
-        + " instructions (1)");
+        "how many instructions there are (2 bytes, the highest first), 1 to 1000; 2 HEAD: instructions (1)");
     Ledger.loads("0", 2, 1, 80, 0, 0);
     Ledger.loads("0, and more", 2, 1, 80, 0, 0, 0, 0, 32);
     Ledger.loads("1", 0, -1, Wire.code(0, Wire.HALT), 32);
@@ -80,8 +79,7 @@ public final class Part5Packages {
     Ledger.loads("0", 0, -1, Wire.head(1, 0), Wire.HALT, 32);
     Ledger.loads("1000", 0, -1, Wire.head(1, 1000), Wire.HALT, Wire.times(1000, 16), 32);
     Ledger.loads("the last one of 1000 is wanted", 4, 12 + 999, Wire.head(1, 1000), Wire.HALT, Wire.times(999,
-        16),
-        32);
+        16), 32);
     Ledger.loads("1001", 2, 3, Wire.head(1, 1001));
     Ledger.loads("1001, and more", 2, 3, Wire.head(1, 1001), Wire.HALT, Wire.times(1001, 16), 32);
     Ledger.loads("65535", 2, 3, 80, 0, 1, 255, 255);
@@ -103,8 +101,7 @@ public final class Part5Packages {
 
   /** For each op what is named with it. */
   private static final String[] NAMED = {"an", "ab", "abc", "abc", "abc", "abn", "abn", "abn", "n", "abn",
-      "abn",
-    "abn", "abn", "", "n", "n"};
+      "abn", "abn", "abn", "", "n", "n"};
 
   /** An n with which the instruction is well, where there is a choice. */
   private static int someN(int op) {
@@ -128,8 +125,7 @@ public final class Part5Packages {
         boolean free = op == 0 || op == 5 || op == 6 || op == 7;
         boolean register = op >= 2 && op <= 4;
         instruction("op " + op + ", n " + n,
-            free || register && n >= 0 && n <= 7 || op == 14 && n >= 1 && n <= 99,
-            Wire.ins(op, 0, 0, n));
+            free || register && n >= 0 && n <= 7 || op == 14 && n >= 1 && n <= 99, Wire.ins(op, 0, 0, n));
       }
     }
     Ledger.sentence("Part 5", "3 CODE: n of TRAP 1 to 99");
@@ -147,22 +143,20 @@ public final class Part5Packages {
       byte[][] code = {Wire.li(0, 1), Wire.li(0, 2), Wire.li(0, 3), Wire.HALT};
       code[at] = Wire.ins(16, 0, 0, 0);
       Ledger.loads("instruction " + at, 3, 5 + 7 * at, Wire.upTo(Wire.code(0, code), 5 + 7 * at + 7));
-      Ledger.loads("cut at instruction " + at, 1, 5 + 7 * at + 6, Wire.upTo(Wire.code(0, code), 5 + 7 * at
-          + 6));
+      Ledger.loads("cut at instruction " + at, 1, 5 + 7 * at + 6, Wire.upTo(Wire.code(0, code),
+          5 + 7 * at + 6));
     }
     Ledger.loads("the first one of two", 3, 5, Wire.code(0, Wire.li(8, 0), Wire.li(9, 0)));
   }
 
   private static void jumps() {
     Ledger.sentence("Part 5",
-        "When all instructions are there, 3 for each in order: n of a jump is the place of a"
-        + " MARK");
+        "When all instructions are there, 3 for each in order: n of a jump is the place of a MARK");
     for (int op = 8; op <= 12; op++) {
       for (int n = -1; n <= 4; n++) {
         boolean well = n == 1 || n == 3;
         byte[] opening = Wire.join(Wire.code(1, Wire.ins(op, 0, 0, n), Wire.mark(0), Wire.li(0, 0),
-            Wire.mark(0),
-            Wire.HALT), 16);
+            Wire.mark(0), Wire.HALT), 16);
         Ledger.loads("op " + op + " to " + n, well ? 7 : 3, well ? opening.length : 5, opening, 99);
       }
     }
@@ -227,8 +221,7 @@ public final class Part5Packages {
       for (int i = 0; i < 5; i++) {
         byte[] claim = Wire.all(binders, Wire.equal(Wire.var(i), Wire.var(i)));
         Ledger.loads(i + " within " + binders, i < binders ? 0 : 4, i < binders ? -1 : CLAIM + binders + 1,
-            MARKED,
-            claim, Wire.times(binders, 35), 37, Wire.PART_OF_TRUE);
+            MARKED, claim, Wire.times(binders, 35), 37, Wire.PART_OF_TRUE);
       }
     }
     Ledger.loads("255 within one", 4, CLAIM + 2, MARKED, Wire.all(Wire.equal(Wire.var(255), ZERO)));
@@ -256,11 +249,9 @@ public final class Part5Packages {
     Ledger.loads("40 with terms", 0, -1, MARKED, 22, terms, terms, 37, Wire.PART_OF_TRUE);
     Ledger.loads("41 with terms", 5, CLAIM + 40, MARKED, 22, 2, terms);
     Ledger.loads("40 with terms on the right", 8, CLAIM + 6 + 38 * 6 + 5, MARKED, 22, ZERO, Wire.times(38, 4,
-        ZERO),
-        ZERO, 37);
+        ZERO), ZERO, 37);
     Ledger.loads("41 with terms on the right", 5, CLAIM + 6 + 38 * 6 + 1, MARKED, 22, ZERO, Wire.times(39, 4,
-        ZERO),
-        ZERO);
+        ZERO), ZERO);
     Ledger.loads("a register is a tag, too", 5, CLAIM + 40, MARKED, Wire.times(39, 19), 22, 6, 0, 6, 0);
     Ledger.loads("and so is a variable", 5, CLAIM + 40, MARKED, Wire.times(39, 19), 22, 5, 0, 5, 0);
     Ledger.loads("they are counted anew for each claim", 0, -1, Wire.code(2, Wire.mark(0), Wire.HALT),
@@ -282,13 +273,11 @@ public final class Part5Packages {
     Ledger.fails("a second term of 40", 7, 1 + 5 + forty.length, Wire.TRUE, 53, ZERO, forty, 99);
     Ledger.fails("a second term of 41", 5, 1 + 5 + 40, Wire.TRUE, 53, ZERO, 3, forty, ZERO, 99);
     Ledger.fails("a formula of 40", 7, 1 + 40 + 10 + 1, Wire.all(39, Wire.TRUE), 38, Wire.times(39, 19), 16,
-        ZERO,
-        ZERO, 37, 99);
+        ZERO, ZERO, 37, 99);
     Ledger.fails("a formula of 41", 5, 1 + 40, Wire.all(39, Wire.TRUE), 38, Wire.times(40, 19), 16, ZERO,
         ZERO);
     Ledger.fails("what is within a derivation is not deeper", 8, 2 + forty.length, Wire.then(Wire.TRUE,
-        Wire.TRUE),
-        34, 52, forty, 36);
+        Wire.TRUE), 34, 52, forty, 36);
     Ledger.fails("no term at 41 is 5", 5, 1 + 40, Wire.TRUE, 52, Wire.times(40, 3), 99);
     Ledger.fails("no term at 40 is 7", 7, 1 + 39, Wire.TRUE, 52, Wire.times(39, 3), 99);
     Ledger.fails("no formula at 41 is 5", 5, 1 + 40, Wire.TRUE, 38, Wire.times(40, 19), 99);
@@ -334,19 +323,15 @@ public final class Part5Packages {
       Ledger.loads("201 by op " + op, 6, 0, Wire.head(17, 0), sum199, Wire.ins(op, 6, 5, 0), Wire.HALT, 32);
     }
     Ledger.loads("it is never used", 6, 0, Wire.head(102, 0), Wire.times(100, Wire.addi(3, 3, 1)), Wire.li(3,
-        0),
-        Wire.HALT, 32);
+        0), Wire.HALT, 32);
     Ledger.loads("LI makes it small again", 0, -1, Wire.head(192, 0), Wire.times(95, Wire.addi(3, 3, 1)),
         Wire.li(3, 0), Wire.times(95, Wire.addi(3, 3, 1)), Wire.HALT, 32);
     Ledger.loads("a PATH of another PART begins anew", 0, -1, Wire.head(196, 1), Wire.times(97, Wire.addi(3,
-        3, 1)),
-        Wire.mark(0), Wire.times(97, Wire.addi(3, 3, 1)), Wire.HALT, 16, 32, Wire.PART_OF_TRUE);
+        3, 1)), Wire.mark(0), Wire.times(97, Wire.addi(3, 3, 1)), Wire.HALT, 16, 32, Wire.PART_OF_TRUE);
     Ledger.loads("in a PART of a MARK", 6, 0, Wire.head(102, 1), Wire.mark(0), Wire.times(100, Wire.addi(3, 3,
-        1)),
-        Wire.HALT, 16, 32, Wire.PART_OF_TRUE);
+        1)), Wire.HALT, 16, 32, Wire.PART_OF_TRUE);
     Ledger.loads("where no PATH comes to", 0, -1, Wire.head(122, 0), Wire.HALT, Wire.times(120, Wire.addi(3,
-        3, 1)),
-        Wire.HALT, 32);
+        3, 1)), Wire.HALT, 32);
     Ledger.loads("what is read is a variable", 0, -1, Wire.head(191, 0), Wire.times(94, Wire.addi(3, 3, 1)),
         Wire.ld(3, 0, 0), Wire.times(95, Wire.addi(3, 3, 1)), Wire.HALT, 33, 33, 36, 36, 35, 32);
   }
@@ -367,8 +352,7 @@ public final class Part5Packages {
   /** PART 0: s. PART 1: 8 ALL, IF-THEN, s; j times JEQ 0 0: AND, 2 IF-THEN, 2 of 3, s; TRUE. */
   private static byte[] filling(int jumps, int size) {
     return Wire.join(Wire.head(jumps + 2, 1), Wire.mark(0), Wire.times(jumps, Wire.ins(11, 0, 0, 0)),
-        Wire.HALT,
-        wide(size));
+        Wire.HALT, wide(size));
   }
 
   private static void obligationRoom() {
@@ -450,8 +434,7 @@ public final class Part5Packages {
     Ledger.fails("none at all", 7, 0, Wire.TRUE, 64, 0);
     // In the formula of a PUT its own binder is 0, and those of an ALL in it come ahead of it.
     Ledger.fails("PUT's binder", 7, 2 + 1 + 5 + 2, w, 35, 34, 38, Wire.equal(Wire.var(0), Wire.var(2)),
-        Wire.var(1),
-        Wire.var(0));
+        Wire.var(1), Wire.var(0));
     Ledger.fails("a hypothesis in its formula", 7, 2 + 2, w, 35, 34, 38, Wire.equal(Wire.var(1), ZERO), ZERO,
         ZERO);
     Ledger.fails("none in its formula", 7, 2 + 2, w, 35, 34, 38, Wire.equal(Wire.var(3), ZERO), ZERO, ZERO);
@@ -480,8 +463,7 @@ public final class Part5Packages {
       Ledger.fails(tag + " of TRUE", 8, 1, none, 34, tag, read, 64, 0, 99);
       Ledger.fails(tag + ", its first derivation goes first", 7, 2 + read.length, none, 34, tag, read, 64, 9);
       Ledger.loads(tag + ", its CUT goes first", 1, CLAIM + none.length + 3 + read.length, MARKED, none, 34,
-          tag, read,
-          64);
+          tag, read, 64);
       Ledger.fails(tag + " of one that tells, further in", 8, 2, none, 34, 65, tag, read, 64, 0, 99);
     }
     Ledger.fails("THEN's second one comes behind it", 8, 1, none, 34, 67, 64, 0, 64, 9);
@@ -492,8 +474,7 @@ public final class Part5Packages {
     Ledger.fails("66", 8, 1, Wire.then(Wire.and(Wire.TRUE, one), Wire.TRUE), 34, 66, 64, 0);
     Ledger.fails("67", 8, 1, Wire.then(Wire.then(Wire.TRUE, one), Wire.TRUE), 34, 67, 64, 0, 32);
     Ledger.fails("67, its second one goes first", 8, 4, Wire.then(Wire.then(Wire.TRUE, one), Wire.TRUE), 34,
-        67, 64,
-        0, 36);
+        67, 64, 0, 36);
     Ledger.fails("68", 8, 1, Wire.then(Wire.all(one), Wire.TRUE), 34, 68, ZERO, 64, 0);
     Ledger.fails("what tells within another one may be anything", 8, 1, Wire.then(Wire.and(Wire.and(one, one),
         Wire.TRUE), Wire.TRUE), 34, 65, 65, 64, 0);
@@ -509,9 +490,8 @@ public final class Part5Packages {
     // An object that has seen faults of all kinds takes a whole package as a new one does.
     CodeHarbour y = new CodeHarbour();
     byte[][] faulty = {{}, {81}, Wire.code(0, Wire.li(8, 0)), Wire.join(code, 99), Wire.join(code,
-        Wire.times(41, 19)),
-      Wire.join(Wire.head(102, 0), Wire.times(101, Wire.addi(3, 3, 1)), Wire.HALT), Wire.join(code, 16, 99),
-      Wire.join(code, 16, 36), Wire.join(code, 16, 32, Wire.PART_OF_TRUE, 7)};
+        Wire.times(41, 19)), Wire.join(Wire.head(102, 0), Wire.times(101, Wire.addi(3, 3, 1)), Wire.HALT),
+        Wire.join(code, 16, 99), Wire.join(code, 16, 36), Wire.join(code, 16, 32, Wire.PART_OF_TRUE, 7)};
     int[] places = {0, 0, 5, CLAIM, CLAIM + 40, 0, CLAIM + 1, CLAIM + 1, CLAIM + 12};
     for (int i = 0; i < faulty.length; i++) {
       Ledger.loads(y, "fault " + (i + 1), i + 1, places[i], faulty[i]);

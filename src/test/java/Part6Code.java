@@ -85,9 +85,8 @@ public final class Part6Code {
 
   private static void accesses() {
     Ledger.sentence("Part 6",
-        "name [ e ], the arr from cell c on, of m: E(e, k), LI k+1 0, JLT k k+1 T, LI k+1 m, JLE k+1"
-        + " k T, LD k k c; name [ x ] = e: MARK, E(x, 0), LI 1 0, JLT 0 1 T, LI 1 m, JLE 1 0 T, E(e, 1),"
-        + " ST 1 0 c");
+        "name [ e ], the arr from cell c on, of m: E(e, k), LI k+1 0, JLT k k+1 T, LI k+1 m, JLE k+1 k T, LD"
+        + " k k c; name [ x ] = e: MARK, E(x, 0), LI 1 0, JLT 0 1 T, LI 1 m, JLE 1 0 T, E(e, 1), ST 1 0 c");
     reads(0, "0", 1, 1);
     reads(1, "1", 1, 1);
     reads(3, "3", 1, 1);
@@ -119,15 +118,16 @@ public final class Part6Code {
     for (int wlo : new int[] {0, 1, 10, 248}) {
       CodeHarbour x = new CodeHarbour();
       x.policy(0, 256, wlo, wlo + 8);
-      Ledger.source(x, "var a; arr b[3]; var c; arr d[2]; var e; a = 1; b[0] = 2; b[1] = 3; b[2] = 4; c ="
-          + " 5; d[0] = 6;"
+      Ledger.source(x,
+          "var a; arr b[3]; var c; arr d[2]; var e; a = 1; b[0] = 2; b[1] = 3; b[2] = 4; c = 5; d[0] = 6;"
           + " d[1] = 7; e = 8;", 0, -1);
       Ledger.due("run()", x.run(1000), 1);
       for (int i = 0; i < 256; i++) {
         Ledger.due("cell " + i, x.peek(i), i >= wlo && i < wlo + 8 ? i - wlo + 1 : 0);
       }
-      Ledger.source(x, "var a; arr b[3]; var c; arr d[2]; var e; return a + 10 * b[0] + 100 * b[2] + 1000 * c"
-          + " + 10000 * d[1];", 0, -1);
+      Ledger.source(x,
+          "var a; arr b[3]; var c; arr d[2]; var e; return a + 10 * b[0] + 100 * b[2] + 1000 * c + 10000 *"
+          + " d[1];", 0, -1);
       Ledger.due("run()", x.run(1000), 1);
       Ledger.due("result()", x.result(), 1 + 20 + 400 + 5000 + 70000);
     }
@@ -155,8 +155,8 @@ public final class Part6Code {
 
   private static void directness() {
     Ledger.sentence("Part 6",
-        "An access name [ e ] is DIRECT, if e is a loop variable alone, and lo and hi are not below 0"
-        + " and not above the arr's number");
+        "An access name [ e ] is DIRECT, if e is a loop variable alone, and lo and hi are not below 0 and"
+        + " not above the arr's number");
     direct("0", "4", "i", 1, true);
     direct("0", "5", "i", 1, false);
     direct("- 1", "4", "i", 1, false);
@@ -169,8 +169,7 @@ public final class Part6Code {
     direct("- 1", "0", "i", 1, false);
     direct("- 100000", "100000", "i", 1, false);
     Ledger.sentence("Part 6",
-        "DIRECT: or with + or - a number behind it and nothing else, and lo and hi, so much more or"
-        + " less");
+        "DIRECT: or with + or - a number behind it and nothing else, and lo and hi, so much more or less");
     direct("0", "3", "i + 1", 3, true);
     direct("0", "4", "i + 1", 3, false);
     direct("- 1", "3", "i + 1", 3, true);
@@ -210,18 +209,18 @@ public final class Part6Code {
   private static void directRuns() {
     Ledger.sentence("Part 6", "DIRECT: LD k r c + (+ or - the number); DIRECT: MARK, E(e, 0), ST 0 r c + ..");
     // MARK, LI; each turn MARK, LI, JLE, then MARK, MOV, ST, then ADDI, JMP; then MARK, LI, JLE, MARK.
-    CodeHarbour x = Ledger.runs("var u; arr a[4]; for i = 0 .. 4 { a[i] = i; }", 11 + END, 1, 0, 2 + 4 * 8
-        + 4 + LAST_STEPS);
+    CodeHarbour x = Ledger.runs("var u; arr a[4]; for i = 0 .. 4 { a[i] = i; }", 11 + END, 1, 0,
+        2 + 4 * 8 + 4 + LAST_STEPS);
     for (int i = 0; i < 6; i++) {
       Ledger.due("cell " + i, x.peek(i), i >= 1 && i < 5 ? i - 1 : 0);
     }
-    x = Ledger.runs("var u; arr a[4]; for i = - 2 .. 2 { a[i + 2] = i; }", 11 + END, 1, 0, 2 + 4 * 8 + 4
-        + LAST_STEPS);
+    x = Ledger.runs("var u; arr a[4]; for i = - 2 .. 2 { a[i + 2] = i; }", 11 + END, 1, 0,
+        2 + 4 * 8 + 4 + LAST_STEPS);
     for (int i = 0; i < 6; i++) {
       Ledger.due("cell " + i, x.peek(i), i >= 1 && i < 5 ? i - 3 : 0);
     }
-    x = Ledger.runs("var u; arr a[4]; for i = 7 .. 11 { a[i - 7] = i; }", 11 + END, 1, 0, 2 + 4 * 8 + 4
-        + LAST_STEPS);
+    x = Ledger.runs("var u; arr a[4]; for i = 7 .. 11 { a[i - 7] = i; }", 11 + END, 1, 0,
+        2 + 4 * 8 + 4 + LAST_STEPS);
     for (int i = 0; i < 6; i++) {
       Ledger.due("cell " + i, x.peek(i), i >= 1 && i < 5 ? i + 6 : 0);
     }
@@ -237,17 +236,15 @@ public final class Part6Code {
     Ledger.due("a[- 3 + 3]", x.result(), 51);
     Ledger.sentence("Part 6",
         "it lies in register 5, in a for within a for 6, then 7; lo and hi are its bounds");
-    x = Ledger.well("arr a[2]; arr b[3]; arr c[4]; var n; for i = 0 .. 2 { for j = 0 .. 3 { for k = 0 .."
-        + " 4 { a[i] = 100 + i;"
-        + " b[j] = 200 + j; c[k] = 300 + k; n = n + 1; } } }");
+    x = Ledger.well("arr a[2]; arr b[3]; arr c[4]; var n; for i = 0 .. 2 { for j = 0 .. 3 { for k = 0 .. 4 {"
+        + " a[i] = 100 + i; b[j] = 200 + j; c[k] = 300 + k; n = n + 1; } } }");
     Ledger.due("run()", x.run(20000), 1);
     int[] due = {100, 101, 200, 201, 202, 300, 301, 302, 303, 24};
     for (int i = 0; i < due.length; i++) {
       Ledger.due("cell " + i, x.peek(i), due[i]);
     }
-    x = Ledger.well("var s; for i = 1 .. 3 { for j = 4 .. 6 { for k = 7 .. 9 { s = s * 3 + i * 100 + j *"
-        + " 10 + k; } } }"
-        + " for k = 0 .. 2 { s = s + k; } return s;");
+    x = Ledger.well("var s; for i = 1 .. 3 { for j = 4 .. 6 { for k = 7 .. 9 { s = s * 3 + i * 100 + j * 10"
+        + " + k; } } } for k = 0 .. 2 { s = s + k; } return s;");
     Ledger.due("run()", x.run(20000), 1);
     int s = 0;
     for (int i = 1; i < 3; i++) {
@@ -265,15 +262,14 @@ public final class Part6Code {
     String right = y < 0 ? "- 2147483647 - 1" : Integer.toString(y);
     int code = (x < 0 ? 5 : 1) + (y < 0 ? 5 : 1);
     // MARK, E, E, jump, (MARK, LI, HALT), JMP, MARK, (MARK, LI, HALT), MARK.
-    Ledger.runs("if (" + left + sign + right + ") { return 1; } else { return 2; }", 1 + code + 1 + 3 + 1 + 1
-        + 3 + 1 + END,
-        1, holds ? 1 : 2, 1 + code + 1 + (holds ? 3 : 4));
+    Ledger.runs("if (" + left + sign + right + ") { return 1; } else { return 2; }",
+        1 + code + 1 + 3 + 1 + 1 + 3 + 1 + END, 1, holds ? 1 : 2, 1 + code + 1 + (holds ? 3 : 4));
   }
 
   private static void comparisons() {
     Ledger.sentence("Part 6",
-        "C(L), for each comparison: E(x, 0), E(y, 1), then for < JLE 1 0 L; <= JLT 1 0 L; == JNE 0 1 L;"
-        + " != JEQ 0 1 L");
+        "C(L), for each comparison: E(x, 0), E(y, 1), then for < JLE 1 0 L; <= JLT 1 0 L; == JNE 0 1 L; !="
+        + " JEQ 0 1 L");
     int[][] pairs = {{1, 2}, {2, 2}, {3, 2}, {LEAST, MOST}, {MOST, LEAST}, {0, MOST}, {LEAST, 0}};
     for (int[] p : pairs) {
       comparison("<", p[0], p[1], p[0] < p[1]);
@@ -286,9 +282,8 @@ public final class Part6Code {
       boolean a = (i & 1) != 0;
       boolean b = (i & 2) != 0;
       boolean c = (i & 4) != 0;
-      String text = "if (" + (a ? "1<2" : "2<1") + " and " + (b ? "1==1" : "1==2") + " and "
-          + (c ? "1!=2" : "1!=1")
-          + ") { return 1; } return 2;";
+      String text = "if (" + (a ? "1<2" : "2<1") + " and " + (b ? "1==1" : "1==2") + " and " + (c ? "1!=2"
+          : "1!=1") + ") { return 1; } return 2;";
       int looked = !a ? 1 : !b ? 2 : 3;
       boolean all = a && b && c;
       // MARK, three times 3, (MARK, LI, HALT), JMP, MARK, MARK; MARK, LI, HALT.
@@ -301,15 +296,15 @@ public final class Part6Code {
     Ledger.runs("if (1 < 2) {}", 7 + END, 1, 0, 6 + LAST_STEPS);
     Ledger.runs("if (2 < 1) {}", 7 + END, 1, 0, 6 + LAST_STEPS);
     Ledger.runs("if (1 < 2) {} else {}", 7 + END, 1, 0, 6 + LAST_STEPS);
-    Ledger.runs("var a; if (1 < 2) { a = 1; } else { a = 2; a = 3; } return a;", 7 + 12 + 4 + END, 1, 1, 4
-        + 4 + 2 + 4);
-    Ledger.runs("var a; if (2 < 1) { a = 1; } else { a = 2; a = 3; } return a;", 7 + 12 + 4 + END, 1, 3, 4
-        + 1 + 8 + 1 + 4);
+    Ledger.runs("var a; if (1 < 2) { a = 1; } else { a = 2; a = 3; } return a;", 7 + 12 + 4 + END, 1, 1,
+        4 + 4 + 2 + 4);
+    Ledger.runs("var a; if (2 < 1) { a = 1; } else { a = 2; a = 3; } return a;", 7 + 12 + 4 + END, 1, 3,
+        4 + 1 + 8 + 1 + 4);
     Ledger.sentence("Part 6", "while: L: MARK, C(N), block, JMP L, N: MARK");
     Ledger.runs("while (2 < 1) {}", 6 + END, 1, 0, 5 + LAST_STEPS);
     // MARK, LI, LD, LI, JLE; MARK, LI, LD, LI, ADD, LI, ST, JMP.
-    Ledger.runs("var n; while (n < 3) { n = n + 1; } return n;", 5 + 8 + 1 + 4 + END, 1, 3, 4 * 5 + 3 * 8 + 1
-        + 4);
+    Ledger.runs("var n; while (n < 3) { n = n + 1; } return n;", 5 + 8 + 1 + 4 + END, 1, 3,
+        4 * 5 + 3 * 8 + 1 + 4);
     CodeHarbour x = Ledger.well("while (1 < 2) {}");
     Ledger.due("run()", x.run(20000), 3);
     Ledger.sentence("Part 6",
@@ -331,18 +326,16 @@ public final class Part6Code {
     String[] bodies = {
       "a[i] = a[j + 1] + c[k];", "while (v < 2) { a[i] = v; v = v + 1; }",
           "if (a[i] < c[k]) { c[k] = 1; } else { a[j] = 2; }",
-      "if (1 < 2) { while (v < 2) { v = v + 1; a[i] = a[j]; } } a[j + 1] = c[k];",
-      "v = a[c[k]]; a[v] = c[k];",
-      "if (a[v] < a[i] and c[k] == a[j] and c[v] != a[i]) { a[i] = 1; }", "v = v + 1;", "return a[i] + c[k];",
-    };
+          "if (1 < 2) { while (v < 2) { v = v + 1; a[i] = a[j]; } } a[j + 1] = c[k];",
+          "v = a[c[k]]; a[v] = c[k];", "if (a[v] < a[i] and c[k] == a[j] and c[v] != a[i]) { a[i] = 1; }",
+          "v = v + 1;", "return a[i] + c[k];", };
     int[][] policies = {{0, 256, 0, 256}, {0, 256, 200, 256}, {9, 30, 10, 30}, {3, 14, 3, 14}};
     for (String body : bodies) {
       for (int[] p : policies) {
         CodeHarbour x = new CodeHarbour();
         x.policy(p[0], p[1], p[2], p[3]);
         String text = "arr a[4]; var v; arr c[6]; for i = 0 .. 4 { for j = 0 .. 3 { for k = 2 .. 6 { " + body
-            + " } " + "a[j] = i; } "
-            + "for k = 1 .. 2 { " + "a[i] = c[k]; } " + "} for i = 0 .. 6 { c[i] = c[i] + 1; }";
+            + " } a[j] = i; } for k = 1 .. 2 { a[i] = c[k]; } } for i = 0 .. 6 { c[i] = c[i] + 1; }";
         Ledger.source(x, text, 0, -1);
         int ends = x.run(20000);
         Ledger.due(text + ": it ends well", ends == 1 || ends == 2 || ends == 3 ? 1 : 0, 1);
@@ -358,8 +351,8 @@ public final class Part6Code {
       }
     }
     Ledger.due("three fors and fors behind them",
-        Ledger.well("for i = 0 .. 1 { for j = 0 .. 1 { for k = 0 .. 1 {} for k = 1 .. 2 {} }"
-        + " for j = - 1 .. 5 {} } for i = 0 .. 1 {}").told(0), 6 * 8 + END);
+        Ledger.well("for i = 0 .. 1 { for j = 0 .. 1 { for k = 0 .. 1 {} for k = 1 .. 2 {} } for j = - 1 .."
+        + " 5 {} } for i = 0 .. 1 {}").told(0), 6 * 8 + END);
   }
 
   public static void main(String[] args) {

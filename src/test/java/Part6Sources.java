@@ -21,9 +21,8 @@ public final class Part6Sources {
         well("" + blank, "return" + blank + "1" + blank + ";" + blank, blank + "var" + blank + "a;");
         Ledger.runs("return " + blank + blank + "7;", 8, 1, 7, 3);
         faulty(3, "^retur" + blank + "n 1;");
-        faulty(2, "return 1" + blank + "^2;", "if (1 <" + blank + "^= 2) {}", "var" + blank + "a; if (a ^="
-            + blank
-            + "= 1) {}");
+        faulty(2, "return 1" + blank + "^2;", "if (1 <" + blank + "^= 2) {}",
+            "var" + blank + "a; if (a ^=" + blank + "= 1) {}");
       } else {
         boolean goesOn = c == '-' || c >= '0' && c <= '9';
         Ledger.due("byte " + c + " is no blank", Ledger.compile(new CodeHarbour(), "return" + blank + "1;"),
@@ -53,9 +52,8 @@ public final class Part6Sources {
     faulty(1, "return ^" + "1".repeat(400) + ";");
     Ledger.sentence("Part 6", "WORDS: var arr if else while for and return: none of them is a name");
     for (String key : new String[] {"var", "arr", "if", "else", "while", "for", "and", "return"}) {
-      faulty(2, "var ^" + key + ";", "arr ^" + key + "[1];", "for ^" + key + " = 0 .. 1 {}", "return ^" + key
-          + ";",
-          "return 1 + ^" + key + ";");
+      faulty(2, "var ^" + key + ";", "arr ^" + key + "[1];", "for ^" + key + " = 0 .. 1 {}",
+          "return ^" + key + ";", "return 1 + ^" + key + ";");
       well("var x" + key + ";", "var " + key + "x; " + key + "x = 1; return " + key + "x;");
       well("var " + key.substring(1) + "; var " + key.substring(0, key.length() - 1) + ";");
     }
@@ -80,11 +78,9 @@ public final class Part6Sources {
   private static void beginnings() {
     Ledger.sentence("Part 6",
         "FAULTS: 2 a word that can't stand here (the end: place as many bytes as there are)");
-    String[] words = ("var v ; arr a [ 5 ] ; v = 1 ; a [ v + 1 ] = ( 2 ) * - v ; if ( v < 2 ) { } if ( v"
-        + " <= 2 and 3 == v )"
-        + " { v = 2 ; } else { return a [ 0 ] ; } while ( v != 2 ) { v = v - 1 ; } for i = - 1 .. - 0 { a"
-        + " [ i + 1 ] = a"
-        + " [ i ] ; } return 1 ;").split(" ");
+    String[] words = ("var v ; arr a [ 5 ] ; v = 1 ; a [ v + 1 ] = ( 2 ) * - v ; if ( v < 2 ) { } if ( v <="
+        + " 2 and 3 == v ) { v = 2 ; } else { return a [ 0 ] ; } while ( v != 2 ) { v = v - 1 ; } for i = -"
+        + " 1 .. - 0 { a [ i + 1 ] = a [ i ] ; } return 1 ;").split(" ");
     StringBuilder text = new StringBuilder();
     int depth = 0;
     boolean whole = true;
@@ -122,59 +118,50 @@ public final class Part6Sources {
     well("var a; arr b[1]; var c;", "var a; arr b[1]; return 1;", "return 1;");
     faulty(2, "return 1; ^var a;", "var a; a = 1; ^arr b[1];", "var ^1;", "var a^", "var a ^= 1;",
         "var a^[1];", "arr a ^(1);", "arr a[^-1];", "arr a[^];", "arr a[1^;", "arr a[1 ^+ 1];",
-        "arr a[1] ^= 1;", "arr ^[1];",
-        "var a; arr b[^a];", "arr a^;", "if (1 < 2) { ^var a; }");
+        "arr a[1] ^= 1;", "arr ^[1];", "var a; arr b[^a];", "arr a^;", "if (1 < 2) { ^var a; }");
     Ledger.sentence("Part 6", "statement: name = e ; | name [ e ] = e ;");
     faulty(2, "var a; a ^1;", "var a; a = ^;", "var a; a = 1^", "var a; a = 1 ^a;", "var a; ^= 1;",
-        "arr a[1]; a[^] = 1;",
-        "arr a[1]; a[0 ^= 1;", "arr a[1]; a[0] ^1;", "arr a[1]; a[0] = ^;", "arr a[1]; a[0]^;", "var a; ^;",
-        "^1 = 2;",
-        "var a; a ^== 1;", "var a; ^(a) = 1;", "var a; a ^+ 1;");
+        "arr a[1]; a[^] = 1;", "arr a[1]; a[0 ^= 1;", "arr a[1]; a[0] ^1;", "arr a[1]; a[0] = ^;",
+        "arr a[1]; a[0]^;", "var a; ^;", "^1 = 2;", "var a; a ^== 1;", "var a; ^(a) = 1;", "var a; a ^+ 1;");
     Ledger.sentence("Part 6", "if ( c ) block | if ( c ) block else block | while ( c ) block");
     faulty(2, "if ^1 < 2 {}", "if (^) {}", "if (1 < 2 ^{}", "if (1 < 2) ^return 1;", "if (1 < 2) {^",
-        "if (1 < 2) {} else ^;",
-        "^else {}", "if (1 < 2) {} else {} ^else {}", "while ^1 < 2 {}", "while (1 < 2) ^return 1;",
-        "while (1 < 2) {} ^else {}",
-        "if (1 < 2) {} else ^if (1 < 2) {}", "^{ }", "^}", "if (1 < 2) {} ^}", "while (1 < 2) {} ^;");
+        "if (1 < 2) {} else ^;", "^else {}", "if (1 < 2) {} else {} ^else {}", "while ^1 < 2 {}",
+        "while (1 < 2) ^return 1;", "while (1 < 2) {} ^else {}", "if (1 < 2) {} else ^if (1 < 2) {}", "^{ }",
+        "^}", "if (1 < 2) {} ^}", "while (1 < 2) {} ^;");
     well("if (1 < 2) {}", "if (1 < 2) {} else {}", "while (2 < 1) {}",
         "if (1 < 2) { if (1 < 2) {} else {} } else { return 1; }");
     Ledger.sentence("Part 6", "for name = bound .. bound block; bound: number | - number");
     faulty(2, "for ^1 = 0 .. 1 {}", "for i ^0 .. 1 {}", "for i ^== 0 .. 1 {}", "for i = ^.. 1 {}",
-        "for i = 0 ^1 {}",
-        "for i = 0 .. ^{}", "for i = 0 .. 1 ^;", "for i = ^(0) .. 1 {}", "for i = 0 ^+ 1 .. 2 {}",
-        "for i = - ^- 1 .. 2 {}",
-        "for i = - ^.. 2 {}", "for i = 0 .. - ^{}", "var n; for i = ^n .. 1 {}", "var n; for i = 0 .. ^n {}",
-        "for i = 0 .. 1 ^+ 1 {}", "for ^(i = 0 .. 1) {}", "for i = ^+ 1 .. 2 {}");
+        "for i = 0 ^1 {}", "for i = 0 .. ^{}", "for i = 0 .. 1 ^;", "for i = ^(0) .. 1 {}",
+        "for i = 0 ^+ 1 .. 2 {}", "for i = - ^- 1 .. 2 {}", "for i = - ^.. 2 {}", "for i = 0 .. - ^{}",
+        "var n; for i = ^n .. 1 {}", "var n; for i = 0 .. ^n {}", "for i = 0 .. 1 ^+ 1 {}",
+        "for ^(i = 0 .. 1) {}", "for i = ^+ 1 .. 2 {}");
     well("for i = 0 .. 1 {}", "for i = - 1 .. - 0 {}", "for i = -5 .. -5 {}");
     Ledger.sentence("Part 6", "return e ; block: { statements }");
     faulty(2, "return^;", "return 1^", "return 1 ^2;", "return ^{}", "if (1 < 2) { return 1; ^");
     Ledger.sentence("Part 6", "c: comparisons joined by and; comparison: e < e | e <= e | e == e | e != e");
     well("if (1 < 2 and 2 <= 3 and 3 == 3 and 3 != 4) {}");
     faulty(2, "if (1^) {}", "if (1 ^= 2) {}", "if (^< 2) {}", "if (1 <^) {}", "if (1 < 2 ^< 3) {}",
-        "if (1 < 2 and^) {}",
-        "if (1 < 2 ^3 < 4) {}", "if (^and 1 < 2) {}", "if (1 < 2 and ^and 2 < 3) {}", "if ((1 ^< 2)) {}",
-        "while ((1 ^== 1) and 1 < 2) {}");
+        "if (1 < 2 and^) {}", "if (1 < 2 ^3 < 4) {}", "if (^and 1 < 2) {}", "if (1 < 2 and ^and 2 < 3) {}",
+        "if ((1 ^< 2)) {}", "while ((1 ^== 1) and 1 < 2) {}");
     Ledger.sentence("Part 6",
         "e: t | e + t | e - t. t: f | t * f. f: number | name | name [ e ] | ( e ) | - f");
     well("return 1 + 2 - 3 * 4;", "return (1);", "return - - 1;", "return - (1);", "return 1 - - 1;",
         "return 2 * - 3;");
     faulty(2, "return ^+ 1;", "return ^* 1;", "return 1 + ^;", "return 1 + ^+ 1;", "return 1 * ^* 1;",
-        "return (^);",
-        "return (1^;", "return (1 ^< 2);", "return -^;", "return 1 ^(2);", "return 1 ^[0];",
-        "return (1) ^(2);",
-        "return 1 - ^* 2;", "return ^[1];", "return 1 ^and 2;", "return 1 ^.. 2;", "return ^= 1;");
+        "return (^);", "return (1^;", "return (1 ^< 2);", "return -^;", "return 1 ^(2);", "return 1 ^[0];",
+        "return (1) ^(2);", "return 1 - ^* 2;", "return ^[1];", "return 1 ^and 2;", "return 1 ^.. 2;",
+        "return ^= 1;");
   }
 
   private static void names() {
     Ledger.sentence("Part 6", "FAULTS: 3 a name that is not known");
     faulty(3, "^a = 1;", "return ^a;", "^a[0] = 1;", "return ^a[0];", "var a; a = ^b;", "var a; ^b = a;",
         "arr a[1]; a[^b] = 1;", "arr a[1]; return a[1 + ^b];", "if (^a < 1) {}", "while (1 < ^a) {}",
-        "return (^a);",
-        "return -^a;", "return 1 * ^a;", "var a; arr b[1]; return a + b[^c];");
+        "return (^a);", "return -^a;", "return 1 * ^a;", "var a; arr b[1]; return a + b[^c];");
     Ledger.sentence("Part 6", "FAULTS: 3 a new one that is");
     faulty(3, "var a; var ^a;", "var a; arr ^a[1];", "arr a[1]; var ^a;", "arr a[1]; arr ^a[1];",
-        "var i; for ^i = 0 .. 1 {}",
-        "arr i[1]; for ^i = 0 .. 1 {}", "for i = 0 .. 1 { for ^i = 0 .. 1 {} }",
+        "var i; for ^i = 0 .. 1 {}", "arr i[1]; for ^i = 0 .. 1 {}", "for i = 0 .. 1 { for ^i = 0 .. 1 {} }",
         "for i = 0 .. 1 { for j = 0 .. 1 { for ^i = 0 .. 1 {} } }");
     Ledger.sentence("Part 6", "A for's name is its LOOP VARIABLE, in its block alone");
     faulty(3, "for i = 0 .. 1 {} return ^i;", "for i = 0 .. 1 {} ^i = 1;", "return ^i; for i = 0 .. 1 {}",
@@ -184,16 +171,14 @@ public final class Part6Sources {
         "for i = 0 .. 1 { for j = 0 .. 1 { return i + j; } return i; }");
     Ledger.sentence("Part 6", "FAULTS: 4 an arr without [");
     faulty(4, "arr a[1]; return ^a;", "arr a[1]; ^a = 1;", "arr a[1]; return 1 + ^a + 1;",
-        "arr a[1]; if (^a < 1) {}",
-        "arr a[1]; return a[^a];", "arr a[1]; return ^a", "arr a[1]; return ^a ?", "arr a[1]; return ^a(0);",
-        "arr a[1]; ^a", "arr a[1]; ^a(0) = 1;");
+        "arr a[1]; if (^a < 1) {}", "arr a[1]; return a[^a];", "arr a[1]; return ^a", "arr a[1]; return ^a ?",
+        "arr a[1]; return ^a(0);", "arr a[1]; ^a", "arr a[1]; ^a(0) = 1;");
     Ledger.sentence("Part 6", "FAULTS: 4 another name with [");
     faulty(4, "var a; return ^a[0];", "var a; ^a[0] = 1;", "for i = 0 .. 1 { return ^i[0]; }",
         "for i = 0 .. 1 { ^i[0] = 1; }", "var a; return ^a[", "var a; return ^a[?", "var a; ^a[");
     Ledger.sentence("Part 6", "FAULTS: 4 another one than a var to be put, at the name");
     faulty(4, "for i = 0 .. 1 { ^i = 1; }", "arr a[1]; ^a = 1;",
-        "for i = 0 .. 1 { for j = 0 .. 1 { ^i = 1; } }",
-        "for i = 0 .. 1 { if (1 < 2) { ^i = i; } }");
+        "for i = 0 .. 1 { for j = 0 .. 1 { ^i = 1; } }", "for i = 0 .. 1 { if (1 < 2) { ^i = i; } }");
     well("var a; a = 1;", "arr a[1]; a[0] = 1;", "for i = 0 .. 1 { return i; }");
   }
 
@@ -263,49 +248,44 @@ public final class Part6Sources {
     Ledger.sentence("Part 6",
         "FAULTS: 7 more than 16 OPERANDS in a statement's own expressions (at the 17th)");
     String sixteen = "1" + "+1".repeat(15);
-    well("return " + sixteen + ";", "var a; a = " + sixteen + ";", "return " + sixteen + ";return " + sixteen
-        + ";");
-    faulty(7, "return " + sixteen + "+^1;", "var a; a = " + sixteen + "+^1;", "return " + sixteen
-        + "+^1+1+1;",
-        "return " + sixteen + "*^1;", "return " + sixteen + "-^1;");
+    well("return " + sixteen + ";", "var a; a = " + sixteen + ";",
+        "return " + sixteen + ";return " + sixteen + ";");
+    faulty(7, "return " + sixteen + "+^1;", "var a; a = " + sixteen + "+^1;",
+        "return " + sixteen + "+^1+1+1;", "return " + sixteen + "*^1;", "return " + sixteen + "-^1;");
     Ledger.sentence("Part 6", "FAULTS: 7 OPERANDS: each number, name, ( and - before an f");
     String fifteen = "1" + "+1".repeat(14);
-    well("var a; return " + fifteen + "+a;", "return " + "1+".repeat(14) + "(1);", "return "
-        + "1+".repeat(14) + "-1;");
-    faulty(7, "var a; return " + sixteen + "+^a;", "return " + fifteen + "+(^1);", "return " + sixteen
-        + "+^(1);",
-        "return " + fifteen + "+-^1;", "return " + sixteen + "+^-1;", "for i = 0 .. 1 { return " + sixteen
-        + "+^i; }");
+    well("var a; return " + fifteen + "+a;", "return " + "1+".repeat(14) + "(1);",
+        "return " + "1+".repeat(14) + "-1;");
+    faulty(7, "var a; return " + sixteen + "+^a;", "return " + fifteen + "+(^1);",
+        "return " + sixteen + "+^(1);", "return " + fifteen + "+-^1;", "return " + sixteen + "+^-1;",
+        "for i = 0 .. 1 { return " + sixteen + "+^i; }");
     well("return " + "(".repeat(15) + "1" + ")".repeat(15) + ";");
-    faulty(7, "return " + "(".repeat(16) + "^1" + ")".repeat(16) + ";", "return " + "(".repeat(16) + "^(1"
-        + ")".repeat(17)
-        + ";");
+    faulty(7, "return " + "(".repeat(16) + "^1" + ")".repeat(16) + ";",
+        "return " + "(".repeat(16) + "^(1" + ")".repeat(17) + ";");
     Ledger.sentence("Part 6", "FAULTS: 7 OPERANDS of an access: its name, and what is in its [ ]");
     well("arr a[3]; return " + "1+".repeat(14) + "a[1];", "arr a[3]; a[1] = " + fifteen + ";",
-        "arr a[3]; a[1 + 1] = " + "1" + "+1".repeat(13) + ";");
+        "arr a[3]; a[1 + 1] = 1" + "+1".repeat(13) + ";");
     faulty(7, "arr a[3]; return " + fifteen + "+a[^1];", "arr a[3]; return " + sixteen + "+^a[1];",
-        "arr a[3]; a[1] = " + fifteen + "+^1;", "arr a[3]; a[" + sixteen + "] = ^1;", "arr a[3]; a["
-        + sixteen + "+^1] = 1;");
+        "arr a[3]; a[1] = " + fifteen + "+^1;", "arr a[3]; a[" + sixteen + "] = ^1;",
+        "arr a[3]; a[" + sixteen + "+^1] = 1;");
     Ledger.sentence("Part 6", "FAULTS: 7 OPERANDS: but not what is in the [ ] of a DIRECT access");
     String loop = "arr a[3]; for i = 0 .. 2 { ";
-    well(loop + "return " + fifteen + "+a[i+1]; }", loop + "a[i+1] = " + sixteen + "; }", loop
-        + "a[i] = a[i]" + "+1".repeat(15)
-        + "; }", loop + "return " + "a[i+1]+".repeat(15) + "a[i]; }");
-    faulty(7, loop + "return " + sixteen + "+^a[i+1]; }", loop + "a[i+1] = " + sixteen + "+^1; }", loop
-        + "return "
-        + fifteen + "+a[^i+2]; }", loop + "return " + "1+".repeat(14) + "a[i+^2]; }", loop + "a[i+2] = "
-        + "1" + "+1".repeat(13) + "+^1; }");
+    well(loop + "return " + fifteen + "+a[i+1]; }", loop + "a[i+1] = " + sixteen + "; }",
+        loop + "a[i] = a[i]" + "+1".repeat(15) + "; }", loop + "return " + "a[i+1]+".repeat(15) + "a[i]; }");
+    faulty(7, loop + "return " + sixteen + "+^a[i+1]; }", loop + "a[i+1] = " + sixteen + "+^1; }",
+        loop + "return " + fifteen + "+a[^i+2]; }", loop + "return " + "1+".repeat(14) + "a[i+^2]; }",
+        loop + "a[i+2] = 1" + "+1".repeat(13) + "+^1; }");
     well(loop + "a[i+2] = " + "1" + "+1".repeat(13) + "; }");
     Ledger.sentence("Part 6",
         "FAULTS: 7 a statement's own expressions: conditions, and not those of its block");
     String eight = "1" + "+1".repeat(7);
     well("if (" + eight + "<" + eight + ") { return " + sixteen + "; } else { return " + sixteen + "; }",
-        "while (" + eight + "<" + eight + ") { return " + sixteen + "; }", "if (1<1" + " and 1<1".repeat(7)
-        + ") {}");
+        "while (" + eight + "<" + eight + ") { return " + sixteen + "; }",
+        "if (1<1" + " and 1<1".repeat(7) + ") {}");
     faulty(7, "if (" + eight + "<" + eight + "+^1) {}", "while (" + eight + "<" + eight + "+^1) {}",
-        "if (" + fifteen + "<1+^1) {}", "if (" + sixteen + "<^1) {}", "if (1<1" + " and 1<1".repeat(7)
-        + " and ^1<1) {}",
-        "while (1<1" + " and 1<1".repeat(7) + " and ^1<1) {}", "if (1 < 2) { return " + sixteen + "+^1; }");
+        "if (" + fifteen + "<1+^1) {}", "if (" + sixteen + "<^1) {}",
+        "if (1<1" + " and 1<1".repeat(7) + " and ^1<1) {}", "while (1<1" + " and 1<1".repeat(7)
+        + " and ^1<1) {}", "if (1 < 2) { return " + sixteen + "+^1; }");
     well("for i = - 1 .. 2 { return " + sixteen + "; }");
   }
 
@@ -316,8 +296,7 @@ public final class Part6Sources {
         "return 1-(1*(1-(1*(1))));");
     faulty(7, "return 1+(1+(1+(1+(1+^1))));", "return 1+(1+(1+(1+1*^1)));", "return 1+(1+(1+(1+1*^(1))));",
         "return - - - - - ^1;", "return - - - - - ^- 1;", "return - - - - - ^(1);",
-        "return 1+(1+(1+(1+-^1)));",
-        "var a; return - - - - - ^a;", "for i = 0 .. 1 { return - - - - - ^i; }",
+        "return 1+(1+(1+(1+-^1)));", "var a; return - - - - - ^a;", "for i = 0 .. 1 { return - - - - - ^i; }",
         "arr a[3]; for i = 0 .. 3 { return - - - - - ^a[i]; }");
     well("if (1+(1+(1+(1+1))) < 1+(1+(1+1))) {}", "while (1 < - - - 1) {}");
     faulty(7, "if (1 < 1+(1+(1+(1+^1)))) {}", "while (1 < - - - - ^1) {}",
@@ -328,16 +307,14 @@ public final class Part6Sources {
     well("arr a[2]; for i = 0 .. 2 { a[i] = 1+(1+(1+(1+1))); }");
     Ledger.sentence("Part 6", "FAULTS: 7 a name with [ that is not DIRECT whose k is 4 (at the name)");
     well("arr a[2]; return 1+(1+(1+a[0]));", "arr a[2]; return - - - a[1];",
-        "arr a[2]; return a[1+(1+(1+a[0]))];",
-        "arr a[2]; for i = 0 .. 2 { return 1+(1+(1+(1+a[i]))); }",
+        "arr a[2]; return a[1+(1+(1+a[0]))];", "arr a[2]; for i = 0 .. 2 { return 1+(1+(1+(1+a[i]))); }",
         "arr a[2]; for i = 0 .. 1 { return - - - - a[i + 1]; }");
     faulty(7, "arr a[2]; return 1+(1+(1+(1+^a[0])));", "arr a[2]; return - - - - ^a[0];",
-        "arr a[2]; if (1 < - - - ^a[0]) {}",
-        "arr a[2]; for i = 0 .. 3 { return - - - - ^a[i]; }",
+        "arr a[2]; if (1 < - - - ^a[0]) {}", "arr a[2]; for i = 0 .. 3 { return - - - - ^a[i]; }",
         "arr a[2]; for i = 0 .. 2 { return - - - - ^a[i + 1]; }",
         "arr a[2]; for i = 0 .. 2 { return - - - - ^a[i - 1]; }",
-        "arr a[2]; for i = 0 .. 2 { return - - - - ^a[(i)]; }",
-        "arr a[2]; a[0] = 1+(1+(1+^a[0]));", "arr a[2]; return a[1+(1+(1+(1+^a[0])))];");
+        "arr a[2]; for i = 0 .. 2 { return - - - - ^a[(i)]; }", "arr a[2]; a[0] = 1+(1+(1+^a[0]));",
+        "arr a[2]; return a[1+(1+(1+(1+^a[0])))];");
   }
 
   private static void nests() {
@@ -345,18 +322,16 @@ public final class Part6Sources {
     String three = "for i = 0 .. 1 { for j = 0 .. 1 { for k = 0 .. 1 { ";
     well(three + "return i + j + k; } } }", three
         + "} for l = 0 .. 1 {} } for l = 0 .. 1 { for m = 0 .. 1 {} } }");
-    faulty(7, three + "^for l = 0 .. 1 {} } } }", three + "if (1 < 2) { ^for l = 0 .. 1 {} } } } }", three
-        + "^for",
-        three + "^for i");
+    faulty(7, three + "^for l = 0 .. 1 {} } } }", three + "if (1 < 2) { ^for l = 0 .. 1 {} } } } }",
+        three + "^for", three + "^for i");
     well("for i = 0 .. 1 {} for j = 0 .. 1 {} for k = 0 .. 1 {} for l = 0 .. 1 {}");
     Ledger.sentence("Part 6", "FAULTS: 7 a { within 20");
     for (String open : new String[] {"if (1 < 2) {", "while (1 < 2) {", "if (1 < 2) {} else {"}) {
       well(open.repeat(20) + "}".repeat(20));
       faulty(7, open.repeat(20) + open.replaceFirst("\\{", "^{") + "}".repeat(21));
     }
-    well("if (1 < 2) {".repeat(17) + three + "} } }" + "}".repeat(17), "if (1 < 2) {".repeat(19)
-        + "while (1 < 2) {}"
-        + "while (1 < 2) {}" + "}".repeat(19));
+    well("if (1 < 2) {".repeat(17) + three + "} } }" + "}".repeat(17),
+        "if (1 < 2) {".repeat(19) + "while (1 < 2) {}while (1 < 2) {}" + "}".repeat(19));
     faulty(7, "if (1 < 2) {".repeat(20) + "for i = 0 .. 1 ^{ }");
     well("if (1 < 2) {}".repeat(21));
   }
@@ -380,8 +355,7 @@ public final class Part6Sources {
     faulty(3, four + "var ^a;", "return " + sixteen + "+^a;", "return - - - - - ^a;",
         "return - - - - ^a[0];");
     faulty(4, "arr a[1]; return " + sixteen + "+^a;", "arr a[1]; return - - - - - ^a;",
-        "var a; return - - - - ^a[0];",
-        "var a; return " + sixteen + "+^a[0];");
+        "var a; return - - - - ^a[0];", "var a; return " + sixteen + "+^a[0];");
     faulty(5, four + "arr e[^0];", four + "arr e[^65];");
     // A for within three that has another fault further on is seen at its own word.
     faulty(7, "for i = 0 .. 1 { for j = 0 .. 1 { for k = 0 .. 1 { ^for i = 0 .. 1 {} } } }");

@@ -76,8 +76,8 @@ public final class Promises {
 
   private static void feed() {
     Ledger.sentence("Promise 2",
-        "The twenty bytes of five ints, the highest of each first, come to the TAPE; answers how"
-        + " many it has then");
+        "The twenty bytes of five ints, the highest of each first, come to the TAPE; answers how many it has"
+        + " then");
     CodeHarbour x = new CodeHarbour();
     Ledger.due("return 1", x.feed(0x20726574, 0x75726e20, 0x31202020, 0x20202020, 0x20202020), 20);
     Ledger.due("+ 23;", x.feed(0x2b203233, 0x3b202020, 0x20202020, 0x20202020, 0x2020200a), 40);
@@ -190,17 +190,15 @@ public final class Promises {
     x.policy(0, 256, 0, 256);
     Ledger.due("the tape stays", x.end(20), 20);
     Ledger.sentence("Promise 4",
-        "-1, and nothing is changed, if it is not as told: each edge of 0 <= rlo <= wlo <= whi <= rhi"
-        + " <= 256");
+        "-1, and nothing is changed, if it is not as told: each edge of 0 <= rlo <= wlo <= whi <= rhi <="
+        + " 256");
     CodeHarbour y = new CodeHarbour();
     y.policy(5, 100, 6, 90);
     Ledger.source(y, "return 4;", 0, -1);
     int[][] bad = {{-1, 100, 6, 90}, {7, 100, 6, 90}, {5, 100, 91, 90}, {5, 89, 6, 90}, {5, 257, 6, 90}, {5,
-        257, 6, 257},
-      {LEAST, 100, 6, 90}, {5, MOST, 6, 90}, {5, 100, -1, 90}, {5, 100, 6, -1}, {5, LEAST, 6, 90}, {MOST, 100,
-      6, 90},
-      {-1, -1, -1, -1}, {257, 257, 257, 257}, {0, 256, 0, 257}, {0, 256, 256, 255}, {1, 0, 0, 0}, {0, 255, 0,
-      256}};
+        257, 6, 257}, {LEAST, 100, 6, 90}, {5, MOST, 6, 90}, {5, 100, -1, 90}, {5, 100, 6, -1}, {5, LEAST, 6,
+        90}, {MOST, 100, 6, 90}, {-1, -1, -1, -1}, {257, 257, 257, 257}, {0, 256, 0, 257}, {0, 256, 256, 255},
+        {1, 0, 0, 0}, {0, 255, 0, 256}};
     for (int[] p : bad) {
       Ledger.due("policy" + java.util.Arrays.toString(p), y.policy(p[0], p[1], p[2], p[3]), -1);
       Ledger.due("code is in", y.told(3), 1);
@@ -208,8 +206,7 @@ public final class Promises {
     Ledger.due("run()", y.run(9), 1);
     policyIs(y, 5, 100, 6, 90);
     int[][] good = {{0, 256, 0, 256}, {0, 0, 0, 0}, {256, 256, 256, 256}, {5, 5, 5, 5}, {0, 256, 256, 256},
-        {0, 256, 0, 0},
-      {0, 1, 0, 1}, {255, 256, 255, 256}, {0, 256, 255, 255}, {6, 90, 6, 90}};
+        {0, 256, 0, 0}, {0, 1, 0, 1}, {255, 256, 255, 256}, {0, 256, 255, 255}, {6, 90, 6, 90}};
     for (int[] p : good) {
       Ledger.due("policy" + java.util.Arrays.toString(p), y.policy(p[0], p[1], p[2], p[3]), 0);
     }
@@ -279,8 +276,7 @@ public final class Promises {
     }
     Ledger.sentence("Promise 6", "-1: it has a FAULT; no code is held or in");
     String[] faulty = {"return ?;", "return;", "return a;", "arr a[1]; return a;", "arr a[0];",
-        "return 1;".repeat(400),
-      "return - - - - - 1;"};
+        "return 1;".repeat(400), "return - - - - - 1;"};
     int[] places = {7, 6, 7, 17, 6, 0, 17};
     for (int i = 0; i < faulty.length; i++) {
       CodeHarbour y = new CodeHarbour();
@@ -380,8 +376,7 @@ public final class Promises {
     Ledger.due("steps()", z.steps(), 19999);
     // LI, 6666 times MARK, ADDI, JNE, then HALT: 20000 steps.
     Ledger.loads(z, "a loop", 0, -1, Wire.code(1, Wire.li(1, 6666), Wire.mark(0), Wire.addi(0, 0, 1),
-        Wire.ins(12, 0, 1, 1),
-        Wire.HALT), 16, 32, Wire.times(8, 35), 34, 33, 34, 32, 34, 32);
+        Wire.ins(12, 0, 1, 1), Wire.HALT), 16, 32, Wire.times(8, 35), 34, 33, 34, 32, 34, 32);
     Ledger.due("HALT is the last step", z.run(20000), 1);
     Ledger.due("result()", z.result(), 6666);
     Ledger.due("steps()", z.steps(), 20000);
@@ -400,8 +395,8 @@ public final class Promises {
     Ledger.due("in", x.watch(5), 1);
     Ledger.due("result()", x.result(), 5);
     Ledger.sentence("Promise 9",
-        "a LD of a cell that may not be read ends it as 4, a ST that may not be written as 5, ahead of"
-        + " this step, with that cell");
+        "a LD of a cell that may not be read ends it as 4, a ST that may not be written as 5, ahead of this"
+        + " step, with that cell");
     CodeHarbour y = new CodeHarbour();
     y.policy(10, 20, 12, 18);
     for (int cell : new int[] {LEAST, -1, 0, 9, 20, 255, 256, MOST}) {
@@ -575,8 +570,7 @@ public final class Promises {
 
   private static void told() {
     Ledger.sentence("Promise 14",
-        "0: instructions of the code that is held, 0 without one. 2: 1 if code is held. 3: 1 if code is"
-        + " in");
+        "0: instructions of the code that is held, 0 without one. 2: 1 if code is held. 3: 1 if code is in");
     CodeHarbour x = new CodeHarbour();
     for (int fault = 0; fault <= 9; fault++) {
       Ledger.bring(x, packageOf(fault));
@@ -589,8 +583,8 @@ public final class Promises {
     x.policy(0, 256, 0, 256);
     Ledger.due("told(0) behind a policy()", x.told(0), 0);
     Ledger.sentence("Promise 14",
-        "1: NODES of the latest load()'s OBLIGATION; 0 before one, if it had a FAULT of 1 to 6, and behind"
-        + " a compile()");
+        "1: NODES of the latest load()'s OBLIGATION; 0 before one, if it had a FAULT of 1 to 6, and behind a"
+        + " compile()");
     CodeHarbour y = new CodeHarbour();
     Ledger.due("told(1) before one", y.told(1), 0);
     byte[] marked = Wire.join(Wire.code(1, Wire.mark(0), Wire.HALT), 16);
@@ -670,8 +664,8 @@ public final class Promises {
     Ledger.due("a trap", x.run(20), 2);
     Ledger.due("strays()", x.strays(), 0);
     Ledger.loads(x, "the edges", 0, -1, Wire.code(0, Wire.ld(0, 1, 2), Wire.ld(0, 1, 5), Wire.st(0, 1, 3),
-        Wire.st(0, 1, 4),
-        Wire.HALT), 33, 33, 36, 36, 35, 33, 33, 36, 36, 35, 33, 33, 36, 36, 33, 33, 36, 36, 32);
+        Wire.st(0, 1, 4), Wire.HALT), 33, 33, 36, 36, 35, 33, 33, 36, 36, 35, 33, 33, 36, 36, 33, 33, 36, 36,
+        32);
     Ledger.due("run()", x.run(20), 1);
     Ledger.due("strays()", x.strays(), 0);
     Ledger.sentence("Promise 15",

@@ -4,13 +4,11 @@ import java.util.Random;
 /** Runs of 512 calls in any order, with arguments at the edges, on the class and on the model. */
 public final class RandomCalls {
   private static final int[] EDGES = {Integer.MIN_VALUE, -1, 0, 1, 2, 5, 7, 19, 20, 21, 40, 63, 64, 65, 254,
-      255, 256, 257,
-    19999, 20000, 20001, Integer.MAX_VALUE};
+      255, 256, 257, 19999, 20000, 20001, Integer.MAX_VALUE};
   private static final List<String> SOURCES = List.of("return 7;", "var n; n = n + 1; return n * 3;",
       "arr a[3]; for i = 0 .. 3 { a[i] = a[i] + i; } return a[2];",
-      "var n; while (n < 9) { n = n + 1; } return a;",
-      "arr a[2]; return a[2];", "", "return", "while (1 < 2) {}", "arr a[64]; a[0] = 3; a[63] = 4;",
-      "return ?;");
+          "var n; while (n < 9) { n = n + 1; } return a;", "arr a[2]; return a[2];", "", "return",
+          "while (1 < 2) {}", "arr a[64]; a[0] = 3; a[63] = 4;", "return ?;");
 
   private static int edge(Random random) {
     return EDGES[random.nextInt(EDGES.length)];
@@ -23,8 +21,7 @@ public final class RandomCalls {
       case 1 -> Wire.join(Wire.code(0, Wire.ld(0, 1, random.nextInt(300) - 20), Wire.HALT), 33, 33, 36, 36,
           35, 32);
       case 2 -> Wire.join(Wire.code(0, Wire.li(2, 5), Wire.st(2, 1, random.nextInt(300) - 20), Wire.trap(3)),
-          33, 33,
-          36, 36, 32);
+          33, 33, 36, 36, 32);
       case 3 -> Wire.join(Wire.code(1, Wire.mark(0), Wire.addi(0, 0, 1), Wire.jmp(0)), 16, 32,
           Wire.PART_OF_TRUE);
       default -> {

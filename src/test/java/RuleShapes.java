@@ -1,5 +1,4 @@
 import java.util.ArrayList;
-import java.util.Arrays;
 import java.util.List;
 
 /** Every rule on many a W, whether it suits or not, and what a path lets be shown. */
