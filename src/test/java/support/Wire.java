@@ -170,6 +170,8 @@ final class Wire {
     return join(head(instructions.length, claims), instructions);
   }
 
+  static final byte[] TRUE_SHOWN = {32};
+
   /** A derivation of a PART whose claim does not matter and whose PATH is TRUE. */
   static final byte[] PART_OF_TRUE = join(times(8, 35), 34, 32);
 
