@@ -2437,6 +2437,10 @@ public final class CodeHarbour {
    * Makes the package of a code that the compiler made. A claim says of the loop variables of the
    * fors around its MARK that they lie between their bounds: claim 0 is TRUE; any other one is the
    * claim around the innermost for AND (lo <= r AND r < hi), or r <= hi at the head of this for.
+   *
+   * <p>It comes in whatever the source: in three fors an empty if with two direct accesses has the
+   * most nodes, some 34 to an instruction, and 15 accesses within one another have the deepest
+   * derivations, some 110 tags; both are far from what is too much.
    */
   private static final class Packer {
     static final int MOST_LOOP_CLAIMS = 512;

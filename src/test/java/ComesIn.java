@@ -18,7 +18,7 @@ public final class ComesIn {
     return x;
   }
 
-  /** The index of an access that is i and so much more or less: 0 stands alone, 3 .. -3 behind a sign. */
+  /** The index of an access: i alone, or with + or - a number behind it. */
   private static String index(int more, boolean alone) {
     return alone ? "i" : more < 0 ? "i-" + -more : "i+" + more;
   }
@@ -65,8 +65,7 @@ public final class ComesIn {
         }
       }
     }
-    for (int edge : new int[] {100000, 99999, -100000, -99990}) {
-      int low = Math.min(edge, 99997);
+    for (int low : new int[] {99997, -99990, -100000}) {
       CodeHarbour x = under(0, 256, 191, 256);
       for (int high = low; high <= low + 3; high++) {
         for (int more = -2; more <= 2; more++) {
